@@ -18,7 +18,7 @@ public final class DoorScan {
 
     /** Bounds of the two ways' loops, which only values that are passed over without a step come near to. */
     private static final int MOST_MOVES = 4000000;
-    private static final int CHECKED_MOVES = 200000;
+    private static final int CHECKED_MOVES = 20000;
 
     /** Kinds that have a call of their own; the letters are none of those that make and assign know. */
     private static final char NUMBER = '0';
