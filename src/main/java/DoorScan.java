@@ -1865,9 +1865,6 @@ public final class DoorScan {
             long from = texts.numberOf(node.one);
             long to = texts.numberOf(coded);
             if (from == Texts.NO_NUMBER || to == Texts.NO_NUMBER || from > to) {
-                // nothing is left to count as it is gone back into
-                node.x = 0;
-                node.y = 0;
                 retreat(node);
             } else {
                 node.x = (int) from;

@@ -10,6 +10,7 @@ public final class LivesTest {
         Kit.values("1 1 2 1 f", "(; (: 0 (c (t 1 2))) (| (@ v0) (| (@ (^ v0)) (| (@ v0) (| (@ v0) (@ (^ v0)))))))");
         Kit.values("c f", "(^ (c 1))");
         Kit.values("c c f", "(^ (| (c 1) (c 2)))");
+        Kit.values("2 f", "(; (: 0 (c 1)) (; (@ v0) (; (@ v0) (i (@ v0) 1 2))))");
         copies();
         own();
         errors();

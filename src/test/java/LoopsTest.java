@@ -9,6 +9,8 @@ public final class LoopsTest {
         Kit.values("4 f", "(; (: 0 0) (; (w (< v0 4) (: 0 (+ v0 1))) v0))");
         Kit.values("3 f", "(; (: 0 0) (; (w (< (: 0 (+ v0 1)) 3)) v0))");
         Kit.values("3 f", "(; (: 0 0) (; (w (< (: 0 (+ v0 1)) 3) (< 2 1)) v0))");
+        Kit.values("1 f", "(; (: 0 0) (; (w (i (< v0 1) (t 1 2)) (: 0 (+ v0 1))) v0))");
+        Kit.values("1 f", "(; (: 0 0) (; (w (i (< v0 1) (t 1 2)) (; (: 0 (+ v0 1)) n)) v0))");
         leaving();
         goingOn();
         nested();
@@ -27,6 +29,8 @@ public final class LoopsTest {
         Kit.values("3 2 f", "(; (: 0 5) (e (: 0 (t 2 9)) (b (| 3 v0))))");
         Kit.values("2 2 f", "(| (e (u 0 (t 1 5)) (i (= v0 2) (b v0))) v0)");
         Kit.values("7 f", "(e (t 1 3) (; (b 7) 5))");
+        Kit.values("7 f", "(e (t 1 3) (& (t 1 2) (b 7)))");
+        Kit.values("7 f", "(w (t 1 3) (& (t 1 2) (b 7)))");
         Kit.values("!b", "b");
         Kit.values("!b", "(b 5)");
         Kit.values("!b", "n");

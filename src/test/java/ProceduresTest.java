@@ -33,6 +33,11 @@ public final class ProceduresTest {
         Kit.values("1 2 f", "(l (call 0 1) 2)", "0=(S (t 1 9))");
         Kit.values("1 1 1", "(r (call 0 1))", "0=(S 1)");
         Kit.values("1 2 2 1 f", "(call 0 1)", "0=(| (& (u 0 (t 1 2)) (S v0)) (; (S 2) (S 1)))");
+        // 'S' in the parts of what has not yet a value is gone back into alone
+        Kit.values("3 7 f", "(call 0 1)", "0=(; (: 1 7) (; (u 1 (S 3)) (S v1)))");
+        Kit.values("3 2 f", "(s 'abc' (call 0 1))", "0=(; (m 1) (; (T (S 3)) (S p)))");
+        Kit.values("3 4 5 6 f", "(call 0 1)", "0=(; (t (| (S 3) 1) (| (S 4) 0)) (| (S 5) (S 6)))");
+        Kit.values("8 9 f", "(call 0 1)", "0=(; (l (S 8) 1) (; (U (S 9)) (y 0 0)))");
         Kit.values("5 6 f", "(call 0 5)", "0=(S (call 1 v0))", "1=(| (S v0) (S (+ v0 1)))");
     }
 

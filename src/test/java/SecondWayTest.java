@@ -26,6 +26,11 @@ public final class SecondWayTest {
         Kit.due("104 steps a value", count("(r (; (e (l (r 1) 98)) 7))", 20), 9);
         Kit.due("1000 steps of all", count("(; (e (l (r 1) 497) 2) 7)", 1), 1);
         Kit.due("1002 steps of all", count("(; (e (l (r 1) 498) 2) 7)", 1), 0);
+        // 30 procedures may be within one another here, too
+        String body = "0=(i (< 0 (: 0 (- v0 1))) (R (call 0 v0)) (R 5))";
+        Kit.due("30 procedures", count("(call 0 30)", 1, body), 1);
+        Kit.due("31 procedures", count("(call 0 31)", 1, body), 0);
+        Kit.due("180 procedures one behind the other", count("(; (e (t 1 180) (call 0 1)) 7)", 2, "0=(R v0)"), 1);
         DoorScan x = Kit.language();
         int row = Kit.put(x, "(& (: 0 (t 1 5)) (s 'ab' (m 1)))");
         for (int bad : new int[] {0, -1, 21, Integer.MAX_VALUE}) {
@@ -116,6 +121,17 @@ public final class SecondWayTest {
         Kit.put(x, "(s 'ababab' (T (U 'b')))");
         Kit.put(x, "(w 1)");
         Kit.due("isSound()", x.isSound(), true);
+        DoorScan y = new DoorScan();
+        // a life is found through procedures, the bodies of which come later
+        for (int i = 0; i < 6; i++) {
+            y.call(i, i == 0 ? y.number(1) : 0, -1);
+            y.define(i, y.make('S', y.number(1), -1, -1));
+        }
+        for (int i = 0; i < 5; i++) {
+            y.define(i, Kit.put(y, "(S (call " + (i + 1) + " 1))"));
+        }
+        y.define(5, Kit.put(y, "(S (c 1))"));
+        Kit.due("isSound() with a life far away", y.isSound(), true);
         x.begin(0);
         Kit.due("isSound() with a run", x.isSound(), true);
         Kit.due("isSound() begins no run", x.runs(), 1);
