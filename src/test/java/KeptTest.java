@@ -1,63 +1,71 @@
-/** What a run can still reach is kept while much else is made and given up in between. */
+/** What can still be reached is kept while much else is made and given up in between, and used again. */
 public final class KeptTest {
-    /** Makes and gives up many texts, then many expressions that were begun; 0 once. */
-    private static final String CHURN = "(! (e (| (. 'ab' (t 1 700)) (l (r (+ (t 1 2) (t 1 2))) 100))))";
-    /** Likewise many lives. */
-    private static final String LIVES = "(! (e (| (. 'ab' (t 1 300)) (l (r (c 1)) 350))))";
+    /** Each makes and gives up many texts and then many nodes, lives or procedures; it has 0, once. */
+    private static final String[] CHURNS = {
+        "(! (e (| (. 'ab' (t 1 700)) (l (r (+ (t 1 2) (t 1 2))) 100))))",
+        "(! (e (| (. 'ab' (t 1 300)) (l (r (c 1)) 350))))",
+        "(! (e (| (. 'ab' (t 1 300)) (l (r (call 5 3)) 60))))"};
+    private static final String CALLED = "5=(; (: 3 1) (R v0))";
 
     public static void main(String[] args) {
-        for (String churn : new String[] {CHURN, LIVES}) {
+        for (String churn : CHURNS) {
             values(churn);
             scanning(churn);
             procedures(churn);
             lives(churn);
         }
         passing();
+        nextRuns();
+        manyHanded();
         Kit.end();
     }
 
-    private static void kept(String churn, String want, String notation, String... bodies) {
-        String[] full = new String[bodies.length];
-        for (int i = 0; i < bodies.length; i++) {
-            full[i] = bodies[i].replace("%", churn);
-        }
-        Kit.values(want, notation.replace("%", churn), full);
+    private static void kept(String churn, String want, String notation) {
+        kept(churn, want, notation, "0=1");
+    }
+
+    private static void kept(String churn, String want, String notation, String body) {
+        Kit.values(want, notation.replace("%", churn), body.replace("%", churn), CALLED);
     }
 
     private static void values(String churn) {
-        kept(churn, "'xyz' f", "(. (. 'x' 'y') (& % 'z'))");
-        kept(churn, "'bc' f", "([ (. 'ab' 'cd') (. '' 2) (& % 4))");
-        kept(churn, "'op' f", "(; (: 0 (. 'o' 'p')) (& % v0))");
-        kept(churn, "'op' f", "(; (: 0 (. 'o' 'p')) (| (& (u 0 5) (& % (< 2 1))) v0))");
-        kept(churn, "'op' 'qr' f", "(; (: 0 (. 'o' 'p')) (; (: 1 (. 'q' 'r'))"
+        kept(churn, "'123' f", "(. (. 1 2) (& % 3))");
+        kept(churn, "'23' f", "([ (. 12 34) (. '' 2) (& % 4))");
+        kept(churn, "'12' f", "(; (: 0 (. 1 2)) (& % v0))");
+        kept(churn, "'12' f", "(; (: 0 (. 1 2)) (| (& (u 0 5) (& % (< 2 1))) v0))");
+        kept(churn, "'12' '34' f", "(; (: 0 (. 1 2)) (; (: 1 (. 3 4))"
                 + " (| (& (y 0 1) (& (: 0 1) (& (: 1 1) (& % (< 2 1))))) (| v0 v1))))");
-        kept(churn, "'ab1' 'ab2' f", "(& (: 0 (. (. 'a' 'b') (t 1 2))) (; % v0))");
+        kept(churn, "'121' '122' f", "(& (: 0 (. (. 1 2) (t 1 2))) (; % v0))");
+        kept(churn, "'121' '122' f", "(& (: 0 (e 1 (b (. (. 1 2) (t 1 2))))) (; % v0))");
+        kept(churn, "'12' '12' f", "(& (: 0 (& (~ 12 (. 1 2)) (| (~ 12 (. 1 2)) (~ 12 (. 1 2))))) (; % v0))");
     }
 
     private static void scanning(String churn) {
-        kept(churn, "'x' 'abc' f", "(& (: 0 (s (. 'ab' 'c') (| 'x' (T 0)))) (; % v0))");
-        kept(churn, "'abc' f", "(s (. 'ab' 'c') (; (s 'x' %) q))");
-        kept(churn, "'bc' f", "(s (. 'ab' 'c') (; (m 1) (; % (T 0))))");
-        kept(churn, "2 4 f", "(s 'abab' (& (: 0 (U (. 'b' 'x'))) (; % v0)))");
+        kept(churn, "0 '123' f", "(& (: 0 (s (. 12 3) (| 0 (T 0)))) (; % v0))");
+        kept(churn, "'123' f", "(s (. 12 3) (; (s 7 %) q))");
+        kept(churn, "'23' f", "(s (. 12 3) (; (m 1) (; % (T 0))))");
+        kept(churn, "2 4 f", "(s 1212 (& (: 0 (U (. 2 3))) (; % v0)))");
     }
 
     private static void procedures(String churn) {
-        kept(churn, "1 'ab' f", "(& (: 0 (call 0 1)) (; % v0))", "0=(; (: 1 (. 'a' 'b')) (; (S 1) (S v1)))");
-        kept(churn, "'abz' f", "(. (. 'a' 'b') (call 0 'z'))", "0=(; % (R v0))");
-        kept(churn, "'abz' f", "(call 0 (. 'a' 'b') (& % 'z'))", "0=(R (. v0 v1))");
-        kept(churn, "1 'abc' f", "(& (: 0 (call 0 1)) (; % v0))", "0=(s (. 'ab' 'c') (; (S 1) (S (T 0))))");
+        kept(churn, "1 '12' f", "(& (: 0 (call 0 1)) (; % v0))", "0=(; (: 1 (. 1 2)) (; (S 1) (S v1)))");
+        kept(churn, "'123' f", "(. (. 1 2) (call 0 3))", "0=(; % (R v0))");
+        kept(churn, "'123' f", "(call 0 (. 1 2) (& % 3))", "0=(R (. v0 v1))");
+        kept(churn, "1 '123' f", "(& (: 0 (call 0 1)) (; % v0))", "0=(s (. 12 3) (; (S 1) (S (T 0))))");
+        kept(churn, "1 2 f", "(; % (+ (call 0 0) (call 0 1)))", "0=(; (: 2 v0) (S (t v2 1)))");
     }
 
     private static void lives(String churn) {
-        kept(churn, "'ab' f", "(; (: 1 (. 'a' 'b')) (; (: 0 (c v1)) (; (: 1 0) (; % (@ v0)))))");
-        kept(churn, "'ab' f", "(; (: 0 (c (; (: 1 (. 'a' 'b')) (| 1 v1)))) (; (@ v0) (; % (@ v0))))");
-        kept(churn, "'ab' f", "(; (: 0 (c (s (. 'a' 'b') (| 1 (T 0))))) (; (@ v0) (; % (@ v0))))");
-        kept(churn, "'ab' f", "(; (s (. 'a' 'b') (: 0 (c q))) (; % (@ v0)))");
-        kept(churn, "'ab' f", "(; (s (. 'a' 'b') (: 0 (c q))) (; % (; (@ v0) (@ (^ v0)))))");
-        kept(churn, "'ab' f", "(; (: 1 (c (. 'a' 'b'))) (; (: 0 (c (@ v1))) (; (: 1 0) (; % (@ v0)))))");
-        kept(churn, "'xyz' f", "(. (. 'x' 'y') (@ (c (& % 'z'))))");
-        kept(churn, "'xyzz' f", "(. (. 'x' 'y') (@ (c (. (. 'z' '') (@ (c (& % 'z')))))))");
-        kept(churn, "'xy' 'xy' f", "(; (: 0 (. 'x' 'y')) (| (& (@ (c (& % 1))) v0) v0))");
+        kept(churn, "'12' f", "(; (: 1 (. 1 2)) (; (: 0 (c v1)) (; (: 1 0) (; % (@ v0)))))");
+        kept(churn, "'12' f", "(; (: 0 (c (; (: 1 (. 1 2)) (| 1 v1)))) (; (@ v0) (; % (@ v0))))");
+        kept(churn, "'12' f", "(; (: 0 (c (s (. 1 2) (| 1 (T 0))))) (; (@ v0) (; % (@ v0))))");
+        kept(churn, "'12' f", "(; (s (. 1 2) (: 0 (c q))) (; % (@ v0)))");
+        kept(churn, "'12' f", "(; (s (. 1 2) (: 0 (c q))) (; % (; (@ v0) (@ (^ v0)))))");
+        kept(churn, "'12' f", "(; (: 1 (c (. 1 2))) (; (: 0 (c (@ v1))) (; (: 1 0) (; % (@ v0)))))");
+        kept(churn, "'123' f", "(. (. 1 2) (@ (c (& % 3))))");
+        kept(churn, "'1233' f", "(. (. 1 2) (@ (c (. (. 3 '') (@ (c (& % 3)))))))");
+        kept(churn, "'12' '12' f", "(; (: 0 (. 1 2)) (| (& (@ (c (& % 1))) v0) v0))");
+        kept(churn, "1 2 f", "(; % (; (: 0 (c 1)) (; (: 1 (c 2)) (| (@ v0) (@ v1)))))");
     }
 
     /** Texts on their way from one expression to the next, whenever it is that room is made. */
@@ -69,6 +77,41 @@ public final class KeptTest {
             }
             Kit.values("0 f", "(! (e (: 1 (t 1 35)) (; (: 0 " + text + ") (; (. v0 'q')"
                     + " (i (~ v0 (. 'x' v1)) 1 (b 9))))))");
+        }
+    }
+
+    /** What was left of a run does not come up in the next one. */
+    private static void nextRuns() {
+        DoorScan x = Kit.language("0=(; (: 3 v0) (; (S v3) (S v3)))");
+        int call = Kit.put(x, "(call 0 (t 1 2))");
+        x.begin(call);
+        Kit.due("a procedure that can be gone back into", Kit.row(x, 1), "1");
+        x.define(0, Kit.put(x, "(R v0)"));
+        x.begin(call);
+        Kit.due("another one", Kit.row(x, 3), "1 2 f");
+        x.define(0, Kit.put(x, "(R v3)"));
+        x.begin(call);
+        Kit.due("its variables", Kit.row(x, 1), "!x");
+        x.begin(Kit.put(x, "(r 1)"));
+        Kit.due("a round", Kit.row(x, 2), "1 1");
+        long steps = x.steps();
+        x.begin(Kit.put(x, "(r (< 2 1))"));
+        Kit.due("no round", Kit.row(x, 1), "f");
+        Kit.due("its steps", x.steps() - steps, 4);
+        int life = Kit.put(x, "(; (: 0 (c (t 1 2))) (r (@ v0)))");
+        for (int i = 0; i < 3; i++) {
+            x.begin(life);
+            Kit.due("a life in each run", Kit.row(x, 3), "1 2 f");
+        }
+    }
+
+    private static void manyHanded() {
+        DoorScan x = Kit.language("0=(R (call 0 v0))", "1=(R v0)");
+        int deep = Kit.put(x, "(call 0 1)");
+        int flat = Kit.put(x, "(call 1 (t 1 3))");
+        for (int i = 0; i < 200; i++) {
+            Kit.due("too deep", x.countHanded(deep, 1), 0);
+            Kit.due("not too deep", x.countHanded(flat, 20), 3);
         }
     }
 }

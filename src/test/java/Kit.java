@@ -117,12 +117,18 @@ final class Kit {
         int most = Math.max(1, want.split(" ").length);
         due("countHanded of " + want, x.countHanded(expression, most), due.size());
         for (int i = 0; i < due.size(); i++) {
-            String value = due.get(i);
             int index = i;
-            if (!value.startsWith("'")) {
-                due("handed " + i + " of " + want, answer(() -> x.handed(expression, index)), value);
-            }
+            due("handed " + i + " of " + want, answer(() -> x.handed(expression, index)), asNumber(due.get(i)));
         }
+    }
+
+    /** What handed answers for a value: a text too is a number, if it can be used as one. */
+    private static String asNumber(String value) {
+        if (!value.startsWith("'")) {
+            return value;
+        }
+        String text = value.substring(1, value.length() - 1);
+        return text.matches("-?[0-9]{1,9}") ? String.valueOf(Integer.parseInt(text)) : "UnsupportedOperation";
     }
 
     /** Reads the notation. */
