@@ -16,9 +16,9 @@ public final class DoorScan {
     private static final int CHECKED_STEPS = 100;
     private static final int CHECKED_VALUES = 3;
 
-    /** Bounds of the two ways' loops, which only values that are passed over without a step come near to. */
-    private static final int MOST_MOVES = 4000000;
-    private static final int CHECKED_MOVES = 20000;
+    /** Bounds of the two ways' loops: steps have limits of their own, values without a step have none. */
+    private static final long MOST_MOVES = 1L << 62;
+    private static final long CHECKED_MOVES = 1L << 20;
 
     /** Kinds that have a call of their own; the letters are none of those that make and assign know. */
     private static final char NUMBER = '0';
@@ -34,6 +34,8 @@ public final class DoorScan {
     private static final int IS_TEXT = 2;
     private static final int IS_LIFE = 3;
     private static final long LOWER = 0xFFFFFFFFL;
+    private static final int LEAST_NUMBER = -2147483648;
+    private static final int MOST_NUMBER = 2147483647;
 
     private final Program program;
     private final Machine run;
@@ -700,17 +702,21 @@ public final class DoorScan {
             if (sort != IS_TEXT) {
                 return NO_NUMBER;
             }
-            int length = copy((int) coded, read);
-            int start = length > 0 && read[0] == '-' ? 1 : 0;
-            if (length <= start || length - start > DIGITS) {
+            return readDigits(copy((int) coded, read), DIGITS, read);
+        }
+
+        /** The number that is written in a row, with so many digits at most, or NO_NUMBER. */
+        static long readDigits(int length, int most, char[] from) {
+            int start = length > 0 && from.length > 0 && from[0] == '-' ? 1 : 0;
+            if (length <= start || length - start > most) {
                 return NO_NUMBER;
             }
             long number = 0;
-            for (int i = start; i < length && i < read.length; i++) {
-                if (read[i] < '0' || read[i] > '9') {
+            for (int i = start; i < length && i < from.length; i++) {
+                if (from[i] < '0' || from[i] > '9') {
                     return NO_NUMBER;
                 }
-                number = number * 10 + (read[i] - '0');
+                number = number * 10 + (from[i] - '0');
             }
             return start == 1 ? -number : number;
         }
@@ -723,6 +729,9 @@ public final class DoorScan {
         private final char[] right = new char[MOST_LETTERS];
         private final char[] joined = new char[2 * MOST_LETTERS];
         private long result;
+        private int low;
+        private int high;
+        private boolean isTraced;
 
         Operations(Texts texts) {
             this.texts = texts;
@@ -780,6 +789,131 @@ public final class DoorScan {
             result = coded(IS_NUMBER, (int) answer);
             return 'v';
         }
+
+        // ---- what numbers are of use to the expression around the one that gives them
+
+        int low() {
+            return low;
+        }
+
+        int high() {
+            return high;
+        }
+
+        /** Whether the last one of numbers that are of no use leaves a trace, so that it has to be given. */
+        boolean isTraced() {
+            return isTraced;
+        }
+
+        void expectAll() {
+            expect(LEAST_NUMBER, MOST_NUMBER, false);
+        }
+
+        private void expectNone(boolean traced) {
+            expect(MOST_NUMBER, LEAST_NUMBER, traced);
+        }
+
+        private void expect(long least, long most, boolean traced) {
+            long from = Math.max(least, LEAST_NUMBER);
+            long to = Math.min(most, MOST_NUMBER);
+            low = from <= to ? (int) from : MOST_NUMBER;
+            high = from <= to ? (int) to : LEAST_NUMBER;
+            isTraced = traced;
+        }
+
+        /**
+         * Finds which numbers of a part are of use, if those from least to most are of the expression itself: behind
+         * any other one the part is gone back into at once, without a step, an error or a change but the last's trace.
+         */
+        void expectOf(int expression, int part, long one, int least, int most, boolean traced) {
+            char kind = texts.program.kindOf(expression);
+            expectAll();
+            switch (kind) {
+                case '|': case 'u': case 'S':
+                    expect(least, most, traced);
+                    break;
+                case ':': case 'r':
+                    expect(least, most, true);
+                    break;
+                case '&': case ';': case 'i': case 's':
+                    if (part > 1) {
+                        expect(least, most, traced);
+                    }
+                    break;
+                case 'e': case 'w':
+                    if (part == 3) {
+                        expect(least, most, traced);
+                    } else if (kind == 'e' && part == 1 && texts.program.partOf(expression, 2) == NONE) {
+                        expectNone(false);
+                    }
+                    break;
+                case 'T': case 'm': case 'P': case '[':
+                    if (kind != '[' || part == 3) {
+                        expect(-MOST_LETTERS - 1, MOST_LETTERS + 1, false);
+                    }
+                    break;
+                case 'l':
+                    if (part == 1) {
+                        expect(1, MOST_NUMBER, false);
+                    }
+                    break;
+                case '+': case '-': case '<': case '=': case 't': case '~':
+                    if (part == 2) {
+                        expectSecond(kind, one, least, most, traced);
+                    }
+                    break;
+                default:
+                    break;
+            }
+        }
+
+        /** Of the second part of a kind that uses it with each value of the first one. */
+        private void expectSecond(char kind, long first, int least, int most, boolean traced) {
+            // the text of an int has a digit more than a text may have that is used as a number
+            long one = kind == '~' ? Texts.readDigits(texts.load(first, left), Texts.DIGITS + 1, left)
+                    : texts.numberOf(first);
+            if (one == Texts.NO_NUMBER) {
+                expectNone(false);
+            } else if (kind == '~') {
+                expect(one, one, false);
+            } else if (kind == '+') {
+                expectMoved(least - one, most - one, traced);
+            } else if (kind == '-') {
+                expectMoved(one - most, one - least, traced);
+            } else {
+                // what the expression has given leaves the trace, even if it is of no use
+                long from = kind == '<' ? one + 1 : one;
+                long to = kind == '=' ? one : MOST_NUMBER;
+                if (!traced) {
+                    from = Math.max(from, least);
+                    to = kind == 't' && from <= most ? to : Math.min(to, most);
+                }
+                expect(from, to, false);
+            }
+        }
+
+        /** Of a sum or a difference, which wraps around. */
+        private void expectMoved(long from, long to, boolean traced) {
+            long turn = to < LEAST_NUMBER ? LOWER + 1 : from > MOST_NUMBER ? -LOWER - 1 : 0;
+            if (from > to) {
+                expectNone(traced);
+            } else if (from + turn >= LEAST_NUMBER && to + turn <= MOST_NUMBER) {
+                expect(from + turn, to + turn, traced);
+            }
+        }
+
+        /** The next number from this one on that a 't' gives, or one that is more than its last. */
+        static long counted(long from, long last, int least, int most, boolean traced) {
+            if (from > last || from >= least && from <= most) {
+                return from;
+            }
+            if (from < least && least <= most) {
+                return traced ? Math.min(least - 1L, last) : least;
+            }
+            return traced ? last : last + 1;
+        }
+
+        // ---- texts
 
         /** '.' and '~'. */
         private char join(char kind, long a, long b) {
@@ -948,6 +1082,10 @@ public final class DoorScan {
         private long two;
         private int x;
         private int y;
+        /** Which numbers are of use to the parent, and whether the last one of others leaves a trace. */
+        private int low;
+        private int high;
+        private boolean isTraced;
         private boolean marked;
         private Node pending;
 
@@ -1273,7 +1411,7 @@ public final class DoorScan {
         private final Heap heap;
         private final Life run;
         private final int[] chain = new int[MOST_CHAINED];
-        private final int mostMoves;
+        private final long mostMoves;
         private Life current;
         private int move;
         private Node at;
@@ -1284,7 +1422,7 @@ public final class DoorScan {
         private int chained;
         private int stepsLeft;
 
-        Machine(Program program, int mostMoves) {
+        Machine(Program program, long mostMoves) {
             this.program = program;
             this.mostMoves = mostMoves;
             texts = new Texts(program);
@@ -1359,7 +1497,7 @@ public final class DoorScan {
             outcome = 0;
             given = 0;
             enter(run);
-            for (int moves = 0; moves < mostMoves && outcome == 0; moves++) {
+            for (long moves = 0; moves < mostMoves && outcome == 0; moves++) {
                 if (heap.isTight() || texts.isTight()) {
                     collect();
                 }
@@ -1570,6 +1708,7 @@ public final class DoorScan {
                 return;
             }
             stepsLeft--;
+            expect(node);
             int amount = program.amountOf(node.expression);
             switch (node.kind) {
                 case NUMBER:
@@ -1614,6 +1753,21 @@ public final class DoorScan {
             }
         }
 
+        /** Which numbers are of use to the parent; those of 'S' go to the one that its procedure's call is in. */
+        private void expect(Node node) {
+            Node parent = node.parent;
+            if (parent == null) {
+                operations.expectAll();
+            } else {
+                Node call = parent.frame.call;
+                Node giver = parent.kind == 'S' && call != null ? call : parent;
+                operations.expectOf(parent.expression, node.part, parent.one, giver.low, giver.high, giver.isTraced);
+            }
+            node.low = operations.low();
+            node.high = operations.high();
+            node.isTraced = operations.isTraced();
+        }
+
         private void readVariable(Node node, int variable) {
             long coded = node.frame.get(variable);
             if (coded == 0) {
@@ -1654,19 +1808,13 @@ public final class DoorScan {
                     retreat(node);
                     break;
                 case 't':
-                    goOnCounting(node);
+                    count(node, node.x + 1L);
                     break;
                 case 'U': case 'F':
                     goOnSeeking(node);
                     break;
                 case 's':
                     enterScan(node);
-                    retreat(node);
-                    break;
-                case 'l':
-                    if (node.x <= 0) {
-                        node.second = null;
-                    }
                     retreat(node);
                     break;
                 case CALL:
@@ -1678,12 +1826,13 @@ public final class DoorScan {
             }
         }
 
-        private void goOnCounting(Node node) {
-            if (node.x < node.y) {
-                node.x++;
-                giveNumber(node, node.x);
-            } else {
+        private void count(Node node, long from) {
+            long next = Operations.counted(from, node.y, node.low, node.high, node.isTraced);
+            if (next > node.y) {
                 retreat(node);
+            } else {
+                node.x = (int) next;
+                giveNumber(node, node.x);
             }
         }
 
@@ -1800,6 +1949,10 @@ public final class DoorScan {
         private void limit(Node node, int part, long coded) {
             if (part == 2) {
                 node.x--;
+                if (node.x <= 0) {
+                    // nothing more is asked of what the first values are taken of
+                    node.second = null;
+                }
                 give(node, coded);
                 return;
             }
@@ -1864,12 +2017,11 @@ public final class DoorScan {
         private void startCounting(Node node, long coded) {
             long from = texts.numberOf(node.one);
             long to = texts.numberOf(coded);
-            if (from == Texts.NO_NUMBER || to == Texts.NO_NUMBER || from > to) {
+            if (from == Texts.NO_NUMBER || to == Texts.NO_NUMBER) {
                 retreat(node);
             } else {
-                node.x = (int) from;
                 node.y = (int) to;
-                giveNumber(node, node.x);
+                count(node, from);
             }
         }
 
@@ -1985,22 +2137,9 @@ public final class DoorScan {
                 loop.second = null;
                 retreat(loop);
             } else {
-                Node left = boundedAround(node, loop);
-                leaveScans(node, left);
-                fail(left);
+                // the next value of a comes from the latest place in it, as behind any failing
+                fail(node);
             }
-        }
-
-        /** The outermost expression within the loop's a of which a bounded part is left, or the inner one. */
-        private static Node boundedAround(Node inner, Node loop) {
-            Node outermost = inner;
-            for (Node node = inner; node != loop && node.parent != null; node = node.parent) {
-                char kind = node.parent.kind;
-                if (node.part == 1 && (kind == ';' || kind == 'i' || kind == '!' || kind == 'R')) {
-                    outermost = node.parent;
-                }
-            }
-            return outermost;
         }
 
         // ---- scanning
@@ -2139,6 +2278,10 @@ public final class DoorScan {
         private long two;
         private int x;
         private int y;
+        /** Which numbers are of use to the receiver, and whether the last one of others leaves a trace. */
+        private int low;
+        private int high;
+        private boolean isTraced;
         /** How many expressions are open, and how many rooms are used, with this entry on top. */
         private int open;
         private int rooms;
@@ -2215,9 +2358,8 @@ public final class DoorScan {
         private static final char RESTORE_PLACE = '2';
         private static final char LEAVE_SCAN = '3';
         private static final char ENTER_SCAN = '4';
-        private static final char LEAVE_FIRST_VALUES = '5';
-        private static final char COUNT = '6';
-        private static final char SEEK = '7';
+        private static final char COUNT = '5';
+        private static final char SEEK = '6';
         /** An open expression has two notes at most. */
         private static final int HEIGHT = 4 * MOST_OPEN;
 
@@ -2232,7 +2374,7 @@ public final class DoorScan {
         private int height;
         private int openNow;
         private int stepsLeft;
-        private int mostMoves;
+        private long mostMoves;
         private long subject;
         private int place;
         private int move;
@@ -2252,7 +2394,7 @@ public final class DoorScan {
             }
         }
 
-        void prepare(int expression, int steps, int moves) {
+        void prepare(int expression, int steps, long moves) {
             texts.clear();
             rooms.leave(0);
             root = expression;
@@ -2291,7 +2433,7 @@ public final class DoorScan {
                 begun = true;
                 openAs(root, NONE, 0, rooms.take(NONE, NONE));
             }
-            for (int moves = 0; moves < mostMoves && outcome == 0; moves++) {
+            for (long moves = 0; moves < mostMoves && outcome == 0; moves++) {
                 if (texts.isTight()) {
                     collect();
                 }
@@ -2433,6 +2575,7 @@ public final class DoorScan {
         // ---- an expression is begun
 
         private void start(int index, Entry entry) {
+            expect(entry);
             switch (entry.kind) {
                 case NUMBER:
                     giveNumber(index, amountOf(entry));
@@ -2474,6 +2617,21 @@ public final class DoorScan {
                     open(index, 1);
                     break;
             }
+        }
+
+        /** Which numbers are of use to the receiver; those of 'S' go to the one that its procedure's call is in. */
+        private void expect(Entry entry) {
+            if (entry.receiver == NONE) {
+                operations.expectAll();
+            } else {
+                Entry receiver = entry(entry.receiver);
+                Entry giver = receiver.kind == 'S' ? entry(rooms.callOf(receiver.room)) : receiver;
+                operations.expectOf(receiver.expression, entry.part, receiver.one, giver.low, giver.high,
+                        giver.isTraced);
+            }
+            entry.low = operations.low();
+            entry.high = operations.high();
+            entry.isTraced = operations.isTraced();
         }
 
         private void readVariable(int index, long coded) {
@@ -2519,24 +2677,22 @@ public final class DoorScan {
                     pop();
                     break;
                 case COUNT:
-                    goOnCounting(index, of);
-                    break;
-                case SEEK:
-                    goOnSeeking(index, of);
+                    count(index, of, of.x + 1L);
                     break;
                 default:
-                    // what first values are taken of is left
-                    leave(of.y);
+                    goOnSeeking(index, of);
                     break;
             }
         }
 
-        private void goOnCounting(int index, Entry entry) {
-            if (entry.x < entry.y) {
-                entry.x++;
-                giveNumber(index, entry.x);
-            } else {
+        /** Goes on from this number on, with the note of the counting on top. */
+        private void count(int index, Entry entry, long from) {
+            long next = Operations.counted(from, entry.y, entry.low, entry.high, entry.isTraced);
+            if (next > entry.y) {
                 pop();
+            } else {
+                entry.x = (int) next;
+                giveNumber(index, entry.x);
             }
         }
 
@@ -2698,7 +2854,8 @@ public final class DoorScan {
             if (part == 2) {
                 entry.x--;
                 if (entry.x <= 0) {
-                    note(LEAVE_FIRST_VALUES, index);
+                    // nothing more is asked of what the first values are taken of
+                    leave(entry.y);
                 }
                 give(index, coded);
                 return;
@@ -2759,15 +2916,14 @@ public final class DoorScan {
         }
 
         private void startCounting(int index, long from, long to) {
-            if (from == Texts.NO_NUMBER || to == Texts.NO_NUMBER || from > to) {
+            if (from == Texts.NO_NUMBER || to == Texts.NO_NUMBER) {
                 move = BACK;
                 return;
             }
             Entry entry = entry(index);
-            entry.x = (int) from;
             entry.y = (int) to;
             note(COUNT, index);
-            giveNumber(index, entry.x);
+            count(index, entry, from);
         }
 
         // ---- loops
@@ -2836,25 +2992,9 @@ public final class DoorScan {
                 leaveScans(index, loop);
                 leave(entry(loop).x);
             } else {
-                int left = boundedAround(index, loop);
-                leaveScans(index, left);
-                leave(left);
+                // the next value of a comes from the latest place in it, as behind any failing
+                pop();
             }
-        }
-
-        /** The outermost entry within the loop's a of which a bounded part is left, or the inner one. */
-        private int boundedAround(int index, int loop) {
-            int outermost = index;
-            int inner = index;
-            for (int i = 0; i < HEIGHT && inner != loop && inner != NONE; i++) {
-                int around = entry(inner).receiver;
-                char kind = entry(around).kind;
-                if (entry(inner).part == 1 && (kind == ';' || kind == 'i' || kind == '!' || kind == 'R')) {
-                    outermost = around;
-                }
-                inner = around;
-            }
-            return outermost;
         }
 
         // ---- scanning

@@ -45,13 +45,32 @@ public final class LoopsTest {
         Kit.values("0 f", "(; (: 1 0) (; (e (: 0 (t 1 3)) (; n (: 1 (+ v1 1)))) v1))");
         Kit.values("4 f", "(; (: 0 0) (; (w (< (: 0 (+ v0 1)) 4) (; n (b 9))) v0))");
         Kit.values("3 f", "(; (: 0 0) (; (w (; (: 0 (+ v0 1)) (; (i (< v0 3) n) (< 2 1)))) v0))");
-        // in the a of an 'e': as if its b were done, the latest place of a is gone back to
+        goingOnInTheFirstPart();
+    }
+
+    /** In the a of an 'e': the latest place that may give another value is gone back to, as behind any failing. */
+    private static void goingOnInTheFirstPart() {
         Kit.values("3 f", "(; (e (& (: 0 (t 1 3)) n)) v0)");
         Kit.values("2 f", "(; (: 1 0) (; (e (& (: 0 (t 1 3)) (i (= v0 2) n v0)) (: 1 (+ v1 1))) v1))");
-        Kit.values("3 f", "(; (: 1 0) (; (e (& (: 0 (t 1 3)) (; n 5)) (: 1 9)) (+ v1 v0)))");
-        Kit.values("0 f", "(; (: 1 0) (; (e (! n) (: 1 9)) v1))");
-        Kit.values("9 f", "(; (: 1 0) (; (e (| (! n) 5) (: 1 9)) v1))");
-        Kit.values("0 f", "(; (: 1 0) (; (e (; (& (t 1 3) n) 5) (: 1 9)) v1))");
+        // also where a bounded part is around it, within the a
+        Kit.values("5 f", "(; (e (: 0 (; n 5))) v0)");
+        Kit.values("5 f", "(; (e (: 0 (; (| n 3) 5))) v0)");
+        Kit.values("3 f", "(; (e (: 0 (; (: 1 (| n 3)) 5))) v1)");
+        Kit.values("12 f", "(; (: 1 0) (; (e (& (: 0 (t 1 3)) (; n 5)) (: 1 9)) (+ v1 v0)))");
+        Kit.values("9 f", "(; (: 1 0) (; (e (! n) (: 1 9)) v1))");
+        Kit.values("0 f", "(; (e (: 0 (! n))) v0)");
+        Kit.values("0 f", "(; (: 0 0) (; (e (: 0 (! (| n 6)))) v0))");
+        Kit.values("6 f", "(; (e (: 0 (i n 5 6))) v0)");
+        Kit.values("5 f", "(; (e (: 0 (i (| n 3) 5 6))) v0)");
+        Kit.values("9 f", "(; (: 1 0) (; (e (; (& (t 1 3) n) 5) (: 1 9)) v1))");
+        Kit.values("2 f", "(; (: 0 0) (; (e (; (& (: 0 (t 1 3)) (i (= v0 2) 1 n)) 5)) v0))");
+        // a scanning that is failed out of is left
+        Kit.values("4 4 f", "(s 'abc' (; (T 4) (; (e (; (s 'xy' (& (T 2) n)) (: 0 p))) (| v0 p))))");
+        // the 'R' of a procedure has no value then; what is behind the loop is not begun
+        Kit.values("7 f", "(| (call 0 1) 7)", "0=(; (e (R n)) (R 5))");
+        Kit.values("3 7 f", "(| (call 0 1) 7)", "0=(; (e (R (| n 3))) (R 5))");
+        // in the a of a 'w' it goes on with that loop
+        Kit.values("3 f", "(; (: 0 0) (; (w (; (: 0 (+ v0 1)) (& (i (< v0 3) (; n 8) 8) (b 1)))) v0))");
     }
 
     private static void nested() {

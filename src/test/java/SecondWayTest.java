@@ -3,6 +3,7 @@ public final class SecondWayTest {
     public static void main(String[] args) {
         promise24();
         open();
+        firstValues();
         promise25();
         promise31();
         Kit.end();
@@ -93,6 +94,23 @@ public final class SecondWayTest {
         peak(12, "(& (call 0 #0) (+ #0 (+ #0 #0)))", "0=(S (& #0 #0))");
         peak(5, "(call 0 #0 #0)", "0=(R #0)");
         peak(6, "(| (call 0 #0) #0)", "0=(& #0 #0)");
+    }
+
+    /** What the first values are taken of is open until the last one of them is given, and left then. */
+    private static void firstValues() {
+        peak(6, "(& (l (+ #0 #0) #0) #0)");
+        peak(6, "(& (l (+ #0 #0) #0) (+ #0 #0))");
+        peak(10, "(& (l (+ #0 #0) #0) (& #0 (& #0 (+ #0 #0))))");
+        peak(9, "(& (l (t #0 #0) 2) (& #0 #0))");
+        peak(9, "(& (l (t #0 #0) (+ #0 #0)) #0)");
+        peak(8, "(& (l (| #0 #0) 1) (& #0 (& #0 #0)))");
+        peak(11, "(& (l (& #0 (& #0 #0)) 2) (& #0 #0))");
+        peak(9, "(& (& (l (& #0 #0) (| 1 2)) #0) (& #0 #0))");
+        // what is left there is not undone
+        Kit.values("5 5 f", "(| (l (u 0 5) 1) v0)");
+        Kit.values("5 !x", "(| (l (u 0 5) 2) v0)");
+        Kit.values("1 2 2 f", "(| (l (u 0 (t 1 5)) 2) v0)");
+        Kit.values("'a' 2 f", "(s 'abc' (| (l (m 1) 1) p))");
     }
 
     private static void promise25() {
