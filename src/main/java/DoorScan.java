@@ -18,7 +18,7 @@ public final class DoorScan {
 
     /** Bounds of the two ways' loops: steps have limits of their own, values without a step have none. */
     private static final long MOST_MOVES = 1L << 62;
-    private static final long CHECKED_MOVES = 1L << 20;
+    private static final long CHECKED_MOVES = 1L << 16;
 
     /** Kinds that have a call of their own; the letters are none of those that make and assign know. */
     private static final char NUMBER = '0';
@@ -809,8 +809,8 @@ public final class DoorScan {
             expect(LEAST_NUMBER, MOST_NUMBER, false);
         }
 
-        private void expectNone(boolean traced) {
-            expect(MOST_NUMBER, LEAST_NUMBER, traced);
+        private void expectNone() {
+            expect(MOST_NUMBER, LEAST_NUMBER, false);
         }
 
         private void expect(long least, long most, boolean traced) {
@@ -844,7 +844,7 @@ public final class DoorScan {
                     if (part == 3) {
                         expect(least, most, traced);
                     } else if (kind == 'e' && part == 1 && texts.program.partOf(expression, 2) == NONE) {
-                        expectNone(false);
+                        expectNone();
                     }
                     break;
                 case 'T': case 'm': case 'P': case '[':
@@ -873,7 +873,7 @@ public final class DoorScan {
             long one = kind == '~' ? Texts.readDigits(texts.load(first, left), Texts.DIGITS + 1, left)
                     : texts.numberOf(first);
             if (one == Texts.NO_NUMBER) {
-                expectNone(false);
+                expectNone();
             } else if (kind == '~') {
                 expect(one, one, false);
             } else if (kind == '+') {
@@ -895,9 +895,7 @@ public final class DoorScan {
         /** Of a sum or a difference, which wraps around. */
         private void expectMoved(long from, long to, boolean traced) {
             long turn = to < LEAST_NUMBER ? LOWER + 1 : from > MOST_NUMBER ? -LOWER - 1 : 0;
-            if (from > to) {
-                expectNone(traced);
-            } else if (from + turn >= LEAST_NUMBER && to + turn <= MOST_NUMBER) {
+            if (from > to || from + turn >= LEAST_NUMBER && to + turn <= MOST_NUMBER) {
                 expect(from + turn, to + turn, traced);
             }
         }
@@ -2300,8 +2298,9 @@ public final class DoorScan {
             return used;
         }
 
-        void leave(int first) {
-            used = Math.max(0, Math.min(first, used));
+        /** Uses so many rooms again as were used at another time. */
+        void useAgain(int many) {
+            used = Math.max(0, Math.min(many, MOST));
         }
 
         /** Takes a room for a call in another room, both NONE for the run itself; answers NONE if all are used. */
@@ -2396,7 +2395,7 @@ public final class DoorScan {
 
         void prepare(int expression, int steps, long moves) {
             texts.clear();
-            rooms.leave(0);
+            rooms.useAgain(0);
             root = expression;
             begun = false;
             height = 0;
@@ -2482,7 +2481,7 @@ public final class DoorScan {
             height = Math.max(0, Math.min(first, height));
             Entry top = entry(height - 1);
             openNow = height == 0 ? 0 : top.open;
-            rooms.leave(height == 0 ? 1 : top.rooms);
+            rooms.useAgain(height == 0 ? 1 : top.rooms);
             move = BACK;
         }
 
@@ -2689,7 +2688,7 @@ public final class DoorScan {
         private void count(int index, Entry entry, long from) {
             long next = Operations.counted(from, entry.y, entry.low, entry.high, entry.isTraced);
             if (next > entry.y) {
-                pop();
+                leave(height - 1);
             } else {
                 entry.x = (int) next;
                 giveNumber(index, entry.x);
@@ -2972,6 +2971,8 @@ public final class DoorScan {
             leaveScans(index, loop);
             leave(loop);
             if (expression != NONE) {
+                // a loop that is the body of a procedure is left, but not the procedure
+                rooms.useAgain(entry(loop).rooms);
                 openAs(expression, entry(loop).receiver, entry(loop).part, entry(loop).room);
             }
         }

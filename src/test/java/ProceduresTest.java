@@ -6,6 +6,7 @@ public final class ProceduresTest {
         returning();
         recursion();
         errors();
+        loopsAsBodies();
         Kit.end();
     }
 
@@ -78,5 +79,14 @@ public final class ProceduresTest {
         Kit.values("!b", "(e (t 1 3) (call 0 1))", "0=b");
         Kit.values("!b", "(e (t 1 3) (call 0 1))", "0=n");
         Kit.values("7 f", "(e (t 1 3) (call 0 (b 7)))", "0=1");
+    }
+
+    /** A loop that is the body is left by 'b', but not the procedure, which has its variables still. */
+    private static void loopsAsBodies() {
+        Kit.values("10 f", "(call 0 7)", "0=(e 1 (b (R (+ (call 1 3) v0))))", "1=(R v0)");
+        Kit.values("10 11 f", "(call 0 7)", "0=(w 1 (b (S (+ (call 1 3) v0))))", "1=(| (S v0) (S (+ v0 1)))");
+        Kit.values("7 5 7 f", "(call 0 7)", "0=(e (b (| (S v0) (| (S (call 1 5)) (S v0)))))", "1=(e (b (S v0)) 2)");
+        Kit.values("7 8 f", "(call 0 (t 7 8))", "0=(w (b (e (b (S (; (call 1 3) v0))))))", "1=(: 0 9)");
+        Kit.values("3 f", "(| (call 0 7) 3)", "0=(e 1 (b (call 1 3)))", "1=(R v0)");
     }
 }
