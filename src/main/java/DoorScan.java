@@ -564,11 +564,15 @@ public final class DoorScan {
         private static final int AT_FIRST = 128;
         private static final int MOST = 1 << 20;
         private static final int MOST_IN_A_MOVE = 4;
+        /** Letters are packed, eight in a long, as what is kept is counted by its elements. */
+        private static final int IN_A_LONG = 8;
+        private static final int LETTER = (1 << IN_A_LONG) - 1;
+        private static final int LONGS = (MOST_LETTERS + IN_A_LONG - 1) / IN_A_LONG;
         private static final int DIGITS = 9;
 
         private final Program program;
         private final char[] read = new char[MOST_LETTERS];
-        private char[] letters = new char[AT_FIRST * MOST_LETTERS];
+        private long[] packed = new long[AT_FIRST * LONGS];
         private int[] lengths = new int[AT_FIRST];
         private boolean[] marks = new boolean[AT_FIRST];
         private int[] spare = new int[AT_FIRST];
@@ -604,9 +608,22 @@ public final class DoorScan {
             if (slot < 0 || slot >= lengths.length) {
                 return EMPTY;
             }
-            System.arraycopy(from, start, letters, slot * MOST_LETTERS, length);
+            pack(from, start, length, slot * LONGS);
             lengths[slot] = length;
             return ((long) IS_TEXT << 32) | slot;
+        }
+
+        private void pack(char[] from, int start, int length, int first) {
+            int at = first;
+            long row = 0;
+            for (int i = 0; i < length; i++) {
+                row |= (long) from[start + i] << IN_A_LONG * (i % IN_A_LONG);
+                if (i % IN_A_LONG == IN_A_LONG - 1 || i == length - 1) {
+                    packed[at] = row;
+                    at++;
+                    row = 0;
+                }
+            }
         }
 
         void mark(long coded) {
@@ -636,13 +653,13 @@ public final class DoorScan {
             if (size <= lengths.length || size > MOST) {
                 return;
             }
-            char[] moreLetters = new char[size * MOST_LETTERS];
+            long[] morePacked = new long[size * LONGS];
             int[] moreLengths = new int[size];
             int[] moreSpare = new int[size];
-            System.arraycopy(letters, 0, moreLetters, 0, letters.length);
+            System.arraycopy(packed, 0, morePacked, 0, packed.length);
             System.arraycopy(lengths, 0, moreLengths, 0, lengths.length);
             System.arraycopy(spare, 0, moreSpare, 0, spare.length);
-            letters = moreLetters;
+            packed = morePacked;
             lengths = moreLengths;
             spare = moreSpare;
             marks = new boolean[size];
@@ -666,7 +683,10 @@ public final class DoorScan {
                 return 0;
             }
             if (content >= 0) {
-                System.arraycopy(letters, content * MOST_LETTERS, into, 0, lengths[content]);
+                int first = content * LONGS;
+                for (int i = 0; i < lengths[content]; i++) {
+                    into[i] = (char) (packed[first + i / IN_A_LONG] >>> IN_A_LONG * (i % IN_A_LONG) & LETTER);
+                }
                 return lengths[content];
             }
             System.arraycopy(program.letters, expression * MOST_LETTERS, into, 0, program.lengths[expression]);
@@ -1360,7 +1380,7 @@ public final class DoorScan {
             nodesUsed = kept;
             sweepFrames();
             taken = nodesUsed + framesUsed + sweepLives();
-            limit = Math.max(AT_FIRST, 2 * taken);
+            limit = Math.max(AT_FIRST, taken + taken / 2);
         }
 
         private void sweepFrames() {
