@@ -15,6 +15,7 @@ public final class KeptTest {
             lives(churn);
         }
         passing();
+        manyAtOnce();
         nextRuns();
         manyHanded();
         Kit.end();
@@ -78,6 +79,22 @@ public final class KeptTest {
             Kit.values("0 f", "(! (e (: 1 (t 1 35)) (; (: 0 " + text + ") (; (. v0 'q')"
                     + " (i (~ v0 (. 'x' v1)) 1 (b 9))))))");
         }
+    }
+
+    /** More texts than there is room for at first: each life has one, and the life that was made ahead of it. */
+    private static void manyAtOnce() {
+        DoorScan x = Kit.language();
+        String make = "(e (: 2 (t 1 70)) (; (: 1 (. 'x' (: 3 (. v2 '')))) (; (. 'y' v2) (: 0 (c (| v0 v1))))))";
+        String follow = "(e (t 1 23) (; (: 4 (@ v0)) (; (: 1 (@ v0)) (: 0 v4))))";
+        int first = Kit.put(x, make);
+        int second = Kit.put(x, "(; " + follow + " v1)");
+        int rest = Kit.put(x, "(r (@ v0))");
+        for (int i = 0; i < 3; i++) {
+            rest = x.make('|', second, rest, -1);
+        }
+        int row = Kit.put(x, "(; (: 0 0) (; #" + first + " (| 1 #" + rest + ")))");
+        x.begin(row);
+        Kit.due("texts of many lives", Kit.row(x, 6), "1 'x48' 'x25' 'x2' 0 'x1'");
     }
 
     /** What was left of a run does not come up in the next one. */

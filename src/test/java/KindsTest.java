@@ -6,6 +6,7 @@ public final class KindsTest {
         bounded();
         variables();
         exchanges();
+        Kit.values("1 2 9 f", "(; (: 0 0) (| (r (: 0 (& (< v0 2) (+ v0 1)))) 9))");
         Kit.end();
     }
 

@@ -11,6 +11,11 @@ public final class LoopsTest {
         Kit.values("3 f", "(; (: 0 0) (; (w (< (: 0 (+ v0 1)) 3) (< 2 1)) v0))");
         Kit.values("1 f", "(; (: 0 0) (; (w (i (< v0 1) (t 1 2)) (: 0 (+ v0 1))) v0))");
         Kit.values("1 f", "(; (: 0 0) (; (w (i (< v0 1) (t 1 2)) (; (: 0 (+ v0 1)) n)) v0))");
+        // what is bounded is left in each round: only the last a is gone back into, and has its second part begun
+        Kit.values("1 f", "(; (: 0 0) (; (: 1 0) (; (w (| (< (: 0 (+ v0 1)) 3) (& (: 1 (+ v1 1)) (< 2 1)))) v1)))");
+        Kit.values("1 f", "(; (: 0 0) (; (: 1 0) (; (w (| (< (: 0 (+ v0 1)) 3) (& (: 1 (+ v1 1)) (< 2 1))) n) v1)))");
+        Kit.values("1 f", "(; (: 0 0) (; (: 1 0) (; (w (| (< (: 0 (+ v0 1)) 3) (& (: 1 (+ v1 1)) (< 2 1))) 7) v1)))");
+        Kit.values("0 f", "(; (: 0 0) (; (: 1 0) (; (w (< (: 0 (+ v0 1)) 3) (| n (: 1 (+ v1 1)))) v1)))");
         leaving();
         goingOn();
         nested();

@@ -6,6 +6,9 @@ public final class ScanningTest {
         matches();
         leaving();
         goingOnIn();
+        // without a scanning of its own a procedure has the place as it is when it is gone back into
+        Kit.values("1 3 f", "(s 'abc' (& (: 0 (call 0 1)) (; (T 3) v0)))", "0=(& 1 (S (| p p)))");
+        Kit.values("1 1 f", "(s 'abc' (& (: 0 (call 0 1)) (; (T 3) v0)))", "0=(s 'de' (& 1 (S (| p p))))");
         Kit.end();
     }
 

@@ -91,6 +91,16 @@ public final class SecondWayTest {
         peak(6, "(| (w (; (+ #0 #0) (< #0 #0))) #0)");
         peak(6, "(s 'a' (s 'b' (T #0)))");
         peak(8, "(& (call 0 #0) (+ #0 (+ #0 #0)))", "0=(R (& #0 #0))");
+        // also where what is left was all but the outermost one
+        for (char kind : new char[] {';', 'i', '|'}) {
+            for (int open = 149; open <= 150; open++) {
+                DoorScan x = new DoorScan();
+                int inner = around(x, x.number(1), open - 1);
+                int first = kind == '|' ? x.make('=', x.number(2), 0, -1) : 0;
+                int row = x.make(kind, first, inner, -1);
+                Kit.due("all but one of " + open + " behind " + kind, x.countHanded(row, 1), open == 149 ? 1 : 0);
+            }
+        }
         peak(12, "(& (call 0 #0) (+ #0 (+ #0 #0)))", "0=(S (& #0 #0))");
         peak(5, "(call 0 #0 #0)", "0=(R #0)");
         peak(6, "(| (call 0 #0) #0)", "0=(& #0 #0)");
