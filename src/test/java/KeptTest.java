@@ -84,7 +84,7 @@ public final class KeptTest {
     /** More texts than there is room for at first: each life has one, and the life that was made ahead of it. */
     private static void manyAtOnce() {
         DoorScan x = Kit.language();
-        String make = "(e (: 2 (t 1 70)) (; (: 1 (. 'x' (: 3 (. v2 '')))) (; (. 'y' v2) (: 0 (c (| v0 v1))))))";
+        String make = "(e (: 2 (t 1 70)) (; (: 1 (. 'x' (: 3 (. v2 '')))) (; (. 'y' v2) (: 0 (c (| v0 (. v1 v3)))))))";
         String follow = "(e (t 1 23) (; (: 4 (@ v0)) (; (: 1 (@ v0)) (: 0 v4))))";
         int first = Kit.put(x, make);
         int second = Kit.put(x, "(; " + follow + " v1)");
@@ -94,7 +94,7 @@ public final class KeptTest {
         }
         int row = Kit.put(x, "(; (: 0 0) (; #" + first + " (| 1 #" + rest + ")))");
         x.begin(row);
-        Kit.due("texts of many lives", Kit.row(x, 6), "1 'x48' 'x25' 'x2' 0 'x1'");
+        Kit.due("texts of many lives", Kit.row(x, 6), "1 'x4848' 'x2525' 'x22' 0 'x11'");
     }
 
     /** What was left of a run does not come up in the next one. */
