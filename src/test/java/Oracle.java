@@ -2,6 +2,7 @@ import java.util.ArrayList;
 import java.util.Arrays;
 import java.util.List;
 import java.util.concurrent.SynchronousQueue;
+import java.util.function.IntConsumer;
 
 /**
  * A third way to find the values of an expression, in the plainest words: each expression is a method that hands its
@@ -162,21 +163,21 @@ final class Oracle {
 
     // ---- runs
 
-    /** What a run answers to the first so many calls of next, with all that can be asked then. */
-    List<String> run(int expression, int most) {
+    /** What a run answers to the first so many calls of next, with all that can be asked then; after each is told. */
+    List<String> run(int expression, int most, IntConsumer after) {
         isHanded = false;
-        return rows(expression, most);
+        return rows(expression, most, after);
     }
 
     /** The values that are handed on, as numbers, or null for what is none. */
     List<String> handed(int expression, int most) {
         isHanded = true;
-        return rows(expression, most);
+        return rows(expression, most, count -> { });
     }
 
-    private List<String> rows(int expression, int most) {
+    private List<String> rows(int expression, int most, IntConsumer after) {
         List<String> rows = new ArrayList<>();
-        find(expression, most, rows);
+        find(expression, most, rows, after);
         for (Thread life : threads) {
             life.interrupt();
         }
@@ -184,7 +185,7 @@ final class Oracle {
         return rows;
     }
 
-    private void find(int expression, int most, List<String> rows) {
+    private void find(int expression, int most, List<String> rows, IntConsumer after) {
         steps = 0;
         stepsBefore = 0;
         open = 0;
@@ -197,6 +198,7 @@ final class Oracle {
             eval(expression, new Around(frame, null, null), value -> {
                 rows.add(isHanded ? shown(value) : row("v " + shown(value), frame));
                 stepsBefore = steps;
+                after.accept(rows.size());
                 if (rows.size() == most) {
                     throw enough;
                 }

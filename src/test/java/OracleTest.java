@@ -212,8 +212,16 @@ public final class OracleTest {
     // ---- what both answer
 
     private void checkRun(int expression) {
-        int most = 12;
-        List<String> due = oracle.run(expression, most);
+        int most = below(8) == 0 ? 60 : 12;
+        // behind one of the values a procedure may have another body
+        int changed = below(4) == 0 ? 1 + below(3) : 0;
+        int procedure = below(4);
+        int body = below(count);
+        List<String> due = oracle.run(expression, most, found -> {
+            if (found == changed) {
+                oracle.define(procedure, body);
+            }
+        });
         List<String> got = new ArrayList<>();
         x.begin(expression);
         long before = x.steps();
@@ -221,8 +229,24 @@ public final class OracleTest {
         while (got.size() < most && answer == 'v') {
             answer = x.next();
             got.add(row(answer, before));
+            if (answer == 'v' && got.size() == changed) {
+                x.define(procedure, body);
+            }
+            askAside();
         }
         Kit.due(name + ": the run of " + expression, String.join("\n", got), String.join("\n", due));
+    }
+
+    /** What changes nothing of the run. */
+    private void askAside() {
+        int chosen = below(30);
+        if (chosen == 0) {
+            x.isSound();
+        } else if (chosen == 1) {
+            x.countHanded(below(count), 3);
+        } else if (chosen == 2) {
+            Kit.throwing(name + ": no such expression", "IndexOutOfBounds", () -> x.begin(count));
+        }
     }
 
     private String row(char answer, long before) {
