@@ -79,7 +79,8 @@ public final class FaceTest {
             String code = line.replaceAll("//.*", "").replaceAll("'.'", "''").trim();
             for (String bad : new String[] {"->", "::", "catch", "finally", "synchronized", "assert ", "instanceof",
                 "toString", "hashCode", "Exact(", "static {", "@Override", "\" +", "+ \""}) {
-                Kit.due(bad + " in " + line, !code.startsWith("*") && !code.startsWith("/*") && code.contains(bad), false);
+                boolean isComment = code.startsWith("*") || code.startsWith("/*");
+                Kit.due(bad + " in " + line, !isComment && code.contains(bad), false);
             }
             Kit.due("signs of " + line, line.chars().allMatch(sign -> sign >= 32 && sign < 127), true);
             Kit.due("the length of " + line, line.length() <= 120, true);

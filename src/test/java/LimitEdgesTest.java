@@ -87,8 +87,9 @@ public final class LimitEdgesTest {
             "(x 0 1)", "(y 0 1)", "(c 1)"}) {
             stepsOf(1, one);
         }
-        for (String two : new String[] {"(: 0 1)", "(u 0 1)", "(! 1)", "(T 1)", "(m 0)", "(P 1)", "(A 1)", "(M 1)", "(U 1)",
-            "(F 1)", "(H 1)", "(@ 1)", "(^ 1)", "(^ (c 1))", "(call 0 1)", "(e 1)", "(e b 1)", "(e n 1)", "(w b 1)", "(t b 1)"}) {
+        for (String two : new String[] {"(: 0 1)", "(u 0 1)", "(! 1)", "(T 1)", "(m 0)", "(P 1)", "(A 1)", "(M 1)",
+            "(U 1)", "(F 1)", "(H 1)", "(@ 1)", "(^ 1)", "(^ (c 1))", "(call 0 1)", "(e 1)", "(e b 1)", "(e n 1)",
+            "(w b 1)", "(t b 1)"}) {
             stepsOf(2, two);
         }
         for (String three : new String[] {"(+ 1 2)", "(- 1 2)", "(* 1 2)", "(/ 1 2)", "(. 1 2)", "(< 1 2)", "(= 1 2)",
@@ -213,8 +214,8 @@ public final class LimitEdgesTest {
 
     /** "a chain of places: the expression at which it comes" */
     private static void places() {
-        String[] errors = {"x v3", "x (x 0 1)", "x (y 0 1)", "x (call 2 1)", "z (/ 1 0)", "b n", "b b", "b (b 1)", "b (S 1)",
-            "b (R 1)", "b R", "b f", "t (@ 1)", "t (^ 'a')", "d (call 1 31)",
+        String[] errors = {"x v3", "x (x 0 1)", "x (y 0 1)", "x (call 2 1)", "z (/ 1 0)", "b n", "b b", "b (b 1)",
+            "b (S 1)", "b (R 1)", "b R", "b f", "t (@ 1)", "t (^ 'a')", "d (call 1 31)",
             "o (. 1 '123456789012345678901234567890123456789012345678901234567890')", "l (e (r 1))",
             "d " + nested(9, "1")};
         for (String error : errors) {
@@ -306,8 +307,9 @@ public final class LimitEdgesTest {
 
     /** "'t' comes at a 'c'", and "those ahead of an error count" */
     private static void handedErrors() {
-        for (String error : new String[] {"(c 1)", "(! (c 1))", "(@ 1)", "(^ 1)", "(@ (c 1))", "v0", "(/ 1 0)", "n", "f", "b",
-            "(call 1 1)", "(call 0 1)", "(. '12345678901234567890123456789012345678901234567890' '12345678901')", "(e (r 1))"}) {
+        String fifty = "'" + "1234567890".repeat(5) + "'";
+        for (String error : new String[] {"(c 1)", "(! (c 1))", "(@ 1)", "(^ 1)", "(@ (c 1))", "v0", "(/ 1 0)", "n",
+            "f", "b", "(call 1 1)", "(call 0 1)", "(. " + fifty + " '12345678901')", "(e (r 1))"}) {
             for (int values = 0; values <= 2; values++) {
                 DoorScan x = Kit.language("0=(S (c 1))");
                 int row = Kit.put(x, "(| (t 1 " + values + ") " + error + ")");

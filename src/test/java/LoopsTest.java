@@ -81,8 +81,8 @@ public final class LoopsTest {
     private static void nested() {
         Kit.values("9 f", "(e (t 1 3) (e (t 1 3) (b (b 9))))");
         Kit.values("5 f", "(e (t 1 3) (b (e (t 1 3) (b 5))))");
-        Kit.values("6 f", "(; (: 0 0) (; (e (t 1 3) (e (t 1 9) (; (: 0 (+ v0 1)) (i (= v0 6) (b (b 1)) (i (= v0 3) b)))))"
-                + " v0))");
+        Kit.values("6 f", "(; (: 0 0) (; (e (t 1 3)"
+                + " (e (t 1 9) (; (: 0 (+ v0 1)) (i (= v0 6) (b (b 1)) (i (= v0 3) b))))) v0))");
         Kit.values("4 f", "(; (: 0 0) (; (e (t 1 2) (e (t 1 2) (; (: 0 (+ v0 1)) n))) v0))");
         Kit.values("2 f", "(; (: 0 0) (; (e (t 1 2) (e (t 1 2) (; (: 0 (+ v0 1)) (b n)))) v0))");
         Kit.values("7 f", "(e (t 1 3) (+ 1 (b 7)))");

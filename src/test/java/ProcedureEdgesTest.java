@@ -154,8 +154,8 @@ public final class ProcedureEdgesTest {
         }
         for (int p = 0; p <= 5; p++) {
             Kit.values(p + 10 + " f", "(call " + p + " 1)", bodies);
-            Kit.values(p + 20 + " f", "(call " + p + " 1)", bodies[0], bodies[1], bodies[2], bodies[3], bodies[4], bodies[5],
-                    p + "=(R " + (p + 20) + ")");
+            Kit.values(p + 20 + " f", "(call " + p + " 1)", bodies[0], bodies[1], bodies[2], bodies[3], bodies[4],
+                    bodies[5], p + "=(R " + (p + 20) + ")");
             Kit.values("!x", "(call " + (5 - p) + " 1)", bodies[p]);
         }
     }

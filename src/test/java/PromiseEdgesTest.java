@@ -261,8 +261,8 @@ public final class PromiseEdgesTest {
 
     /** Promise 17: each of its letters */
     private static void errors() {
-        String[] runs = {"x v0", "z (/ 1 0)", "o (. (. 1 '12345678901234567890123456789') '1234567890123456789012345678901')",
-            "b n", "t (@ 1)", "l (e (r 1))", "d (call 0 1)"};
+        String[] runs = {"x v0", "z (/ 1 0)", "o (. 1 '" + "1234567890".repeat(6) + "')", "b n", "t (@ 1)",
+            "l (e (r 1))", "d (call 0 1)"};
         for (String run : runs) {
             DoorScan x = Kit.language("0=(call 0 1)");
             x.begin(Kit.put(x, run.substring(2)));
@@ -275,13 +275,12 @@ public final class PromiseEdgesTest {
 
     /** Promises 20 and 21: a variable "of the run itself", behind each value, behind 'f' and behind 'e' */
     private static void variablesOfTheRun() {
-        DoorScan x = Kit.language("0=(; (: 6 1) (S 1))", "1=(; (: 6 1) v5)");
-        String set = "(; (: 0 -3) (; (: 1 '-999999999') (; (: 2 '1000000000') (; (: 3 '') (; (: 4 (c 1)) (: 7 (| 1 2)))))))";
+        String set = "(; (: 0 -3) (; (: 1 '-999999999') (; (: 2 '1000000000')"
+                + " (; (: 3 '') (; (: 4 (c 1)) (: 7 (| 1 2)))))))";
         String[] due = {"-3", "-999999999", "UnsupportedOperation", "UnsupportedOperation", "UnsupportedOperation",
             "NoSuchElement", "NoSuchElement"};
         for (String end : new String[] {"(call 0 1)", "(< 2 1)", "(call 1 1)", "(@ (c (: 6 1)))", "(s 'ab' (T 2))"}) {
-            x = Kit.language("0=(; (: 6 1) (S 1))", "1=(; (: 6 1) v5)");
-            DoorScan y = x;
+            DoorScan y = Kit.language("0=(; (: 6 1) (S 1))", "1=(; (: 6 1) v5)");
             y.begin(Kit.put(y, "(; " + set + " " + end + ")"));
             for (int asked = 0; asked < 2; asked++) {
                 y.next();

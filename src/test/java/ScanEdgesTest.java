@@ -32,8 +32,8 @@ public final class ScanEdgesTest {
     }
 
     private static int[] numbers(int length) {
-        return new int[] {Integer.MIN_VALUE, Integer.MIN_VALUE + 1, -length - 2, -length - 1, -length, 1 - length, -1, 0, 1,
-            2, length - 1, length, length + 1, length + 2, length + 3, Integer.MAX_VALUE - 1, Integer.MAX_VALUE};
+        return new int[] {Integer.MIN_VALUE, Integer.MIN_VALUE + 1, -length - 2, -length - 1, -length, 1 - length, -1,
+            0, 1, 2, length - 1, length, length + 1, length + 2, length + 3, Integer.MAX_VALUE - 1, Integer.MAX_VALUE};
     }
 
     /** 'T', 'm' and 'P' from the first place, from the last one, and from one between. */
@@ -64,8 +64,8 @@ public final class ScanEdgesTest {
             for (int c : numbers(length)) {
                 int from = told(b, length);
                 int to = told(c, length);
-                Kit.values(from == 0 || to == 0 ? "f" : between(text, from, to) + " f", "([ '" + text + "' " + b + " " + c
-                        + ")");
+                Kit.values(from == 0 || to == 0 ? "f" : between(text, from, to) + " f",
+                        "([ '" + text + "' " + b + " " + c + ")");
             }
         }
         Kit.values("'34' '3' '2' f", "([ 1234 3 (| 5 (| 4 2)))");
@@ -203,8 +203,9 @@ public final class ScanEdgesTest {
 
     /** "Whatever leaves b ... has the subject and the place as they were outside as the scanning began" */
     private static void leaving() {
-        String[] ways = {"(& (s 'xyz' (; (T 3) 5)) X)", "(; (s 'xyz' (; (T 3) 5)) X)", "(| (s 'xyz' (; (T 3) (< 2 1))) X)",
-            "(; (e 1 (s 'xyz' (; (T 3) b))) X)", "(e 1 (s 'xyz' (; (T 3) (b X))))", "(; (e 1 (s 'xyz' (; (T 3) n))) X)",
+        String[] ways = {"(& (s 'xyz' (; (T 3) 5)) X)", "(; (s 'xyz' (; (T 3) 5)) X)",
+            "(| (s 'xyz' (; (T 3) (< 2 1))) X)", "(; (e 1 (s 'xyz' (; (T 3) b))) X)",
+            "(e 1 (s 'xyz' (; (T 3) (b X))))", "(; (e 1 (s 'xyz' (; (T 3) n))) X)",
             "(; (e (s 'xyz' (; (T 3) n)) 5) X)", "(; (w (s 'xyz' (; (T 3) b))) X)",
             "(; (: 3 0) (; (w (< (: 3 (+ v3 1)) 3) (s 'xyz' (; (T 3) n))) X))",
             "(; (e 1 (s 'xyz' (; (T 3) (s 'uv' (; (T 2) b))))) X)",
@@ -215,11 +216,13 @@ public final class ScanEdgesTest {
             Kit.values("'ab' 2 f", "(s 'ab' (; (T 2) " + way.replace("X", "(| q p)") + "))", bodies);
             Kit.values("'' 1 f", way.replace("X", "(| q p)"), bodies);
             // as the scanning began: what its a moves for good is outside
-            Kit.values("3 f", "(s 'ab' (; (T 2) " + way.replace("'xyz'", "(; (T 3) 'xyz')").replace("X", "p") + "))",
-                    bodies[0].replace("'xyz'", "(; (T 3) 'xyz')"), bodies[1].replace("'xyz'", "(; (T 3) 'xyz')"),
-                    bodies[2].replace("'xyz'", "(; (T 3) 'xyz')"), bodies[3].replace("'xyz'", "(; (T 3) 'xyz')"),
-                    bodies[4].replace("'xyz'", "(; (T 3) 'xyz')"));
+            Kit.values("3 f", "(s 'ab' (; (T 2) " + moving(way).replace("X", "p") + "))", moving(bodies[0]),
+                    moving(bodies[1]), moving(bodies[2]), moving(bodies[3]), moving(bodies[4]));
         }
+    }
+
+    private static String moving(String scanning) {
+        return scanning.replace("'xyz'", "(; (T 3) 'xyz')");
     }
 
     /** An error ends the run, and nothing else is done. */

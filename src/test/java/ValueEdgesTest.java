@@ -64,8 +64,8 @@ public final class ValueEdgesTest {
 
     /** "a number as its decimal text, with - if it is less than 0" */
     private static void numbersAsTexts() {
-        for (int n : new int[] {Integer.MIN_VALUE, -1000000000, -999999999, -10, -9, -1, 0, 1, 9, 10, 99, 100, 999999999,
-            1000000000, Integer.MAX_VALUE}) {
+        for (int n : new int[] {Integer.MIN_VALUE, -1000000000, -999999999, -10, -9, -1, 0, 1, 9, 10, 99, 100,
+            999999999, 1000000000, Integer.MAX_VALUE}) {
             String text = String.valueOf(n);
             Kit.values("'" + text + "' f", "(. " + n + " '')");
             Kit.values("'" + text + "' f", "(~ " + n + " '" + text + "')");
@@ -84,12 +84,13 @@ public final class ValueEdgesTest {
 
     /** "a text as a number if it has 1 to 9 digits, perhaps with - ahead, and nothing else" */
     private static void textsAsNumbers() {
-        for (String text : new String[] {"0", "9", "00", "12345678", "123456789", "999999999", "000000000", "000000001"}) {
+        for (String text : new String[] {"0", "9", "00", "12345678", "123456789", "999999999", "000000000",
+            "000000001"}) {
             number(text, Integer.parseInt(text));
             number("-" + text, -Integer.parseInt(text));
         }
-        for (String text : new String[] {"", "-", "--", "--1", "1-", "-1-", "+1", "+", " ", "1 ", " 1", "- 1", "1 1", "1.0",
-            "1,", "1e1", "0x1", "a", "1a", "a1", "/", ":", "1/", "1:", "/1", ":1", "0000000000", "0000000001",
+        for (String text : new String[] {"", "-", "--", "--1", "1-", "-1-", "+1", "+", " ", "1 ", " 1", "- 1", "1 1",
+            "1.0", "1,", "1e1", "0x1", "a", "1a", "a1", "/", ":", "1/", "1:", "/1", ":1", "0000000000", "0000000001",
             "1000000000", "1234567890", "2147483647", "2147483648", "99999999999", FIFTY, "12345678-", "12345678a",
             "a12345678"}) {
             noNumber(text);
