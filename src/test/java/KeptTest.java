@@ -16,6 +16,8 @@ public final class KeptTest {
         }
         passing();
         manyAtOnce();
+        usedAgain();
+        emptyAndLast();
         nextRuns();
         manyHanded();
         Kit.end();
@@ -71,30 +73,57 @@ public final class KeptTest {
 
     /** Texts on their way from one expression to the next, whenever it is that room is made. */
     private static void passing() {
-        for (int more = 0; more < 6; more++) {
-            StringBuilder text = new StringBuilder("(. 'x' v1)");
-            for (int i = 0; i < more; i++) {
-                text.insert(0, "(. ").append(" '')");
+        for (int ahead = 0; ahead < 9; ahead++) {
+            for (int more = 0; more < 4; more++) {
+                String text = "(. ".repeat(more) + "(. 'x' v1)" + " '')".repeat(more);
+                Kit.values("0 f", "(; (e (. 'p' (t 1 " + ahead + "))) (! (e (: 1 (t 1 35)) (; (: 0 " + text
+                        + ") (; (. v0 'q') (i (~ v0 (. 'x' v1)) 1 (b 9)))))))");
             }
-            Kit.values("0 f", "(! (e (: 1 (t 1 35)) (; (: 0 " + text + ") (; (. v0 'q')"
-                    + " (i (~ v0 (. 'x' v1)) 1 (b 9))))))");
         }
     }
 
-    /** More texts than there is room for at first: each life has one, and the life that was made ahead of it. */
+    /** More texts than there is room for at first: each life has two, and the life that was made ahead of it. */
     private static void manyAtOnce() {
+        String make = "(& (: 2 (t 1 200)) (; (: 1 (. 'x' (: 3 (. v2 '')))) (; (. 'y' v2) (: 0 (c (| v0 (. v1 v3)))))))";
         DoorScan x = Kit.language();
-        String make = "(e (: 2 (t 1 70)) (; (: 1 (. 'x' (: 3 (. v2 '')))) (; (. 'y' v2) (: 0 (c (| v0 (. v1 v3)))))))";
-        String follow = "(e (t 1 23) (; (: 4 (@ v0)) (; (: 1 (@ v0)) (: 0 v4))))";
-        int first = Kit.put(x, make);
-        int second = Kit.put(x, "(; " + follow + " v1)");
-        int rest = Kit.put(x, "(r (@ v0))");
-        for (int i = 0; i < 3; i++) {
-            rest = x.make('|', second, rest, -1);
+        int first = Kit.put(x, "(; (: 0 0) " + make + ")");
+        int follow = Kit.put(x, "(r (; (: 4 (@ v0)) (; (: 1 (@ v0)) (; (: 0 v4) v1))))");
+        x.begin(x.make('|', first, follow, -1));
+        for (int i = 1; i <= 200; i++) {
+            Kit.due("a life", Kit.row(x, 1), "c");
         }
-        int row = Kit.put(x, "(; (: 0 0) (; #" + first + " (| 1 #" + rest + ")))");
-        x.begin(row);
-        Kit.due("texts of many lives", Kit.row(x, 6), "1 'x4848' 'x2525' 'x22' 0 'x11'");
+        for (int i = 200; i >= 1; i--) {
+            Kit.due("the texts of a life", Kit.row(x, 1), "'x" + i + i + "'");
+        }
+        Kit.due("behind the first life", Kit.row(x, 1), "!t");
+        // and so many in the variables of procedures within one another
+        Kit.values("21 f", "(call 0 21)", "0=(; (: 7 (i (; (: 1 (. (: 2 (. (: 3 (. (: 4 (. (: 5 (. (: 6 (. (: 0"
+                + " (. v0 '')) 'a')) 'b')) 'c')) 'd')) 'e')) 'f')) (< 0 (: 7 (- v0 1)))) (call 0 v7) 0))"
+                + " (R (& (~ v1 (. v0 'abcdef')) (+ v7 1))))");
+    }
+
+    /** Many more texts in one asking than are ever kept at once, with one that is kept. */
+    private static void usedAgain() {
+        String many = "(~ 'abc1500000' (. 'abc' (t 1 1500000)))";
+        Kit.values("'abc1500000' f", many);
+        Kit.values("'ab' 'abc1500000' 'ab' f", "(; (: 0 (. 'a' 'b')) (| v0 (| " + many + " v0)))");
+    }
+
+    /** A text without letters, with a last expression that is a text with letters. */
+    private static void emptyAndLast() {
+        DoorScan x = new DoorScan();
+        int none = Kit.put(x, "(. (| q (T 1)) (m 0))");
+        while (x.number(0) < 78) {
+            Kit.due("no text has letters yet", x.runs(), 0);
+        }
+        Kit.due("a letter", x.type('z'), 1);
+        Kit.due("the last one", x.text(), 79);
+        x.begin(none);
+        Kit.due("texts without letters", Kit.row(x, 3), "'' '' f");
+        Kit.due("none of them is a number", Kit.answer(() -> x.handed(none, 1)), "UnsupportedOperation");
+        Kit.due("so many", x.countHanded(none, 20), 2);
+        x.begin(79);
+        Kit.due("the last one has a letter", Kit.row(x, 2), "'z' f");
     }
 
     /** What was left of a run does not come up in the next one. */

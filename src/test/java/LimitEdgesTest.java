@@ -13,6 +13,7 @@ public final class LimitEdgesTest {
         placesWithin();
         placesOfLimits();
         longChain();
+        longestChain();
         stepsHanded();
         handedErrors();
         openAtMost();
@@ -286,6 +287,32 @@ public final class LimitEdgesTest {
         Kit.due("many places", chain(x, scan), "d" + (" " + ask + calls).repeat(9));
         Kit.due("how many", x.trace(), 9 * 26);
         Kit.throwing("behind the last place", "IndexOutOfBounds", () -> x.traceAt(9 * 26));
+    }
+
+    /** As many places as there may be: 30 calls in the run and in each of 8 lives, and a life that would be asked. */
+    private static void longestChain() {
+        DoorScan x = new DoorScan();
+        int one = x.number(1);
+        int[] calls = new int[6];
+        for (int p = 1; p <= 5; p++) {
+            calls[p] = x.call(p, one, -1);
+            x.define(p - 1, calls[p]);
+        }
+        // the last procedure goes round till the place is behind all
+        calls[0] = Kit.put(x, "(call 0 (m 1))");
+        int first = Kit.put(x, "(call 0 1)");
+        int scan = Kit.put(x, "(s 'aaaa' #" + first + ")");
+        int ask = Kit.put(x, "(@ (c #" + scan + "))");
+        x.define(5, x.make('|', calls[0], ask, -1));
+        StringBuilder places = new StringBuilder(" ").append(ask);
+        for (int depth = 30; depth >= 2; depth--) {
+            places.append(' ').append(calls[(depth - 1) % 6]);
+        }
+        places.append(' ').append(first);
+        Kit.due("the most places", chain(x, scan), "d" + places.toString().repeat(9));
+        Kit.due("so many", x.trace(), 279);
+        Kit.due("the last one", x.traceAt(278), first);
+        Kit.throwing("behind the last one", "IndexOutOfBounds", () -> x.traceAt(279));
     }
 
     // ---- the second way

@@ -101,6 +101,16 @@ public final class SecondWayTest {
                 Kit.due("all but one of " + open + " behind " + kind, x.countHanded(row, 1), open == 149 ? 1 : 0);
             }
         }
+        for (int open = 149; open <= 152; open++) {
+            DoorScan x = new DoorScan();
+            int row = around(x, x.number(1), open - 1);
+            int loop = x.make('e', x.make('b', row, -1, -1), -1, -1);
+            Kit.due(open + " behind a loop that was all", x.countHanded(loop, 1), open <= 150 ? 1 : 0);
+        }
+        // as many are open for each value that is gone on with
+        peak(10, "(& (: 0 (t #0 2)) (& (= v0 2) #0))");
+        peak(11, "(s 11 (& (: 0 (U #0)) (& (= v0 2) #0)))");
+        peak(11, "(s 11 (& (: 0 (F #0)) (& (= v0 2) #0)))");
         peak(12, "(& (call 0 #0) (+ #0 (+ #0 #0)))", "0=(S (& #0 #0))");
         peak(5, "(call 0 #0 #0)", "0=(R #0)");
         peak(6, "(| (call 0 #0) #0)", "0=(& #0 #0)");
