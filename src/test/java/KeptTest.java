@@ -18,6 +18,7 @@ public final class KeptTest {
         manyAtOnce();
         usedAgain();
         emptyAndLast();
+        livesUsedAgain();
         nextRuns();
         manyHanded();
         Kit.end();
@@ -124,6 +125,48 @@ public final class KeptTest {
         Kit.due("so many", x.countHanded(none, 20), 2);
         x.begin(79);
         Kit.due("the last one has a letter", Kit.row(x, 2), "'z' f");
+    }
+
+    /** Begins and gives up others than lives, or so many lives, and has 0, once. */
+    private static int churn(DoorScan x, int lives) {
+        return Kit.put(x, lives == 0 ? "(; (e (l (r (! (! 1))) 300)) 0)" : "(; (e (l (r (c 1)) " + lives + ")) 0)");
+    }
+
+    private static int ahead(DoorScan x, int[] churns, int row) {
+        int all = row;
+        for (int churn : churns) {
+            all = x.make('|', churn, all, -1);
+        }
+        return all;
+    }
+
+    /** Lives are kept while many others are given up, one of those that were kept among them, and new ones are made. */
+    private static void livesUsedAgain() {
+        for (int lives : new int[] {0, 1, 480}) {
+            DoorScan x = new DoorScan();
+            int some = churn(x, lives);
+            int others = churn(x, 0);
+            int[] churns = {some, others, others, some, others, others};
+            int row = Kit.put(x, "(; (: 3 (c 5)) (; (: 4 (c 6)) (@ (| v0 (| v2 (| v3 (| v4 (| v0 v2))))))))");
+            row = x.make(';', Kit.put(x, "(: 1 0)"), ahead(x, churns, row), -1);
+            row = ahead(x, churns, row);
+            row = Kit.put(x, "(; (: 0 (c (| 2 7))) (; (: 2 (c (| 4 8))) (; (: 1 (c 3)) #" + row + ")))");
+            x.begin(row);
+            Kit.due("lives that are kept", Kit.row(x, 19), "0 0 0 0 0 0 0 0 0 0 0 0 2 4 5 6 7 8 f");
+        }
+        // more are made than were given up
+        for (int lives : new int[] {1, 40, 59}) {
+            DoorScan x = new DoorScan();
+            int[] churns = {churn(x, 0), churn(x, 0), churn(x, lives)};
+            int row = Kit.put(x, "(; (: 0 0) (; (e (: 2 (t 1 60)) (: 0 (c (| v0 v2))))"
+                    + " (r (; (: 4 (@ v0)) (; (: 1 (@ v0)) (; (: 0 v4) v1))))))");
+            x.begin(ahead(x, churns, row));
+            Kit.due("what was given up", Kit.row(x, 3), "0 0 0");
+            for (int i = 60; i >= 1; i--) {
+                Kit.due("a life of many", Kit.row(x, 1), String.valueOf(i));
+            }
+            Kit.due("behind the first one", Kit.row(x, 1), "!t");
+        }
     }
 
     /** What was left of a run does not come up in the next one. */

@@ -6,6 +6,9 @@ import java.util.Random;
 public final class OracleTest {
     private static final String WITH_A = "r!TmPAMUFHSSRSR";
     private static final String WITH_AB = "|&;t+-*/<=.~ls|&;t=<.s|&;t";
+    /** Kinds that have to do with the numbers that a 't' passes over. */
+    private static final String COUNTING_WITH_A = "rSSTmP";
+    private static final String COUNTING_WITH_AB = "tttt+-<=~|&;l";
 
     private static int checked;
 
@@ -20,16 +23,16 @@ public final class OracleTest {
     private final String name;
     private int count;
 
-    private OracleTest(long seed, boolean hasLives) {
+    private OracleTest(long seed, boolean hasLives, boolean isCounting) {
         random = new Random(seed);
         this.hasLives = hasLives;
-        wide = below(3) == 0;
+        wide = below(3) == 0 && !isCounting;
         // each program has kinds of its own, so that rare ones come together
         for (int i = 0; i < isLeftOut.length; i++) {
-            isLeftOut[i] = i < 10 && below(3) == 0;
+            isLeftOut[i] = i < 10 && below(3) == 0 || isCounting && (i == 3 || i == 4 || i == 8);
         }
-        withA = some(WITH_A);
-        withAB = some(WITH_AB);
+        withA = some(isCounting ? COUNTING_WITH_A : WITH_A);
+        withAB = isCounting ? COUNTING_WITH_AB : some(WITH_AB);
         name = "program " + seed;
     }
 
@@ -45,7 +48,7 @@ public final class OracleTest {
 
     private static void checkAll(int programs, long seed) {
         for (int i = 0; i < programs; i++) {
-            new OracleTest(seed + i, i % 4 == 0).check();
+            new OracleTest(seed + i, i % 4 == 0, i % 4 == 1).check();
             checked++;
         }
     }

@@ -147,6 +147,9 @@ public final class PassedTest {
         passed("3 3 f", "(= 3 (call 0 1))", "0=(| (S MANY) (S ALL))");
         passed("f", "(= 3 (call 0 1))", "0=(R MANY)");
         passed("3 f", "(= 3 (call 0 1))", "0=(s 'ab' (; (T 2) (S (+ p (t 0 2147483647)))))");
+        // those of other expressions in the procedure are all of use
+        passed("5 f", "(= 5 (call 0 1))", "0=(; (: 2 (+ 1 MANY)) (S (+ v2 3)))");
+        passed("5 5 f", "(= 5 (call 0 1))", "0=(& (: 2 (+ 1 (t 1 2))) (S (t 1 (+ 3 v2))))");
         passed("f", "(= 3 (@ (c MANY)))");
         passed("3 4", "(; (: 0 (c MANY)) (< 2 (r (@ v0))))");
         passed("3 f", "(@ (c (= 3 MANY)))");

@@ -170,7 +170,9 @@ public final class ValueEdgesTest {
         Kit.values("'7' f", "([ (| (c 1) 7) 1 2)");
         for (String kind : new String[] {"A", "M", "U", "F", "H"}) {
             String want = kind.equals("U") || kind.equals("F") ? "1 f" : "2 f";
-            Kit.values("f", "(s 78 (" + kind + " (c 1)))");
+            for (int place = 1; place <= 3; place++) {
+                Kit.values("f", "(s 78 (; (T " + place + ") (" + kind + " (c 1))))");
+            }
             Kit.values(want, "(s 78 (" + kind + " (| (c 1) 7)))");
         }
     }
