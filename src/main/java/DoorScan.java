@@ -1,4 +1,3 @@
-import java.util.ArrayList;
 import java.util.NoSuchElementException;
 
 /** A language in which each expression succeeds with values one after the other, or fails. */
@@ -36,6 +35,43 @@ public final class DoorScan {
     private static final long LOWER = 0xFFFFFFFFL;
     private static final int LEAST_NUMBER = -2147483648;
     private static final int MOST_NUMBER = 2147483647;
+
+    /** The row of a node, which is an expression that was begun and may be gone back into: its halves from 1 on. */
+    private static final int WHAT = 1;
+    private static final int PARENT = 2;
+    private static final int FRAME = 3;
+    /** The part that was begun last, and the one that was begun ahead of this in the same parent. */
+    private static final int LATEST = 4;
+    private static final int EARLIER = 5;
+    private static final int X = 6;
+    private static final int Y = 7;
+    /** In a call: the 'S' that gave its last value. */
+    private static final int WAITING = X;
+    /** Which numbers are of use to the parent. */
+    private static final int LOW = 8;
+    private static final int HIGH = 9;
+    /** Its columns behind these halves, which are values. */
+    private static final int ONE = 5;
+    private static final int TWO = 6;
+    private static final int NODE_WIDTH = 7;
+
+    /** The row of a frame, which are the variables of a procedure that was called, or of a run or a life itself. */
+    private static final int CALLING = 1;
+    private static final int CALLER = 2;
+    private static final int DEPTH = 3;
+    private static final int FIRST_VARIABLE = 2;
+    private static final int FRAME_WIDTH = FIRST_VARIABLE + VARIABLES;
+
+    /** The row of a life, or of the run: what it is made of, and where it is once it was asked. */
+    private static final int BODY = 1;
+    private static final int COPIED_PLACE = 2;
+    private static final int PLACE = 3;
+    private static final int OWN_FRAME = 4;
+    private static final int ROOT = 5;
+    private static final int COPIED_SUBJECT = 3;
+    private static final int SUBJECT = 4;
+    private static final int FIRST_COPIED = 5;
+    private static final int LIFE_WIDTH = FIRST_COPIED + VARIABLES;
 
     private final Program program;
     private final Machine run;
@@ -556,113 +592,230 @@ public final class DoorScan {
         }
     }
 
+    /** Rows of longs, all of one width, that are used again; they stand in blocks, which are never copied. */
+    private static final class Rows {
+        private static final int IN_A_BLOCK = 128;
+        private static final int BLOCKS_AT_FIRST = 8;
+        /** Each step takes a row of each sort at most, so that no run needs so many. */
+        private static final int MOST_BLOCKS = 1 << 13;
+        /** The first half of each row: 0, or that it is kept, and which one was reached ahead of it. */
+        private static final int LINK = 0;
+        private static final int END = -1;
+        /** The second half of a spare row: the next one. */
+        private static final int NEXT = 1;
+        private static final int HALF = 32;
+
+        private final int width;
+        private long[][] blocks = new long[BLOCKS_AT_FIRST][];
+        /** The row 0 is none. */
+        private int fresh = 1;
+        private int spare;
+        private int taken;
+        private int limit = IN_A_BLOCK;
+        private int reached = END;
+
+        Rows(int width) {
+            this.width = width;
+        }
+
+        void clear() {
+            fresh = 1;
+            spare = 0;
+            taken = 0;
+            limit = IN_A_BLOCK;
+            reached = END;
+        }
+
+        int taken() {
+            return taken;
+        }
+
+        /** Whether it is time to look for rows that can be used again. */
+        boolean isTight() {
+            return taken >= limit;
+        }
+
+        boolean has(int row) {
+            return row > 0 && row < fresh;
+        }
+
+        /** A row of zeros; 0 if there are no more, to which no run comes. */
+        int take() {
+            int row = spare > 0 ? spare : fresh;
+            int number = row / IN_A_BLOCK;
+            if (row <= 0 || number >= MOST_BLOCKS) {
+                return 0;
+            }
+            if (number >= blocks.length) {
+                long[][] more = new long[2 * number][];
+                for (int i = 0; i < blocks.length && i < more.length; i++) {
+                    more[i] = blocks[i];
+                }
+                blocks = more;
+            }
+            if (blocks[number] == null) {
+                blocks[number] = new long[IN_A_BLOCK * width];
+            }
+            long[] block = blocks[number];
+            int first = row % IN_A_BLOCK * width;
+            if (spare > 0) {
+                spare = (int) (block[first] >>> HALF);
+            } else {
+                fresh++;
+            }
+            for (int i = first; i < first + width && i < block.length; i++) {
+                block[i] = 0;
+            }
+            taken++;
+            return row;
+        }
+
+        long whole(int row, int column) {
+            if (row <= 0 || row >= fresh || column < 0 || column >= width) {
+                return 0;
+            }
+            long[] block = blocks[row / IN_A_BLOCK];
+            return block == null ? 0 : block[row % IN_A_BLOCK * width + column];
+        }
+
+        void setWhole(int row, int column, long value) {
+            if (row <= 0 || row >= fresh || column < 0 || column >= width) {
+                return;
+            }
+            long[] block = blocks[row / IN_A_BLOCK];
+            if (block != null) {
+                block[row % IN_A_BLOCK * width + column] = value;
+            }
+        }
+
+        /** An int that is half of a long: the halves 0 and 1 are those of column 0, from the lower one on. */
+        int half(int row, int half) {
+            if (row <= 0 || row >= fresh || half < 0 || half >= 2 * width) {
+                return 0;
+            }
+            long[] block = blocks[row / IN_A_BLOCK];
+            return block == null ? 0 : (int) (block[row % IN_A_BLOCK * width + half / 2] >>> half % 2 * HALF);
+        }
+
+        void setHalf(int row, int half, int value) {
+            if (row <= 0 || row >= fresh || half < 0 || half >= 2 * width) {
+                return;
+            }
+            long[] block = blocks[row / IN_A_BLOCK];
+            if (block != null) {
+                int at = row % IN_A_BLOCK * width + half / 2;
+                int shift = half % 2 * HALF;
+                block[at] = block[at] & ~(LOWER << shift) | (value & LOWER) << shift;
+            }
+        }
+
+        /** Keeps the row from being spare; answers whether it was not kept before. */
+        boolean reach(int row) {
+            long[] block = row > 0 && row < fresh ? blocks[row / IN_A_BLOCK] : null;
+            int first = row % IN_A_BLOCK * width;
+            if (block == null || (int) block[first] != 0) {
+                return false;
+            }
+            block[first] |= reached & LOWER;
+            reached = row;
+            return true;
+        }
+
+        /** The row that was reached last and not answered here before, or 0. */
+        int follow() {
+            int row = reached;
+            if (row <= 0) {
+                return 0;
+            }
+            reached = half(row, LINK);
+            return row;
+        }
+
+        /** Makes the rows spare that were not reached. */
+        void sweep() {
+            spare = 0;
+            taken = 0;
+            reached = END;
+            for (int row = fresh - 1; row > 0; row--) {
+                if (half(row, LINK) == 0) {
+                    setHalf(row, NEXT, spare);
+                    spare = row;
+                } else {
+                    setHalf(row, LINK, 0);
+                    taken++;
+                }
+            }
+            limit = taken + Math.max(IN_A_BLOCK, taken / 2);
+        }
+
+        /** Lets so many more be taken at least, ahead of the next time that is looked for spare ones. */
+        void allow(int more) {
+            limit = Math.max(limit, taken + more);
+        }
+    }
+
     /** The texts that a way of finding values has made, and how values are read as texts and numbers. */
     private static final class Texts {
         static final long NO_NUMBER = 1L << 63;
         /** A text without letters: contents below 0 are texts of the program, and this one is of no expression. */
         static final long EMPTY = ((long) IS_TEXT << 32) | ((-1 - MOST_EXPRESSIONS) & LOWER);
-        private static final int AT_FIRST = 128;
-        private static final int MOST = 1 << 20;
-        private static final int MOST_IN_A_MOVE = 4;
-        /** Letters are packed, eight in a long, as what is kept is counted by its elements. */
-        private static final int IN_A_LONG = 8;
-        private static final int LETTER = (1 << IN_A_LONG) - 1;
-        private static final int LONGS = (MOST_LETTERS + IN_A_LONG - 1) / IN_A_LONG;
         private static final int DIGITS = 9;
+        /** A row has the length in its second half, and behind that the letters, which are packed, nine in a long. */
+        private static final int LENGTH = 1;
+        private static final int IN_A_LONG = 9;
+        private static final int BITS = 7;
+        private static final long LETTER = (1L << BITS) - 1;
+        private static final int WIDTH = 1 + (MOST_LETTERS + IN_A_LONG - 1) / IN_A_LONG;
 
         private final Program program;
         private final char[] read = new char[MOST_LETTERS];
-        private long[] packed = new long[AT_FIRST * LONGS];
-        private int[] lengths = new int[AT_FIRST];
-        private boolean[] marks = new boolean[AT_FIRST];
-        private int[] spare = new int[AT_FIRST];
-        private int spares;
-        private int fresh;
+        private final Rows rows;
 
         Texts(Program program) {
             this.program = program;
+            rows = new Rows(WIDTH);
         }
 
         void clear() {
-            spares = 0;
-            fresh = 0;
+            rows.clear();
         }
 
         boolean isTight() {
-            return spares + lengths.length - fresh < MOST_IN_A_MOVE;
+            return rows.isTight();
         }
 
-        /** Keeps the characters as a text; there is room, as collecting goes ahead of a move if it is tight. */
+        /** Keeps the characters as a text. */
         long keep(char[] from, int start, int length) {
             if (start < 0 || length <= 0 || length > MOST_LETTERS || start > from.length - length) {
                 return EMPTY;
             }
-            int slot = NONE;
-            if (spares > 0 && spares <= spare.length) {
-                spares--;
-                slot = spare[spares];
-            } else if (fresh < lengths.length) {
-                slot = fresh;
-                fresh++;
-            }
-            if (slot < 0 || slot >= lengths.length) {
+            int row = rows.take();
+            if (row == 0) {
                 return EMPTY;
             }
-            pack(from, start, length, slot * LONGS);
-            lengths[slot] = length;
-            return ((long) IS_TEXT << 32) | slot;
-        }
-
-        private void pack(char[] from, int start, int length, int first) {
-            int at = first;
-            long row = 0;
-            for (int i = 0; i < length; i++) {
-                row |= (long) from[start + i] << IN_A_LONG * (i % IN_A_LONG);
-                if (i % IN_A_LONG == IN_A_LONG - 1 || i == length - 1) {
-                    packed[at] = row;
-                    at++;
-                    row = 0;
+            rows.setHalf(row, LENGTH, length);
+            long packed = 0;
+            for (int i = length - 1; i >= 0; i--) {
+                packed = packed << BITS | from[start + i];
+                if (i % IN_A_LONG == 0) {
+                    rows.setWhole(row, 1 + i / IN_A_LONG, packed);
+                    packed = 0;
                 }
             }
+            return ((long) IS_TEXT << 32) | row;
         }
 
         void mark(long coded) {
-            int slot = (int) coded;
-            if (coded >>> 32 == IS_TEXT && slot >= 0 && slot < marks.length) {
-                marks[slot] = true;
+            int content = (int) coded;
+            if (coded >>> 32 == IS_TEXT && content > 0) {
+                rows.reach(content);
             }
         }
 
-        /** Makes the unmarked texts spare, and more room if few of them are. */
-        void sweep() {
-            spares = 0;
-            for (int slot = 0; slot < fresh && slot < marks.length; slot++) {
-                if (marks[slot]) {
-                    marks[slot] = false;
-                } else if (spares < spare.length) {
-                    spare[spares] = slot;
-                    spares++;
-                }
-            }
-            if (spares + lengths.length - fresh < lengths.length / 2 && lengths.length < MOST) {
-                widen(lengths.length * 2);
-            }
-        }
-
-        private void widen(int size) {
-            if (size <= lengths.length || size > MOST) {
-                return;
-            }
-            long[] morePacked = new long[size * LONGS];
-            int[] moreLengths = new int[size];
-            int[] moreSpare = new int[size];
-            System.arraycopy(packed, 0, morePacked, 0, packed.length);
-            System.arraycopy(lengths, 0, moreLengths, 0, lengths.length);
-            System.arraycopy(spare, 0, moreSpare, 0, spare.length);
-            packed = morePacked;
-            lengths = moreLengths;
-            spare = moreSpare;
-            marks = new boolean[size];
+        /** Makes the texts spare that are not marked; so many may come besides before the next time. */
+        void sweep(int more) {
+            rows.sweep();
+            rows.allow(more);
         }
 
         /** Puts the value's text into the row, and answers its length, or less than 0 for what is no text. */
@@ -679,18 +832,21 @@ public final class DoorScan {
 
         private int copy(int content, char[] into) {
             int expression = -1 - content;
-            if (into.length < MOST_LETTERS || content >= lengths.length || expression >= MOST_EXPRESSIONS) {
+            if (into.length < MOST_LETTERS || content >= rows.fresh || expression >= MOST_EXPRESSIONS) {
                 return 0;
             }
-            if (content >= 0) {
-                int first = content * LONGS;
-                for (int i = 0; i < lengths[content]; i++) {
-                    into[i] = (char) (packed[first + i / IN_A_LONG] >>> IN_A_LONG * (i % IN_A_LONG) & LETTER);
-                }
-                return lengths[content];
+            if (content < 0) {
+                System.arraycopy(program.letters, expression * MOST_LETTERS, into, 0, program.lengths[expression]);
+                return program.lengths[expression];
             }
-            System.arraycopy(program.letters, expression * MOST_LETTERS, into, 0, program.lengths[expression]);
-            return program.lengths[expression];
+            // the row is read without its own calls, as this is asked for at the greatest depth of calls
+            long[] block = rows.blocks[content / Rows.IN_A_BLOCK];
+            int first = content % Rows.IN_A_BLOCK * WIDTH;
+            int length = block == null ? 0 : (int) (block[first] >>> Rows.HALF);
+            for (int i = 0; i < length && i < MOST_LETTERS; i++) {
+                into[i] = (char) (block[first + 1 + i / IN_A_LONG] >>> i % IN_A_LONG * BITS & LETTER);
+            }
+            return length;
         }
 
         private static int write(int number, char[] into) {
@@ -1084,333 +1240,178 @@ public final class DoorScan {
         }
     }
 
-    /** An expression that a run or a life has begun and may go back into. */
-    private static final class Node {
-        private int expression;
-        private char kind;
-        private Node parent;
-        private int part;
-        private Frame frame;
-        private Node first;
-        private Node second;
-        private Node third;
-        /** In a call: the 'S' that gave its last value. */
-        private Node waiting;
-        private long one;
-        private long two;
-        private int x;
-        private int y;
-        /** Which numbers are of use to the parent, and whether the last one of others leaves a trace. */
-        private int low;
-        private int high;
-        private boolean isTraced;
-        private boolean marked;
-        private Node pending;
-
-        void hold(int number, Node child) {
-            if (number == 1) {
-                first = child;
-            } else if (number == 2) {
-                second = child;
-            } else {
-                third = child;
-            }
-        }
-
-        Node latest() {
-            return third != null ? third : second != null ? second : first;
-        }
-    }
-
-    /** The variables of a procedure that was called, or of a run or a life itself, which no call is of. */
-    private static final class Frame {
-        private final long[] variables = new long[VARIABLES];
-        private Node call;
-        private Frame caller;
-        private int depth;
-        private boolean marked;
-
-        void reset(Node newCall, Frame newCaller) {
-            for (int i = 0; i < variables.length; i++) {
-                variables[i] = 0;
-            }
-            call = newCall;
-            caller = newCaller;
-            depth = newCaller == null ? 0 : newCaller.depth + 1;
-            marked = false;
-        }
-
-        long get(int variable) {
-            return variable >= 0 && variable < variables.length ? variables[variable] : 0;
-        }
-
-        void set(int variable, long coded) {
-            if (variable >= 0 && variable < variables.length) {
-                variables[variable] = coded;
-            }
-        }
-    }
-
-    /** An expression with variables, a subject and a place of its own: a life, or the run. */
-    private static final class Life {
-        private final int index;
-        private final long[] copied = new long[VARIABLES];
-        private int expression;
-        private long copiedSubject;
-        private int copiedPlace;
-        private boolean begun;
-        private boolean ended;
-        private Frame frame;
-        private Node root;
-        private long subject;
-        private int place;
-        /** While it is asked: the '@' that asks, and the life that this is in. */
-        private Node asker;
-        private Life outer;
-        private int level;
-        private boolean marked;
-        private Life pending;
-
-        Life(int index) {
-            this.index = index;
-        }
-
-        void reset(int newExpression, long newSubject, int newPlace) {
-            expression = newExpression;
-            copiedSubject = newSubject;
-            copiedPlace = newPlace;
-            begun = false;
-            ended = false;
-            frame = null;
-            root = null;
-            subject = newSubject;
-            place = newPlace;
-            asker = null;
-            outer = null;
-            level = 0;
-            marked = false;
-            pending = null;
-            for (int i = 0; i < copied.length; i++) {
-                copied[i] = 0;
-            }
-        }
-
-        void copyVariables(long[] from) {
-            if (from.length == copied.length) {
-                System.arraycopy(from, 0, copied, 0, copied.length);
-            }
-        }
-    }
-
-    /** Nodes, frames and lives, which are used again when nothing can reach them any more. */
+    /** What a run and its lives have begun, in rows that are used again when nothing reaches them any more. */
     private static final class Heap {
-        private static final int AT_FIRST = 512;
+        /** How many rows that are kept pay for one that may be taken ahead of the next collecting. */
+        private static final int KEPT_FOR_ONE = 16;
         private static final int MOST_FOLLOWED = 1 << 30;
+        private static final int EXPRESSION_BITS = 8;
+        private static final int PART_BITS = 2;
+        private static final int TRACED = 1 << EXPRESSION_BITS + PART_BITS;
+        private static final int KIND_AT = 16;
 
+        private final Rows nodes;
+        private final Rows frames;
+        private final Rows lives;
         private final Texts texts;
-        private final ArrayList<Node> nodes = new ArrayList<Node>();
-        private final ArrayList<Frame> frames = new ArrayList<Frame>();
-        private final ArrayList<Life> lives = new ArrayList<Life>();
-        private int nodesUsed;
-        private int framesUsed;
-        private int livesUsed;
-        private int taken;
-        private int limit = AT_FIRST;
-        private Life spareLife;
-        private Node pendingNode;
-        private Life pendingLife;
 
         Heap(Texts texts) {
+            nodes = new Rows(NODE_WIDTH);
+            frames = new Rows(FRAME_WIDTH);
+            lives = new Rows(LIFE_WIDTH);
             this.texts = texts;
         }
 
         void clear() {
-            nodesUsed = 0;
-            framesUsed = 0;
-            livesUsed = 0;
-            taken = 0;
-            limit = AT_FIRST;
-            spareLife = null;
-            pendingNode = null;
-            pendingLife = null;
+            nodes.clear();
+            frames.clear();
+            lives.clear();
         }
 
         boolean isTight() {
-            return taken >= limit;
+            return nodes.isTight() || frames.isTight() || lives.isTight() || texts.isTight();
         }
 
-        Node takeNode(int expression, char kind, Frame frame) {
-            Node node;
-            if (nodesUsed < nodes.size()) {
-                node = nodes.get(nodesUsed);
-            } else {
-                node = new Node();
-                nodes.add(node);
-            }
-            nodesUsed++;
-            taken++;
-            node.expression = expression;
-            node.kind = kind;
-            node.frame = frame;
-            node.parent = null;
-            node.part = 0;
-            node.first = null;
-            node.second = null;
-            node.third = null;
-            node.waiting = null;
-            node.one = 0;
-            node.two = 0;
-            node.x = 0;
-            node.y = 0;
-            node.marked = false;
+        // ---- nodes
+
+        /** Takes a node, which is then the latest part of its parent. */
+        int takeNode(int expression, char kind, int parent, int part, int frame) {
+            int node = nodes.take();
+            nodes.setHalf(node, WHAT, kind << KIND_AT | part << EXPRESSION_BITS | expression);
+            nodes.setHalf(node, PARENT, parent);
+            nodes.setHalf(node, FRAME, frame);
+            nodes.setHalf(node, EARLIER, nodes.half(parent, LATEST));
+            nodes.setHalf(parent, LATEST, node);
             return node;
         }
 
-        Frame takeFrame(Node call, Frame caller) {
-            Frame frame;
-            if (framesUsed < frames.size()) {
-                frame = frames.get(framesUsed);
-            } else {
-                frame = new Frame();
-                frames.add(frame);
+        char kindOf(int node) {
+            return (char) (nodes.half(node, WHAT) >>> KIND_AT);
+        }
+
+        int expressionOf(int node) {
+            return nodes.half(node, WHAT) & (1 << EXPRESSION_BITS) - 1;
+        }
+
+        int partOf(int node) {
+            return nodes.half(node, WHAT) >>> EXPRESSION_BITS & (1 << PART_BITS) - 1;
+        }
+
+        boolean isTraced(int node) {
+            return (nodes.half(node, WHAT) & TRACED) != 0;
+        }
+
+        void expect(int node, int low, int high, boolean traced) {
+            nodes.setHalf(node, LOW, low);
+            nodes.setHalf(node, HIGH, high);
+            if (traced) {
+                nodes.setHalf(node, WHAT, nodes.half(node, WHAT) | TRACED);
             }
-            framesUsed++;
-            taken++;
-            frame.reset(call, caller);
+        }
+
+        /** Leaves the part that was begun last. */
+        void dropLatest(int node) {
+            nodes.setHalf(node, LATEST, nodes.half(nodes.half(node, LATEST), EARLIER));
+        }
+
+        // ---- frames and lives
+
+        int takeFrame(int call, int caller) {
+            int frame = frames.take();
+            frames.setHalf(frame, CALLING, call);
+            frames.setHalf(frame, CALLER, caller);
+            frames.setHalf(frame, DEPTH, caller == 0 ? 0 : frames.half(caller, DEPTH) + 1);
             return frame;
         }
 
-        Life takeLife(int expression, long subject, int place) {
-            Life life = spareLife;
-            if (life != null) {
-                spareLife = life.pending;
-            } else if (livesUsed < lives.size()) {
-                life = lives.get(livesUsed);
-                livesUsed++;
-            } else {
-                life = new Life(lives.size());
-                lives.add(life);
-                livesUsed = lives.size();
-            }
-            taken++;
-            life.reset(expression, subject, place);
+        /** Takes a life, for which the variables are still to be copied. */
+        int takeLife(int expression, long subject, int place) {
+            int life = lives.take();
+            lives.setHalf(life, BODY, expression);
+            lives.setWhole(life, COPIED_SUBJECT, subject);
+            lives.setHalf(life, COPIED_PLACE, place);
+            lives.setWhole(life, SUBJECT, subject);
+            lives.setHalf(life, PLACE, place);
             return life;
         }
 
-        Life lifeOf(long coded) {
-            int index = (int) coded;
-            boolean there = coded >>> 32 == IS_LIFE && index >= 0 && index < livesUsed
-                    && index < lives.size();
-            return there ? lives.get(index) : null;
+        /** The life that the value is, or 0. */
+        int lifeOf(long coded) {
+            int life = (int) coded;
+            return coded >>> 32 == IS_LIFE && lives.has(life) ? life : 0;
         }
 
-        void reachNode(Node node) {
-            if (node != null && !node.marked) {
-                node.marked = true;
-                node.pending = pendingNode;
-                pendingNode = node;
-            }
+        // ---- collecting
+
+        void reachNode(int node) {
+            nodes.reach(node);
         }
 
-        void reachLife(Life life) {
-            if (life != null && !life.marked) {
-                life.marked = true;
-                life.pending = pendingLife;
-                pendingLife = life;
-            }
+        void reachLife(int life) {
+            lives.reach(life);
         }
 
         void reachValue(long coded) {
-            reachLife(lifeOf(coded));
-            texts.mark(coded);
-        }
-
-        private void reachFrame(Frame frame) {
-            if (frame != null && !frame.marked) {
-                frame.marked = true;
-                reachRow(frame.variables);
+            if (coded >>> 32 == IS_LIFE) {
+                lives.reach((int) coded);
+            } else {
+                texts.mark(coded);
             }
         }
 
-        private void reachRow(long[] row) {
-            for (int i = 0; i < row.length; i++) {
-                reachValue(row[i]);
-            }
-        }
-
-        /** Goes on from all that is reached; each thing is pending once at most, so that this ends. */
-        void follow() {
-            for (int i = 0; i < MOST_FOLLOWED && (pendingNode != null || pendingLife != null); i++) {
-                Node node = pendingNode;
-                if (node != null) {
-                    pendingNode = node.pending;
-                    reachNode(node.first);
-                    reachNode(node.second);
-                    reachNode(node.third);
-                    reachNode(node.parent);
-                    reachNode(node.waiting);
-                    reachFrame(node.frame);
-                    reachValue(node.one);
-                    reachValue(node.two);
-                }
-                Life life = pendingLife;
-                if (life != null) {
-                    pendingLife = life.pending;
-                    reachNode(life.root);
-                    reachFrame(life.frame);
-                    reachValue(life.copiedSubject);
-                    reachValue(life.subject);
-                    reachRow(life.copied);
+        private void reachFrame(int frame) {
+            if (frames.reach(frame)) {
+                for (int i = 0; i < VARIABLES; i++) {
+                    reachValue(frames.whole(frame, FIRST_VARIABLE + i));
                 }
             }
         }
 
-        /** Keeps what is marked; nodes and frames that are kept come to stand ahead of the others. */
-        void sweep() {
-            int kept = 0;
-            for (int i = 0; i < nodesUsed && i < nodes.size(); i++) {
-                Node node = nodes.get(i);
-                if (node.marked) {
-                    node.marked = false;
-                    nodes.set(i, nodes.get(kept));
-                    nodes.set(kept, node);
-                    kept++;
-                }
+        /** Keeps what can be reached from what was reached so far, and makes all else spare. */
+        void collect() {
+            boolean isDone = false;
+            for (int i = 0; i < MOST_FOLLOWED && !isDone; i++) {
+                int node = nodes.follow();
+                int life = lives.follow();
+                followNode(node);
+                followLife(life);
+                isDone = node == 0 && life == 0;
             }
-            nodesUsed = kept;
-            sweepFrames();
-            taken = nodesUsed + framesUsed + sweepLives();
-            limit = Math.max(AT_FIRST, taken + taken / 2);
+            nodes.sweep();
+            frames.sweep();
+            lives.sweep();
+            int more = (nodes.taken() + frames.taken() + lives.taken()) / KEPT_FOR_ONE;
+            frames.allow(more);
+            lives.allow(more);
+            texts.sweep(more);
         }
 
-        private void sweepFrames() {
-            int kept = 0;
-            for (int i = 0; i < framesUsed && i < frames.size(); i++) {
-                Frame frame = frames.get(i);
-                if (frame.marked) {
-                    frame.marked = false;
-                    frames.set(i, frames.get(kept));
-                    frames.set(kept, frame);
-                    kept++;
-                }
+        private void followNode(int node) {
+            if (node == 0) {
+                return;
             }
-            framesUsed = kept;
+            nodes.reach(nodes.half(node, PARENT));
+            nodes.reach(nodes.half(node, LATEST));
+            nodes.reach(nodes.half(node, EARLIER));
+            if (kindOf(node) == CALL) {
+                nodes.reach(nodes.half(node, WAITING));
+            }
+            reachFrame(nodes.half(node, FRAME));
+            reachValue(nodes.whole(node, ONE));
+            reachValue(nodes.whole(node, TWO));
         }
 
-        private int sweepLives() {
-            int kept = 0;
-            spareLife = null;
-            for (int i = 0; i < livesUsed && i < lives.size(); i++) {
-                Life life = lives.get(i);
-                if (life.marked) {
-                    life.marked = false;
-                    kept++;
-                } else {
-                    life.pending = spareLife;
-                    spareLife = life;
-                }
+        private void followLife(int life) {
+            if (life == 0) {
+                return;
             }
-            return kept;
+            nodes.reach(lives.half(life, ROOT));
+            reachFrame(lives.half(life, OWN_FRAME));
+            reachValue(lives.whole(life, SUBJECT));
+            reachValue(lives.whole(life, COPIED_SUBJECT));
+            for (int i = 0; i < VARIABLES; i++) {
+                reachValue(lives.whole(life, FIRST_COPIED + i));
+            }
         }
     }
 
@@ -1422,17 +1423,24 @@ public final class DoorScan {
         private static final int FAIL = 3;
         /** A place for the error, and in the run and each life that is asked the calls and the '@'. */
         private static final int MOST_CHAINED = 1 + (MOST_ASKED + 1) * (MOST_WITHIN + 1);
+        /** A bound of how many expressions are around one, which no tree comes to. */
+        private static final int MOST_AROUND = 1 << 20;
 
         private final Program program;
         private final Texts texts;
         private final Operations operations;
         private final Heap heap;
-        private final Life run;
+        private final Rows nodes;
+        private final Rows frames;
+        private final Rows lives;
+        /** The run, which is a life, and each life that is asked within it; and the '@' that ask them. */
+        private final int[] asked = new int[MOST_ASKED + 1];
+        private final int[] askers = new int[MOST_ASKED + 1];
         private final int[] chain = new int[MOST_CHAINED];
         private final long mostMoves;
-        private Life current;
+        private int level;
         private int move;
-        private Node at;
+        private int at;
         private long given;
         private char outcome;
         private char ended;
@@ -1446,16 +1454,18 @@ public final class DoorScan {
             texts = new Texts(program);
             operations = new Operations(texts);
             heap = new Heap(texts);
-            run = new Life(NONE);
-            current = run;
+            nodes = heap.nodes;
+            frames = heap.frames;
+            lives = heap.lives;
         }
 
         void prepare(int expression) {
             heap.clear();
             texts.clear();
-            run.reset(expression, Texts.EMPTY, 1);
-            current = run;
-            at = null;
+            level = 0;
+            asked[0] = heap.takeLife(expression, Texts.EMPTY, 1);
+            askers[0] = 0;
+            at = 0;
             given = 0;
             ended = 0;
             problem = 0;
@@ -1497,15 +1507,15 @@ public final class DoorScan {
         }
 
         long ownVariable(int variable) {
-            return run.frame == null ? 0 : run.frame.get(variable);
+            return frames.whole(lives.half(asked[0], OWN_FRAME), FIRST_VARIABLE + variable);
         }
 
         long ownSubject() {
-            return run.subject;
+            return lives.whole(asked[0], SUBJECT);
         }
 
         int ownPlace() {
-            return run.place;
+            return lives.half(asked[0], PLACE);
         }
 
         char ask() {
@@ -1514,23 +1524,21 @@ public final class DoorScan {
             }
             outcome = 0;
             given = 0;
-            enter(run);
+            enter();
             for (long moves = 0; moves < mostMoves && outcome == 0; moves++) {
-                if (heap.isTight() || texts.isTight()) {
-                    collect();
+                if (heap.isTight()) {
+                    reachAll();
+                    heap.collect();
                 }
-                Node node = at;
-                if (node == null || node.frame == null || current == null) {
-                    // there is always a place to go on from
-                    stop('l', null);
-                } else if (move == START) {
+                int node = at;
+                if (move == START) {
                     start(node);
                 } else if (move == BACK) {
                     goBack(node);
                 } else if (move == GIVE) {
-                    take(node.parent, node.part, given);
+                    take(parentOf(node), heap.partOf(node), given);
                 } else {
-                    lose(node.parent, node.part);
+                    lose(parentOf(node));
                 }
             }
             if (outcome == 0) {
@@ -1543,83 +1551,116 @@ public final class DoorScan {
             return outcome;
         }
 
-        private void collect() {
-            heap.reachLife(run);
-            // a life is asked within at most MOST_ASKED others
-            Life life = current;
-            for (int i = 0; i <= MOST_ASKED && life != null; i++) {
-                heap.reachLife(life);
-                life = life.outer;
+        private void reachAll() {
+            for (int i = 0; i <= level && i < asked.length; i++) {
+                heap.reachLife(asked[i]);
             }
             heap.reachNode(at);
             heap.reachValue(given);
-            heap.follow();
-            heap.sweep();
-            texts.sweep();
-            run.marked = false;
+        }
+
+        // ---- what there is of a node and of the life that is asked now
+
+        private int parentOf(int node) {
+            return nodes.half(node, PARENT);
+        }
+
+        /** The call of the procedure that the node is in, or 0. */
+        private int callOf(int node) {
+            return frames.half(nodes.half(node, FRAME), CALLING);
+        }
+
+        private int expressionOf(int node) {
+            return heap.expressionOf(node);
+        }
+
+        private int amountOf(int node) {
+            return program.amountOf(heap.expressionOf(node));
+        }
+
+        private boolean isTold(int node, int part) {
+            return program.partOf(heap.expressionOf(node), part) != NONE;
+        }
+
+        private long variableOf(int node, int variable) {
+            return frames.whole(nodes.half(node, FRAME), FIRST_VARIABLE + variable);
+        }
+
+        private void setVariable(int node, int variable, long coded) {
+            frames.setWhole(nodes.half(node, FRAME), FIRST_VARIABLE + variable, coded);
+        }
+
+        private int lifeNow() {
+            return level >= 0 && level < asked.length ? asked[level] : 0;
+        }
+
+        private long subjectNow() {
+            return lives.whole(lifeNow(), SUBJECT);
+        }
+
+        private int placeNow() {
+            return lives.half(lifeNow(), PLACE);
+        }
+
+        private void moveTo(int place) {
+            lives.setHalf(lifeNow(), PLACE, place);
+        }
+
+        private void scanFrom(long subject, int place) {
+            lives.setWhole(lifeNow(), SUBJECT, subject);
+            lives.setHalf(lifeNow(), PLACE, place);
         }
 
         // ---- where the machine goes next
 
-        private void give(Node node, long coded) {
+        private void give(int node, long coded) {
             move = GIVE;
             at = node;
             given = coded;
         }
 
-        private void giveNumber(Node node, int number) {
+        private void giveNumber(int node, int number) {
             give(node, coded(IS_NUMBER, number));
         }
 
-        private void fail(Node node) {
+        private void fail(int node) {
             move = FAIL;
             at = node;
         }
 
         /** Goes back into the part that was begun last, if there is one. */
-        private void retreat(Node node) {
-            Node part = node.latest();
-            if (part == null) {
-                fail(node);
-            } else {
-                move = BACK;
-                at = part;
-            }
+        private void retreat(int node) {
+            int part = nodes.half(node, LATEST);
+            move = part == 0 ? FAIL : BACK;
+            at = part == 0 ? node : part;
         }
 
-        private void open(Node node, int part) {
-            openIn(node, part, program.partOf(node.expression, part), node.frame);
+        private void open(int node, int part) {
+            openIn(node, part, program.partOf(expressionOf(node), part), nodes.half(node, FRAME));
         }
 
-        private void openIn(Node node, int part, int expression, Frame frame) {
-            Node child = heap.takeNode(expression, program.kindOf(expression), frame);
-            child.parent = node;
-            child.part = part;
-            node.hold(part, child);
+        private void openIn(int node, int part, int expression, int frame) {
             move = START;
-            at = child;
+            at = heap.takeNode(expression, program.kindOf(expression), node, part, frame);
         }
 
-        private boolean isTold(Node node, int part) {
-            return program.partOf(node.expression, part) != NONE;
+        private void dropParts(int node) {
+            nodes.setHalf(node, LATEST, 0);
         }
 
-        private void stop(char error, Node where) {
+        private void stop(char error, int where) {
             outcome = 'e';
             problem = error;
             chained = 0;
-            if (where == null) {
-                return;
-            }
-            Node node = where;
-            Life life = current;
-            for (int i = 0; i <= MOST_ASKED && node != null; i++) {
-                note(node.expression);
-                for (Frame frame = node.frame; frame != null && frame.call != null; frame = frame.caller) {
-                    note(frame.call.expression);
+            int node = where;
+            for (int i = level; i >= 0 && i < askers.length && node != 0; i--) {
+                note(heap.expressionOf(node));
+                int frame = nodes.half(node, FRAME);
+                for (int j = 0; j < MOST_WITHIN && frames.half(frame, CALLING) != 0; j++) {
+                    note(heap.expressionOf(frames.half(frame, CALLING)));
+                    frame = frames.half(frame, CALLER);
                 }
-                node = life == null ? null : life.asker;
-                life = life == null ? null : life.outer;
+                node = askers[i];
             }
         }
 
@@ -1632,27 +1673,27 @@ public final class DoorScan {
 
         // ---- the run and its lives
 
-        private void enter(Life life) {
-            current = life;
-            if (life.begun) {
+        /** Begins what is asked now, or goes back into it. */
+        private void enter() {
+            int life = lifeNow();
+            if (lives.half(life, OWN_FRAME) != 0) {
                 move = BACK;
-                at = life.root;
+                at = lives.half(life, ROOT);
                 return;
             }
-            life.begun = true;
-            life.frame = heap.takeFrame(null, null);
-            for (int i = 0; i < VARIABLES && i < life.copied.length; i++) {
-                life.frame.set(i, life.copied[i]);
+            int frame = heap.takeFrame(0, 0);
+            for (int i = 0; i < VARIABLES; i++) {
+                frames.setWhole(frame, FIRST_VARIABLE + i, lives.whole(life, FIRST_COPIED + i));
             }
-            life.root = heap.takeNode(life.expression, program.kindOf(life.expression), life.frame);
-            move = START;
-            at = life.root;
+            openIn(0, 0, lives.half(life, BODY), frame);
+            lives.setHalf(life, OWN_FRAME, frame);
+            lives.setHalf(life, ROOT, at);
         }
 
         /** The root of the run, or of a life, has given a value. */
         private void takeFromRoot(long coded) {
-            Node asker = leaveLife();
-            if (asker == null) {
+            int asker = leaveLife();
+            if (asker == 0) {
                 outcome = 'v';
             } else {
                 give(asker, coded);
@@ -1660,12 +1701,9 @@ public final class DoorScan {
         }
 
         private void loseRoot() {
-            if (current != null) {
-                current.ended = true;
-                current.root = null;
-            }
-            Node asker = leaveLife();
-            if (asker == null) {
+            lives.setHalf(lifeNow(), ROOT, 0);
+            int asker = leaveLife();
+            if (asker == 0) {
                 outcome = 'f';
             } else {
                 retreat(asker);
@@ -1673,79 +1711,80 @@ public final class DoorScan {
         }
 
         /** Goes from a life to the '@' that asked it; there is none for the run. */
-        private Node leaveLife() {
-            Life life = current;
-            if (life == null || life.asker == null) {
-                return null;
+        private int leaveLife() {
+            if (level <= 0 || level >= askers.length) {
+                return 0;
             }
-            Node asker = life.asker;
-            current = life.outer;
-            life.asker = null;
-            life.outer = null;
-            return asker;
+            level--;
+            return askers[level + 1];
         }
 
-        private void makeLife(Node node) {
-            Life life = heap.takeLife(program.partOf(node.expression, 1), current.subject, current.place);
-            life.copyVariables(node.frame.variables);
-            give(node, coded(IS_LIFE, life.index));
+        private void makeLife(int node) {
+            int life = heap.takeLife(program.partOf(expressionOf(node), 1), subjectNow(), placeNow());
+            for (int i = 0; i < VARIABLES; i++) {
+                lives.setWhole(life, FIRST_COPIED + i, variableOf(node, i));
+            }
+            give(node, coded(IS_LIFE, life));
         }
 
-        private void askLife(Node node, long coded) {
-            Life life = heap.lifeOf(coded);
-            if (life == null) {
+        private void askLife(int node, long coded) {
+            int life = heap.lifeOf(coded);
+            if (life == 0) {
                 stop('t', node);
-            } else if (current.level >= MOST_ASKED) {
+            } else if (level < 0 || level >= MOST_ASKED) {
                 stop('d', node);
-            } else if (life.ended) {
+            } else if (lives.half(life, OWN_FRAME) != 0 && lives.half(life, ROOT) == 0) {
+                // it has no more
                 retreat(node);
             } else {
-                life.asker = node;
-                life.outer = current;
-                life.level = current.level + 1;
-                enter(life);
+                level++;
+                asked[level] = life;
+                askers[level] = node;
+                enter();
             }
         }
 
-        private void renewLife(Node node, long coded) {
-            Life old = heap.lifeOf(coded);
-            if (old == null) {
+        private void renewLife(int node, long coded) {
+            int old = heap.lifeOf(coded);
+            if (old == 0) {
                 stop('t', node);
                 return;
             }
-            Life life = heap.takeLife(old.expression, old.copiedSubject, old.copiedPlace);
-            life.copyVariables(old.copied);
-            give(node, coded(IS_LIFE, life.index));
+            int life = heap.takeLife(lives.half(old, BODY), lives.whole(old, COPIED_SUBJECT),
+                    lives.half(old, COPIED_PLACE));
+            for (int i = 0; i < VARIABLES; i++) {
+                lives.setWhole(life, FIRST_COPIED + i, lives.whole(old, FIRST_COPIED + i));
+            }
+            give(node, coded(IS_LIFE, life));
         }
 
         // ---- an expression is begun
 
-        private void start(Node node) {
+        private void start(int node) {
             if (stepsLeft <= 0) {
                 stop('l', node);
                 return;
             }
             stepsLeft--;
             expect(node);
-            int amount = program.amountOf(node.expression);
-            switch (node.kind) {
+            switch (heap.kindOf(node)) {
                 case NUMBER:
-                    giveNumber(node, amount);
+                    giveNumber(node, amountOf(node));
                     break;
                 case TEXT:
-                    give(node, coded(IS_TEXT, -1 - node.expression));
+                    give(node, coded(IS_TEXT, -1 - expressionOf(node)));
                     break;
                 case VARIABLE:
-                    readVariable(node, amount);
+                    readVariable(node);
                     break;
                 case 'q':
-                    give(node, current.subject);
+                    give(node, subjectNow());
                     break;
                 case 'p':
-                    giveNumber(node, current.place);
+                    giveNumber(node, placeNow());
                     break;
                 case 'x': case 'y':
-                    swap(node, amount, program.otherOf(node.expression));
+                    swap(node, amountOf(node), program.otherOf(expressionOf(node)));
                     break;
                 case 'c':
                     makeLife(node);
@@ -1757,7 +1796,7 @@ public final class DoorScan {
                     leaveLoop(node);
                     break;
                 case 'S': case 'R': case 'f':
-                    if (node.frame.call == null) {
+                    if (callOf(node) == 0) {
                         stop('b', node);
                     } else if (isTold(node, 1)) {
                         open(node, 1);
@@ -1772,22 +1811,20 @@ public final class DoorScan {
         }
 
         /** Which numbers are of use to the parent; those of 'S' go to the one that its procedure's call is in. */
-        private void expect(Node node) {
-            Node parent = node.parent;
-            if (parent == null) {
+        private void expect(int node) {
+            int parent = parentOf(node);
+            if (parent == 0) {
                 operations.expectAll();
             } else {
-                Node call = parent.frame.call;
-                Node giver = parent.kind == 'S' && call != null ? call : parent;
-                operations.expectOf(parent.expression, node.part, parent.one, giver.low, giver.high, giver.isTraced);
+                int giver = heap.kindOf(parent) == 'S' ? callOf(parent) : parent;
+                operations.expectOf(expressionOf(parent), heap.partOf(node), nodes.whole(parent, ONE),
+                        nodes.half(giver, LOW), nodes.half(giver, HIGH), heap.isTraced(giver));
             }
-            node.low = operations.low();
-            node.high = operations.high();
-            node.isTraced = operations.isTraced();
+            heap.expect(node, operations.low(), operations.high(), operations.isTraced());
         }
 
-        private void readVariable(Node node, int variable) {
-            long coded = node.frame.get(variable);
+        private void readVariable(int node) {
+            long coded = variableOf(node, amountOf(node));
             if (coded == 0) {
                 stop('x', node);
             } else {
@@ -1795,38 +1832,39 @@ public final class DoorScan {
             }
         }
 
-        private void swap(Node node, int variable, int other) {
-            node.one = node.frame.get(variable);
-            node.two = node.frame.get(other);
-            if (node.one == 0 || node.two == 0) {
+        private void swap(int node, int variable, int other) {
+            long one = variableOf(node, variable);
+            long two = variableOf(node, other);
+            if (one == 0 || two == 0) {
                 stop('x', node);
                 return;
             }
-            node.frame.set(variable, node.two);
-            node.frame.set(other, node.one);
-            give(node, node.frame.get(variable));
+            nodes.setWhole(node, ONE, one);
+            nodes.setWhole(node, TWO, two);
+            setVariable(node, variable, two);
+            setVariable(node, other, one);
+            give(node, two);
         }
 
         // ---- an expression is gone back into
 
-        private void goBack(Node node) {
-            int variable = program.amountOf(node.expression);
-            switch (node.kind) {
+        private void goBack(int node) {
+            switch (heap.kindOf(node)) {
                 case 'u':
-                    node.frame.set(variable, node.one);
+                    setVariable(node, amountOf(node), nodes.whole(node, ONE));
                     retreat(node);
                     break;
                 case 'y':
-                    node.frame.set(variable, node.one);
-                    node.frame.set(program.otherOf(node.expression), node.two);
+                    setVariable(node, amountOf(node), nodes.whole(node, ONE));
+                    setVariable(node, program.otherOf(expressionOf(node)), nodes.whole(node, TWO));
                     fail(node);
                     break;
                 case 'T': case 'm':
-                    current.place = node.x;
+                    moveTo(nodes.half(node, X));
                     retreat(node);
                     break;
                 case 't':
-                    count(node, node.x + 1L);
+                    count(node, nodes.half(node, X) + 1L);
                     break;
                 case 'U': case 'F':
                     goOnSeeking(node);
@@ -1844,35 +1882,38 @@ public final class DoorScan {
             }
         }
 
-        private void count(Node node, long from) {
-            long next = Operations.counted(from, node.y, node.low, node.high, node.isTraced);
-            if (next > node.y) {
+        private void count(int node, long from) {
+            int last = nodes.half(node, Y);
+            long next = Operations.counted(from, last, nodes.half(node, LOW), nodes.half(node, HIGH),
+                    heap.isTraced(node));
+            if (next > last) {
                 retreat(node);
             } else {
-                node.x = (int) next;
-                giveNumber(node, node.x);
+                nodes.setHalf(node, X, (int) next);
+                giveNumber(node, (int) next);
             }
         }
 
-        private void goOnSeeking(Node node) {
-            int place = operations.seek(node.kind, node.one, current.subject, node.x);
+        private void goOnSeeking(int node) {
+            int place = operations.seek(heap.kindOf(node), nodes.whole(node, ONE), subjectNow(),
+                    nodes.half(node, X));
             if (place == 0) {
                 retreat(node);
             } else {
-                node.x = place + 1;
+                nodes.setHalf(node, X, place + 1);
                 giveNumber(node, place);
             }
         }
 
-        private void goBackIntoCall(Node node) {
-            Node waiting = node.waiting;
-            node.waiting = null;
-            if (waiting == null) {
+        private void goBackIntoCall(int node) {
+            int waiting = nodes.half(node, WAITING);
+            nodes.setHalf(node, WAITING, 0);
+            if (waiting == 0) {
                 retreat(node);
                 return;
             }
-            Node scan = scanAround(waiting, node);
-            if (scan != null) {
+            int scan = scanAround(waiting, node);
+            if (scan != 0) {
                 enterScan(scan);
             }
             retreat(waiting);
@@ -1880,12 +1921,12 @@ public final class DoorScan {
 
         // ---- a part has a value
 
-        private void take(Node node, int part, long coded) {
-            if (node == null) {
+        private void take(int node, int part, long coded) {
+            if (node == 0) {
                 takeFromRoot(coded);
                 return;
             }
-            switch (node.kind) {
+            switch (heap.kindOf(node)) {
                 case '|':
                     give(node, coded);
                     break;
@@ -1893,14 +1934,16 @@ public final class DoorScan {
                     giveOrOpen(node, part, coded);
                     break;
                 case ';': case 'i':
-                    node.first = null;
+                    if (part == 1) {
+                        heap.dropLatest(node);
+                    }
                     giveOrOpen(node, part, coded);
                     break;
                 case '!':
                     fail(node);
                     break;
                 case 'r':
-                    node.x = 1;
+                    nodes.setHalf(node, X, 1);
                     give(node, coded);
                     break;
                 case 'l':
@@ -1918,6 +1961,15 @@ public final class DoorScan {
                 case CALL:
                     takeArgument(node, part, coded);
                     break;
+                case 'S':
+                    suspend(node, coded);
+                    break;
+                case 'R':
+                    endWith(node, coded);
+                    break;
+                case '@':
+                    askLife(node, coded);
+                    break;
                 case '+': case '-': case '*': case '/': case '<': case '=': case '.': case '~': case 't': case '[':
                     takeOperand(node, part, coded);
                     break;
@@ -1928,24 +1980,15 @@ public final class DoorScan {
         }
 
         /** The other kinds with an only part. */
-        private void takeOnly(Node node, long coded) {
-            switch (node.kind) {
+        private void takeOnly(int node, long coded) {
+            switch (heap.kindOf(node)) {
                 case 'T': case 'm':
                     travel(node, coded);
                     break;
                 case 'U': case 'F':
-                    node.one = coded;
-                    node.x = current.place;
+                    nodes.setWhole(node, ONE, coded);
+                    nodes.setHalf(node, X, placeNow());
                     goOnSeeking(node);
-                    break;
-                case 'S':
-                    suspend(node, coded);
-                    break;
-                case 'R':
-                    endWith(node, coded);
-                    break;
-                case '@':
-                    askLife(node, coded);
                     break;
                 case '^':
                     renewLife(node, coded);
@@ -1956,7 +1999,7 @@ public final class DoorScan {
             }
         }
 
-        private void giveOrOpen(Node node, int part, long coded) {
+        private void giveOrOpen(int node, int part, long coded) {
             if (part == 1) {
                 open(node, 2);
             } else {
@@ -1964,12 +2007,13 @@ public final class DoorScan {
             }
         }
 
-        private void limit(Node node, int part, long coded) {
+        private void limit(int node, int part, long coded) {
             if (part == 2) {
-                node.x--;
-                if (node.x <= 0) {
+                int more = nodes.half(node, X) - 1;
+                nodes.setHalf(node, X, more);
+                if (more <= 0) {
                     // nothing more is asked of what the first values are taken of
-                    node.second = null;
+                    heap.dropLatest(node);
                 }
                 give(node, coded);
                 return;
@@ -1978,31 +2022,32 @@ public final class DoorScan {
             if (most == Texts.NO_NUMBER || most <= 0) {
                 retreat(node);
             } else {
-                node.x = (int) most;
+                nodes.setHalf(node, X, (int) most);
                 open(node, 2);
             }
         }
 
-        private void set(Node node, long coded) {
-            int variable = program.amountOf(node.expression);
-            node.one = node.frame.get(variable);
-            node.frame.set(variable, coded);
+        private void set(int node, long coded) {
+            int variable = amountOf(node);
+            nodes.setWhole(node, ONE, variableOf(node, variable));
+            setVariable(node, variable, coded);
             give(node, coded);
         }
 
-        private void travel(Node node, long coded) {
-            int goal = operations.goal(node.kind, coded, current.subject, current.place);
+        private void travel(int node, long coded) {
+            int place = placeNow();
+            int goal = operations.goal(heap.kindOf(node), coded, subjectNow(), place);
             if (goal == 0) {
                 retreat(node);
                 return;
             }
-            node.x = current.place;
-            current.place = goal;
-            give(node, operations.between(current.subject, node.x, goal));
+            nodes.setHalf(node, X, place);
+            moveTo(goal);
+            give(node, operations.between(subjectNow(), place, goal));
         }
 
-        private void match(Node node, long coded) {
-            int place = operations.match(node.kind, coded, current.subject, current.place);
+        private void match(int node, long coded) {
+            int place = operations.match(heap.kindOf(node), coded, subjectNow(), placeNow());
             if (place == 0) {
                 retreat(node);
             } else {
@@ -2011,17 +2056,18 @@ public final class DoorScan {
         }
 
         /** The kinds that need a value of each part. */
-        private void takeOperand(Node node, int part, long coded) {
+        private void takeOperand(int node, int part, long coded) {
+            char kind = heap.kindOf(node);
             if (part == 1) {
-                node.one = coded;
+                nodes.setWhole(node, ONE, coded);
                 open(node, 2);
-            } else if (node.kind == 't') {
+            } else if (kind == 't') {
                 startCounting(node, coded);
-            } else if (node.kind == '[' && part == 2) {
-                node.two = coded;
+            } else if (kind == '[' && part == 2) {
+                nodes.setWhole(node, TWO, coded);
                 open(node, 3);
             } else {
-                char answer = operations.work(node.kind, node.one, node.two, coded);
+                char answer = operations.work(kind, nodes.whole(node, ONE), nodes.whole(node, TWO), coded);
                 if (answer == 'v') {
                     give(node, operations.result());
                 } else if (answer == 'f') {
@@ -2032,26 +2078,27 @@ public final class DoorScan {
             }
         }
 
-        private void startCounting(Node node, long coded) {
-            long from = texts.numberOf(node.one);
+        private void startCounting(int node, long coded) {
+            long from = texts.numberOf(nodes.whole(node, ONE));
             long to = texts.numberOf(coded);
             if (from == Texts.NO_NUMBER || to == Texts.NO_NUMBER) {
                 retreat(node);
             } else {
-                node.y = (int) to;
+                nodes.setHalf(node, Y, (int) to);
                 count(node, from);
             }
         }
 
         // ---- a part has no more values
 
-        private void lose(Node node, int part) {
-            if (node == null) {
+        private void lose(int node) {
+            if (node == 0) {
                 loseRoot();
                 return;
             }
-            node.hold(part, null);
-            switch (node.kind) {
+            int part = heap.partOf(at);
+            heap.dropLatest(node);
+            switch (heap.kindOf(node)) {
                 case '|': case ';':
                     openOrFail(node, part == 1, 2);
                     break;
@@ -2062,8 +2109,8 @@ public final class DoorScan {
                     giveNumber(node, 0);
                     break;
                 case 'r':
-                    openOrFail(node, node.x == 1, 1);
-                    node.x = 0;
+                    openOrFail(node, nodes.half(node, X) == 1, 1);
+                    nodes.setHalf(node, X, 0);
                     break;
                 case 'w':
                     openOrFail(node, part == 2, 1);
@@ -2083,7 +2130,7 @@ public final class DoorScan {
             }
         }
 
-        private void openOrFail(Node node, boolean isOpened, int part) {
+        private void openOrFail(int node, boolean isOpened, int part) {
             if (isOpened) {
                 open(node, part);
             } else {
@@ -2094,65 +2141,65 @@ public final class DoorScan {
         // ---- loops
 
         /** A value of a loop's a or b; or of the a of a 'b' that has left it, which is its third part. */
-        private void loop(Node node, int part, long coded) {
+        private void loop(int node, int part, long coded) {
             if (part == 3) {
                 give(node, coded);
-                return;
-            }
-            if (node.kind == 'w') {
-                node.first = null;
-                node.second = null;
+            } else if (heap.kindOf(node) == 'w') {
+                dropParts(node);
                 open(node, part == 1 && isTold(node, 2) ? 2 : 1);
             } else if (part == 1 && isTold(node, 2)) {
                 open(node, 2);
             } else {
-                node.second = null;
+                if (part == 2) {
+                    heap.dropLatest(node);
+                }
                 retreat(node);
             }
         }
 
-        /** The innermost loop around the expression in its procedure, or null. */
-        private Node loopAround(Node inner) {
-            for (Node node = inner; node.parent != null; node = node.parent) {
-                Node around = node.parent;
-                if (around.kind == CALL && node.part == 3) {
-                    return null;
+        /** The innermost loop around the expression in its procedure, or 0. */
+        private int loopAround(int inner) {
+            int node = inner;
+            for (int i = 0; i < MOST_AROUND && parentOf(node) != 0; i++) {
+                int part = heap.partOf(node);
+                node = parentOf(node);
+                char kind = heap.kindOf(node);
+                if (kind == CALL && part == 3) {
+                    return 0;
                 }
-                if ((around.kind == 'e' || around.kind == 'w') && node.part != 3) {
-                    return around;
+                if ((kind == 'e' || kind == 'w') && part != 3) {
+                    return node;
                 }
             }
-            return null;
+            return 0;
         }
 
-        private void leaveLoop(Node node) {
-            Node loop = loopAround(node);
-            if (loop == null) {
+        private void leaveLoop(int node) {
+            int loop = loopAround(node);
+            if (loop == 0) {
                 stop('b', node);
                 return;
             }
             leaveScans(node, loop);
-            loop.first = null;
-            loop.second = null;
+            dropParts(loop);
             if (isTold(node, 1)) {
-                openIn(loop, 3, program.partOf(node.expression, 1), loop.frame);
+                openIn(loop, 3, program.partOf(expressionOf(node), 1), nodes.half(loop, FRAME));
             } else {
                 fail(loop);
             }
         }
 
-        private void goOn(Node node) {
-            Node loop = loopAround(node);
-            if (loop == null) {
+        private void goOn(int node) {
+            int loop = loopAround(node);
+            if (loop == 0) {
                 stop('b', node);
-            } else if (loop.kind == 'w') {
+            } else if (heap.kindOf(loop) == 'w') {
                 leaveScans(node, loop);
-                loop.first = null;
-                loop.second = null;
+                dropParts(loop);
                 open(loop, 1);
-            } else if (loop.second != null) {
+            } else if (heap.partOf(nodes.half(loop, LATEST)) == 2) {
                 leaveScans(node, loop);
-                loop.second = null;
+                heap.dropLatest(loop);
                 retreat(loop);
             } else {
                 // the next value of a comes from the latest place in it, as behind any failing
@@ -2162,7 +2209,7 @@ public final class DoorScan {
 
         // ---- scanning
 
-        private void scan(Node node, int part, long coded) {
+        private void scan(int node, int part, long coded) {
             if (part == 2) {
                 keepInside(node);
                 leaveScan(node);
@@ -2173,111 +2220,100 @@ public final class DoorScan {
                 retreat(node);
                 return;
             }
-            node.one = current.subject;
-            node.x = current.place;
-            current.subject = operations.result();
-            current.place = 1;
+            nodes.setWhole(node, ONE, subjectNow());
+            nodes.setHalf(node, X, placeNow());
+            scanFrom(operations.result(), 1);
             open(node, 2);
         }
 
-        private void keepInside(Node scan) {
-            scan.two = current.subject;
-            scan.y = current.place;
+        private void keepInside(int scan) {
+            nodes.setWhole(scan, TWO, subjectNow());
+            nodes.setHalf(scan, Y, placeNow());
         }
 
-        private void enterScan(Node scan) {
-            current.subject = scan.two;
-            current.place = scan.y;
+        private void enterScan(int scan) {
+            scanFrom(nodes.whole(scan, TWO), nodes.half(scan, Y));
         }
 
-        private void leaveScan(Node scan) {
-            current.subject = scan.one;
-            current.place = scan.x;
+        private void leaveScan(int scan) {
+            scanFrom(nodes.whole(scan, ONE), nodes.half(scan, X));
         }
 
-        private void leaveScans(Node inner, Node outer) {
-            for (Node node = inner; node != outer && node.parent != null; node = node.parent) {
-                if (node.parent.kind == 's' && node.part == 2) {
-                    leaveScan(node.parent);
-                }
+        private void leaveScans(int inner, int outer) {
+            int scan = scanAround(inner, outer);
+            for (int i = 0; i < MOST_AROUND && scan != 0; i++) {
+                leaveScan(scan);
+                scan = scanAround(scan, outer);
             }
         }
 
-        /** The innermost scanning around the one within the other, or null. */
-        private static Node scanAround(Node inner, Node outer) {
-            for (Node node = inner; node != outer && node.parent != null; node = node.parent) {
-                if (node.parent.kind == 's' && node.part == 2) {
-                    return node.parent;
+        /** The innermost scanning around the one within the other, or 0. */
+        private int scanAround(int inner, int outer) {
+            int node = inner;
+            for (int i = 0; i < MOST_AROUND && node != outer && parentOf(node) != 0; i++) {
+                int part = heap.partOf(node);
+                node = parentOf(node);
+                if (heap.kindOf(node) == 's' && part == 2) {
+                    return node;
                 }
             }
-            return null;
+            return 0;
         }
 
         // ---- procedures
 
-        private void takeArgument(Node node, int part, long coded) {
+        private void takeArgument(int node, int part, long coded) {
             if (part == 3) {
-                node.third = null;
+                heap.dropLatest(node);
                 retreat(node);
             } else if (part == 1 && isTold(node, 2)) {
-                node.one = coded;
+                nodes.setWhole(node, ONE, coded);
                 open(node, 2);
             } else if (part == 1) {
                 invoke(node, coded, 0);
             } else {
-                invoke(node, node.one, coded);
+                invoke(node, nodes.whole(node, ONE), coded);
             }
         }
 
-        private void invoke(Node node, long first, long second) {
-            int body = program.bodyOf(program.amountOf(node.expression));
+        private void invoke(int node, long first, long second) {
+            int body = program.bodyOf(amountOf(node));
+            int caller = nodes.half(node, FRAME);
             if (body == NONE) {
                 stop('x', node);
-            } else if (node.frame.depth >= MOST_WITHIN) {
+            } else if (frames.half(caller, DEPTH) >= MOST_WITHIN) {
                 stop('d', node);
             } else {
-                Frame frame = heap.takeFrame(node, node.frame);
-                frame.set(0, first);
-                frame.set(1, second);
+                int frame = heap.takeFrame(node, caller);
+                frames.setWhole(frame, FIRST_VARIABLE, first);
+                frames.setWhole(frame, FIRST_VARIABLE + 1, second);
                 openIn(node, 3, body, frame);
             }
         }
 
-        private void suspend(Node node, long coded) {
-            Node call = node.frame.call;
-            if (call == null) {
-                stop('b', node);
-                return;
-            }
-            Node scan = scanAround(node, call);
-            if (scan != null) {
+        private void suspend(int node, long coded) {
+            int call = callOf(node);
+            int scan = scanAround(node, call);
+            if (scan != 0) {
                 keepInside(scan);
             }
             leaveScans(node, call);
-            call.waiting = node;
+            nodes.setHalf(call, WAITING, node);
             give(call, coded);
         }
 
-        private void endWith(Node node, long coded) {
-            Node call = node.frame.call;
-            if (call == null) {
-                stop('b', node);
-                return;
-            }
+        private void endWith(int node, long coded) {
+            int call = callOf(node);
             leaveScans(node, call);
-            call.third = null;
+            heap.dropLatest(call);
             give(call, coded);
         }
 
         /** Ends the procedure without a value: the call goes back into its parts. */
-        private void endProcedure(Node node) {
-            Node call = node.frame.call;
-            if (call == null) {
-                stop('b', node);
-                return;
-            }
+        private void endProcedure(int node) {
+            int call = callOf(node);
             leaveScans(node, call);
-            call.third = null;
+            heap.dropLatest(call);
             retreat(call);
         }
     }
@@ -2487,7 +2523,7 @@ public final class DoorScan {
                 texts.mark(entry(i).two);
             }
             rooms.mark(texts);
-            texts.sweep();
+            texts.sweep(0);
         }
 
         // ---- the stack
