@@ -1076,6 +1076,37 @@ public final class DoorScan {
             }
         }
 
+        /** Whether a part's number is of use once only, if what the expression makes of it is. */
+        static boolean isOnce(char kind, int part) {
+            return kind != ':' && (kind != 'l' || part == 1);
+        }
+
+        /**
+         * A 't' notes the highest number that it has given, with all below it, and how many events there were. If there
+         * has been none since, a step or a value, the same numbers would be given in vain again.
+         */
+        private static long note(int events, long number) {
+            // the upper half is that of no value
+            return (long) (events | LEAST_NUMBER) << 32 | Math.max(number, LEAST_NUMBER) & LOWER;
+        }
+
+        private static boolean isLatest(long noted, int events) {
+            return (int) (noted >>> 32) == (events | LEAST_NUMBER);
+        }
+
+        /** The first number of a row that is not given in vain. */
+        static long firstOf(long noted, int events, long from) {
+            return isLatest(noted, events) ? Math.max(from, (int) noted + 1L) : from;
+        }
+
+        static long noteAhead(long noted, int events, long from) {
+            return isLatest(noted, events) ? noted : note(events, from - 1);
+        }
+
+        static long noteBehind(long noted, int events, long last) {
+            return isLatest(noted, events) ? note(events, Math.max((int) noted, last)) : noted;
+        }
+
         /** The next number from this one on that a 't' gives, or one that is more than its last. */
         static long counted(long from, long last, int least, int most, boolean traced) {
             if (from > last || from >= least && from <= most) {
@@ -1248,6 +1279,7 @@ public final class DoorScan {
         private static final int EXPRESSION_BITS = 8;
         private static final int PART_BITS = 2;
         private static final int TRACED = 1 << EXPRESSION_BITS + PART_BITS;
+        private static final int ONCE = TRACED << 1;
         private static final int KIND_AT = 16;
 
         private final Rows nodes;
@@ -1301,12 +1333,14 @@ public final class DoorScan {
             return (nodes.half(node, WHAT) & TRACED) != 0;
         }
 
-        void expect(int node, int low, int high, boolean traced) {
+        boolean isOnce(int node) {
+            return (nodes.half(node, WHAT) & ONCE) != 0;
+        }
+
+        void expect(int node, int low, int high, boolean traced, boolean once) {
             nodes.setHalf(node, LOW, low);
             nodes.setHalf(node, HIGH, high);
-            if (traced) {
-                nodes.setHalf(node, WHAT, nodes.half(node, WHAT) | TRACED);
-            }
+            nodes.setHalf(node, WHAT, nodes.half(node, WHAT) | (traced ? TRACED : 0) | (once ? ONCE : 0));
         }
 
         /** Leaves the part that was begun last. */
@@ -1443,10 +1477,11 @@ public final class DoorScan {
         private int at;
         private long given;
         private char outcome;
-        private char ended;
         private char problem;
         private int chained;
         private int stepsLeft;
+        /** How many steps were made and how many values the run and its lives gave. */
+        private int events;
 
         Machine(Program program, long mostMoves) {
             this.program = program;
@@ -1467,10 +1502,11 @@ public final class DoorScan {
             askers[0] = 0;
             at = 0;
             given = 0;
-            ended = 0;
+            outcome = 0;
             problem = 0;
             chained = 0;
             stepsLeft = 0;
+            events = 0;
         }
 
         void allow(int steps) {
@@ -1490,8 +1526,9 @@ public final class DoorScan {
             return given;
         }
 
+        /** 'f' or 'e', behind which there are no more values; or 0. */
         char ended() {
-            return ended;
+            return outcome == 'v' ? 0 : outcome;
         }
 
         char problem() {
@@ -1519,8 +1556,8 @@ public final class DoorScan {
         }
 
         char ask() {
-            if (ended != 0) {
-                return ended;
+            if (outcome == 'f' || outcome == 'e') {
+                return outcome;
             }
             outcome = 0;
             given = 0;
@@ -1545,7 +1582,6 @@ public final class DoorScan {
                 stop('l', at);
             }
             if (outcome != 'v') {
-                ended = outcome;
                 given = 0;
             }
             return outcome;
@@ -1692,6 +1728,7 @@ public final class DoorScan {
 
         /** The root of the run, or of a life, has given a value. */
         private void takeFromRoot(long coded) {
+            events++;
             int asker = leaveLife();
             if (asker == 0) {
                 outcome = 'v';
@@ -1766,6 +1803,7 @@ public final class DoorScan {
                 return;
             }
             stepsLeft--;
+            events++;
             expect(node);
             switch (heap.kindOf(node)) {
                 case NUMBER:
@@ -1813,14 +1851,18 @@ public final class DoorScan {
         /** Which numbers are of use to the parent; those of 'S' go to the one that its procedure's call is in. */
         private void expect(int node) {
             int parent = parentOf(node);
+            boolean once = true;
             if (parent == 0) {
                 operations.expectAll();
             } else {
-                int giver = heap.kindOf(parent) == 'S' ? callOf(parent) : parent;
-                operations.expectOf(expressionOf(parent), heap.partOf(node), nodes.whole(parent, ONE),
-                        nodes.half(giver, LOW), nodes.half(giver, HIGH), heap.isTraced(giver));
+                char kind = heap.kindOf(parent);
+                int part = heap.partOf(node);
+                int giver = kind == 'S' ? callOf(parent) : parent;
+                operations.expectOf(expressionOf(parent), part, nodes.whole(parent, ONE), nodes.half(giver, LOW),
+                        nodes.half(giver, HIGH), heap.isTraced(giver));
+                once = heap.isOnce(giver) && Operations.isOnce(kind, part);
             }
-            heap.expect(node, operations.low(), operations.high(), operations.isTraced());
+            heap.expect(node, operations.low(), operations.high(), operations.isTraced(), once);
         }
 
         private void readVariable(int node) {
@@ -1887,6 +1929,7 @@ public final class DoorScan {
             long next = Operations.counted(from, last, nodes.half(node, LOW), nodes.half(node, HIGH),
                     heap.isTraced(node));
             if (next > last) {
+                nodes.setWhole(node, TWO, Operations.noteBehind(nodes.whole(node, TWO), events, last));
                 retreat(node);
             } else {
                 nodes.setHalf(node, X, (int) next);
@@ -2084,8 +2127,10 @@ public final class DoorScan {
             if (from == Texts.NO_NUMBER || to == Texts.NO_NUMBER) {
                 retreat(node);
             } else {
+                long noted = nodes.whole(node, TWO);
                 nodes.setHalf(node, Y, (int) to);
-                count(node, from);
+                nodes.setWhole(node, TWO, Operations.noteAhead(noted, events, from));
+                count(node, heap.isOnce(node) ? Operations.firstOf(noted, events, from) : from);
             }
         }
 
@@ -2336,6 +2381,7 @@ public final class DoorScan {
         private int low;
         private int high;
         private boolean isTraced;
+        private boolean isOnce;
         /** How many expressions are open, and how many rooms are used, with this entry on top. */
         private int open;
         private int rooms;
@@ -2429,6 +2475,8 @@ public final class DoorScan {
         private int height;
         private int openNow;
         private int stepsLeft;
+        /** How many steps were made and how many values were handed on to the caller. */
+        private int events;
         private long mostMoves;
         private long subject;
         private int place;
@@ -2436,7 +2484,6 @@ public final class DoorScan {
         private int at;
         private long given;
         private char outcome;
-        private char ended;
         private char problem;
 
         Handing(Program program) {
@@ -2457,11 +2504,12 @@ public final class DoorScan {
             height = 0;
             openNow = 0;
             stepsLeft = steps;
+            events = 0;
             mostMoves = moves;
             subject = Texts.EMPTY;
             place = 1;
             given = 0;
-            ended = 0;
+            outcome = 0;
             problem = 0;
         }
 
@@ -2479,8 +2527,8 @@ public final class DoorScan {
 
         /** Hands the next value to the caller, whose asking again comes back to the finder. */
         char ask() {
-            if (ended != 0) {
-                return ended;
+            if (outcome == 'f' || outcome == 'e') {
+                return outcome;
             }
             outcome = 0;
             move = BACK;
@@ -2509,7 +2557,6 @@ public final class DoorScan {
                 stop('l');
             }
             if (outcome != 'v') {
-                ended = outcome;
                 given = 0;
             }
             return outcome;
@@ -2576,6 +2623,7 @@ public final class DoorScan {
                 return;
             }
             stepsLeft--;
+            events++;
             openNow++;
             at = height;
             move = START;
@@ -2676,6 +2724,7 @@ public final class DoorScan {
 
         /** Which numbers are of use to the receiver; those of 'S' go to the one that its procedure's call is in. */
         private void expect(Entry entry) {
+            entry.isOnce = true;
             if (entry.receiver == NONE) {
                 operations.expectAll();
             } else {
@@ -2683,6 +2732,7 @@ public final class DoorScan {
                 Entry giver = receiver.kind == 'S' ? entry(rooms.callOf(receiver.room)) : receiver;
                 operations.expectOf(receiver.expression, entry.part, receiver.one, giver.low, giver.high,
                         giver.isTraced);
+                entry.isOnce = giver.isOnce && Operations.isOnce(receiver.kind, entry.part);
             }
             entry.low = operations.low();
             entry.high = operations.high();
@@ -2744,6 +2794,7 @@ public final class DoorScan {
         private void count(int index, Entry entry, long from) {
             long next = Operations.counted(from, entry.y, entry.low, entry.high, entry.isTraced);
             if (next > entry.y) {
+                entry.two = Operations.noteBehind(entry.two, events, entry.y);
                 leave(height - 1);
             } else {
                 entry.x = (int) next;
@@ -2812,6 +2863,7 @@ public final class DoorScan {
 
         private void take(int index, int part, long coded) {
             if (index == NONE) {
+                events++;
                 outcome = 'v';
                 return;
             }
@@ -2976,9 +3028,11 @@ public final class DoorScan {
                 return;
             }
             Entry entry = entry(index);
+            long noted = entry.two;
             entry.y = (int) to;
+            entry.two = Operations.noteAhead(noted, events, from);
             note(COUNT, index);
-            count(index, entry, from);
+            count(index, entry, entry.isOnce ? Operations.firstOf(noted, events, from) : from);
         }
 
         // ---- loops
