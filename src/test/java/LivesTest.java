@@ -11,6 +11,9 @@ public final class LivesTest {
         Kit.values("c f", "(^ (c 1))");
         Kit.values("c c f", "(^ (| (c 1) (c 2)))");
         Kit.values("2 f", "(; (: 0 (c 1)) (; (@ v0) (; (@ v0) (i (@ v0) 1 2))))");
+        // a life that has no more is passed over, for each value of a
+        Kit.values("0 2 3 f", "(; (: 0 (c 1)) (; (@ v0) (| (! (@ v0)) (@ (| v0 (| (c 2) (| v0 (c 3))))))))");
+        Kit.values("7 7 f", "(; (: 0 (c (< 2 1))) (@ (& (| 1 2) (| v0 (| v0 (c 7))))))");
         copies();
         own();
         errors();
@@ -61,6 +64,7 @@ public final class LivesTest {
             Kit.values("f", "(" + kind + " (c 1))");
         }
         Kit.values("f", "(s (c 1) 1)");
+        Kit.values("'ab' 2 '7' 1 f", "(s (| (c 1) (| 'ab' (| (c 2) 7))) (| q (i (~ q 'ab') 2 1)))");
         Kit.values("f", "([ (c 1) 1 1)");
     }
 }
