@@ -118,7 +118,7 @@ public final class RoomTest {
 
     private static long bytes() {
         ThreadMXBean threads = (ThreadMXBean) ManagementFactory.getThreadMXBean();
-        return threads.getThreadAllocatedBytes(Thread.currentThread().getId());
+        return threads.getCurrentThreadAllocatedBytes();
     }
 
     /** Counts what can be reached from an object. */
