@@ -1076,37 +1076,6 @@ public final class DoorScan {
             }
         }
 
-        /** Whether a part's number is of use once only, if what the expression makes of it is. */
-        static boolean isOnce(char kind, int part) {
-            return kind != ':' && (kind != 'l' || part == 1);
-        }
-
-        /**
-         * A 't' notes the highest number that it has given, with all below it, and how many events there were. If there
-         * has been none since, a step or a value, the same numbers would be given in vain again.
-         */
-        private static long note(int events, long number) {
-            // the upper half is that of no value
-            return (long) (events | LEAST_NUMBER) << 32 | Math.max(number, LEAST_NUMBER) & LOWER;
-        }
-
-        private static boolean isLatest(long noted, int events) {
-            return (int) (noted >>> 32) == (events | LEAST_NUMBER);
-        }
-
-        /** The first number of a row that is not given in vain. */
-        static long firstOf(long noted, int events, long from) {
-            return isLatest(noted, events) ? Math.max(from, (int) noted + 1L) : from;
-        }
-
-        static long noteAhead(long noted, int events, long from) {
-            return isLatest(noted, events) ? noted : note(events, from - 1);
-        }
-
-        static long noteBehind(long noted, int events, long last) {
-            return isLatest(noted, events) ? note(events, Math.max((int) noted, last)) : noted;
-        }
-
         /** The next number from this one on that a 't' gives, or one that is more than its last. */
         static long counted(long from, long last, int least, int most, boolean traced) {
             if (from > last || from >= least && from <= most) {
@@ -1230,15 +1199,16 @@ public final class DoorScan {
             return behind > place ? behind : 0;
         }
 
-        /** The next place that 'U' or 'F' gives, from this one on, or 0. */
-        int seek(char kind, long a, long subject, int from) {
+        /** The next place that 'U' or 'F' gives, from this one on, but for those that are bits of a long; or 0. */
+        int seek(char kind, long a, long subject, int from, long without) {
             int length = texts.load(subject, right);
             int size = texts.load(a, left);
             if (size < 0 || from < 1) {
                 return 0;
             }
             for (int place = from; place <= length + 1; place++) {
-                if (kind == 'F' ? begins(size, length, place) : place <= length && holds(size, place)) {
+                boolean isFound = kind == 'F' ? begins(size, length, place) : place <= length && holds(size, place);
+                if (isFound && (without >>> place & 1) == 0) {
                     return place;
                 }
             }
@@ -1271,6 +1241,71 @@ public final class DoorScan {
         }
     }
 
+    /**
+     * The numbers that a 't', 'U' or 'F' has given in vain: behind them nothing was begun, no value came of them, and
+     * nothing was changed that stays. Until the next event, which is a step or a value, they would come to the same
+     * again if the place is the same, as nothing else that is looked at changes between two events.
+     */
+    private static final class Vain {
+        /** The columns of a row: how many changes there were, and for each place what was given there. */
+        private static final int CHANGES = 1;
+        private static final int PLACES = 1;
+        private static final int WIDTH = PLACES + MOST_LETTERS + 2;
+
+        private final Rows rows = new Rows(WIDTH);
+        private int events;
+        private long changes;
+
+        /** A step was made, or the run or a life has given a value: all is forgotten. */
+        void event() {
+            events++;
+            rows.clear();
+        }
+
+        /** A ':' has set its variable, or an 'l' has counted a value. */
+        void change() {
+            changes++;
+        }
+
+        /** What is noted as numbers are to be given, behind an older note: how many events there were, and a row. */
+        long noteAhead(long noted) {
+            // the upper half is that of no value
+            long now = isLatest(noted) ? noted : (long) (events | LEAST_NUMBER) << 32 | rows.take();
+            rows.setWhole((int) now, CHANGES, changes);
+            return now;
+        }
+
+        private boolean isLatest(long noted) {
+            return (int) (noted >>> 32) == (events | LEAST_NUMBER);
+        }
+
+        /** The first number of a 't' from this one on that it has not given in vain at this place. */
+        long firstOf(long noted, int place, long from) {
+            long highest = rows.whole((int) noted, PLACES + place);
+            return highest == 0 ? from : Math.max(from, (int) highest + 1L);
+        }
+
+        /** A 't' has given its numbers up to this one; another time they all begin with the same one. */
+        void endRow(long noted, int place, int last) {
+            long highest = rows.whole((int) noted, PLACES + place);
+            boolean isInVain = isLatest(noted) && rows.whole((int) noted, CHANGES) == changes;
+            if (isInVain && (highest == 0 || (int) highest < last)) {
+                rows.setWhole((int) noted, PLACES + place, coded(IS_NUMBER, last));
+            }
+        }
+
+        /** The places that a 'U' or 'F' has given in vain at this place, as bits. */
+        long found(long noted, int place) {
+            return rows.whole((int) noted, PLACES + place);
+        }
+
+        void endFound(long noted, int place, int last) {
+            if (isLatest(noted) && rows.whole((int) noted, CHANGES) == changes) {
+                rows.setWhole((int) noted, PLACES + place, found(noted, place) | 1L << last);
+            }
+        }
+    }
+
     /** What a run and its lives have begun, in rows that are used again when nothing reaches them any more. */
     private static final class Heap {
         /** How many rows that are kept pay for one that may be taken ahead of the next collecting. */
@@ -1279,7 +1314,6 @@ public final class DoorScan {
         private static final int EXPRESSION_BITS = 8;
         private static final int PART_BITS = 2;
         private static final int TRACED = 1 << EXPRESSION_BITS + PART_BITS;
-        private static final int ONCE = TRACED << 1;
         private static final int KIND_AT = 16;
 
         private final Rows nodes;
@@ -1333,14 +1367,10 @@ public final class DoorScan {
             return (nodes.half(node, WHAT) & TRACED) != 0;
         }
 
-        boolean isOnce(int node) {
-            return (nodes.half(node, WHAT) & ONCE) != 0;
-        }
-
-        void expect(int node, int low, int high, boolean traced, boolean once) {
+        void expect(int node, int low, int high, boolean traced) {
             nodes.setHalf(node, LOW, low);
             nodes.setHalf(node, HIGH, high);
-            nodes.setHalf(node, WHAT, nodes.half(node, WHAT) | (traced ? TRACED : 0) | (once ? ONCE : 0));
+            nodes.setHalf(node, WHAT, nodes.half(node, WHAT) | (traced ? TRACED : 0));
         }
 
         /** Leaves the part that was begun last. */
@@ -1464,6 +1494,7 @@ public final class DoorScan {
         private final Texts texts;
         private final Operations operations;
         private final Heap heap;
+        private final Vain vain;
         private final Rows nodes;
         private final Rows frames;
         private final Rows lives;
@@ -1480,8 +1511,6 @@ public final class DoorScan {
         private char problem;
         private int chained;
         private int stepsLeft;
-        /** How many steps were made and how many values the run and its lives gave. */
-        private int events;
 
         Machine(Program program, long mostMoves) {
             this.program = program;
@@ -1489,6 +1518,7 @@ public final class DoorScan {
             texts = new Texts(program);
             operations = new Operations(texts);
             heap = new Heap(texts);
+            vain = new Vain();
             nodes = heap.nodes;
             frames = heap.frames;
             lives = heap.lives;
@@ -1506,7 +1536,6 @@ public final class DoorScan {
             problem = 0;
             chained = 0;
             stepsLeft = 0;
-            events = 0;
         }
 
         void allow(int steps) {
@@ -1728,7 +1757,7 @@ public final class DoorScan {
 
         /** The root of the run, or of a life, has given a value. */
         private void takeFromRoot(long coded) {
-            events++;
+            vain.event();
             int asker = leaveLife();
             if (asker == 0) {
                 outcome = 'v';
@@ -1803,7 +1832,7 @@ public final class DoorScan {
                 return;
             }
             stepsLeft--;
-            events++;
+            vain.event();
             expect(node);
             switch (heap.kindOf(node)) {
                 case NUMBER:
@@ -1851,18 +1880,14 @@ public final class DoorScan {
         /** Which numbers are of use to the parent; those of 'S' go to the one that its procedure's call is in. */
         private void expect(int node) {
             int parent = parentOf(node);
-            boolean once = true;
             if (parent == 0) {
                 operations.expectAll();
             } else {
-                char kind = heap.kindOf(parent);
-                int part = heap.partOf(node);
-                int giver = kind == 'S' ? callOf(parent) : parent;
-                operations.expectOf(expressionOf(parent), part, nodes.whole(parent, ONE), nodes.half(giver, LOW),
-                        nodes.half(giver, HIGH), heap.isTraced(giver));
-                once = heap.isOnce(giver) && Operations.isOnce(kind, part);
+                int giver = heap.kindOf(parent) == 'S' ? callOf(parent) : parent;
+                operations.expectOf(expressionOf(parent), heap.partOf(node), nodes.whole(parent, ONE),
+                        nodes.half(giver, LOW), nodes.half(giver, HIGH), heap.isTraced(giver));
             }
-            heap.expect(node, operations.low(), operations.high(), operations.isTraced(), once);
+            heap.expect(node, operations.low(), operations.high(), operations.isTraced());
         }
 
         private void readVariable(int node) {
@@ -1909,6 +1934,7 @@ public final class DoorScan {
                     count(node, nodes.half(node, X) + 1L);
                     break;
                 case 'U': case 'F':
+                    vain.endFound(nodes.whole(node, TWO), placeNow(), nodes.half(node, X));
                     goOnSeeking(node);
                     break;
                 case 's':
@@ -1929,7 +1955,7 @@ public final class DoorScan {
             long next = Operations.counted(from, last, nodes.half(node, LOW), nodes.half(node, HIGH),
                     heap.isTraced(node));
             if (next > last) {
-                nodes.setWhole(node, TWO, Operations.noteBehind(nodes.whole(node, TWO), events, last));
+                vain.endRow(nodes.whole(node, TWO), placeNow(), last);
                 retreat(node);
             } else {
                 nodes.setHalf(node, X, (int) next);
@@ -1938,12 +1964,14 @@ public final class DoorScan {
         }
 
         private void goOnSeeking(int node) {
+            long noted = vain.noteAhead(nodes.whole(node, TWO));
+            nodes.setWhole(node, TWO, noted);
             int place = operations.seek(heap.kindOf(node), nodes.whole(node, ONE), subjectNow(),
-                    nodes.half(node, X));
+                    nodes.half(node, X) + 1, vain.found(noted, placeNow()));
             if (place == 0) {
                 retreat(node);
             } else {
-                nodes.setHalf(node, X, place + 1);
+                nodes.setHalf(node, X, place);
                 giveNumber(node, place);
             }
         }
@@ -2030,7 +2058,7 @@ public final class DoorScan {
                     break;
                 case 'U': case 'F':
                     nodes.setWhole(node, ONE, coded);
-                    nodes.setHalf(node, X, placeNow());
+                    nodes.setHalf(node, X, placeNow() - 1);
                     goOnSeeking(node);
                     break;
                 case '^':
@@ -2052,6 +2080,7 @@ public final class DoorScan {
 
         private void limit(int node, int part, long coded) {
             if (part == 2) {
+                vain.change();
                 int more = nodes.half(node, X) - 1;
                 nodes.setHalf(node, X, more);
                 if (more <= 0) {
@@ -2072,6 +2101,9 @@ public final class DoorScan {
 
         private void set(int node, long coded) {
             int variable = amountOf(node);
+            if (heap.kindOf(node) == ':') {
+                vain.change();
+            }
             nodes.setWhole(node, ONE, variableOf(node, variable));
             setVariable(node, variable, coded);
             give(node, coded);
@@ -2127,10 +2159,10 @@ public final class DoorScan {
             if (from == Texts.NO_NUMBER || to == Texts.NO_NUMBER) {
                 retreat(node);
             } else {
-                long noted = nodes.whole(node, TWO);
+                long noted = vain.noteAhead(nodes.whole(node, TWO));
+                nodes.setWhole(node, TWO, noted);
                 nodes.setHalf(node, Y, (int) to);
-                nodes.setWhole(node, TWO, Operations.noteAhead(noted, events, from));
-                count(node, heap.isOnce(node) ? Operations.firstOf(noted, events, from) : from);
+                count(node, vain.firstOf(noted, placeNow(), from));
             }
         }
 
@@ -2381,7 +2413,6 @@ public final class DoorScan {
         private int low;
         private int high;
         private boolean isTraced;
-        private boolean isOnce;
         /** How many expressions are open, and how many rooms are used, with this entry on top. */
         private int open;
         private int rooms;
@@ -2467,6 +2498,7 @@ public final class DoorScan {
         private final Program program;
         private final Texts texts;
         private final Operations operations;
+        private final Vain vain;
         private final Rooms rooms;
         private final Entry[] stack = new Entry[HEIGHT];
         private final Entry none = new Entry();
@@ -2475,8 +2507,6 @@ public final class DoorScan {
         private int height;
         private int openNow;
         private int stepsLeft;
-        /** How many steps were made and how many values were handed on to the caller. */
-        private int events;
         private long mostMoves;
         private long subject;
         private int place;
@@ -2490,6 +2520,7 @@ public final class DoorScan {
             this.program = program;
             texts = new Texts(program);
             operations = new Operations(texts);
+            vain = new Vain();
             rooms = new Rooms();
             for (int i = 0; i < HEIGHT; i++) {
                 stack[i] = new Entry();
@@ -2504,7 +2535,6 @@ public final class DoorScan {
             height = 0;
             openNow = 0;
             stepsLeft = steps;
-            events = 0;
             mostMoves = moves;
             subject = Texts.EMPTY;
             place = 1;
@@ -2623,7 +2653,7 @@ public final class DoorScan {
                 return;
             }
             stepsLeft--;
-            events++;
+            vain.event();
             openNow++;
             at = height;
             move = START;
@@ -2724,7 +2754,6 @@ public final class DoorScan {
 
         /** Which numbers are of use to the receiver; those of 'S' go to the one that its procedure's call is in. */
         private void expect(Entry entry) {
-            entry.isOnce = true;
             if (entry.receiver == NONE) {
                 operations.expectAll();
             } else {
@@ -2732,7 +2761,6 @@ public final class DoorScan {
                 Entry giver = receiver.kind == 'S' ? entry(rooms.callOf(receiver.room)) : receiver;
                 operations.expectOf(receiver.expression, entry.part, receiver.one, giver.low, giver.high,
                         giver.isTraced);
-                entry.isOnce = giver.isOnce && Operations.isOnce(receiver.kind, entry.part);
             }
             entry.low = operations.low();
             entry.high = operations.high();
@@ -2785,6 +2813,7 @@ public final class DoorScan {
                     count(index, of, of.x + 1L);
                     break;
                 default:
+                    vain.endFound(of.two, place, of.x);
                     goOnSeeking(index, of);
                     break;
             }
@@ -2794,7 +2823,7 @@ public final class DoorScan {
         private void count(int index, Entry entry, long from) {
             long next = Operations.counted(from, entry.y, entry.low, entry.high, entry.isTraced);
             if (next > entry.y) {
-                entry.two = Operations.noteBehind(entry.two, events, entry.y);
+                vain.endRow(entry.two, place, entry.y);
                 leave(height - 1);
             } else {
                 entry.x = (int) next;
@@ -2803,7 +2832,8 @@ public final class DoorScan {
         }
 
         private void goOnSeeking(int index, Entry entry) {
-            entry.x = operations.seek(entry.kind, entry.one, subject, entry.x + 1);
+            entry.two = vain.noteAhead(entry.two);
+            entry.x = operations.seek(entry.kind, entry.one, subject, entry.x + 1, vain.found(entry.two, place));
             if (entry.x == 0) {
                 pop();
             } else {
@@ -2863,7 +2893,7 @@ public final class DoorScan {
 
         private void take(int index, int part, long coded) {
             if (index == NONE) {
-                events++;
+                vain.event();
                 outcome = 'v';
                 return;
             }
@@ -2959,6 +2989,7 @@ public final class DoorScan {
         private void limit(int index, int part, long coded) {
             Entry entry = entry(index);
             if (part == 2) {
+                vain.change();
                 entry.x--;
                 if (entry.x <= 0) {
                     // nothing more is asked of what the first values are taken of
@@ -2983,6 +3014,8 @@ public final class DoorScan {
             rooms.set(entry.room, amountOf(entry), coded);
             if (entry.kind == 'u') {
                 note(RESTORE_VARIABLE, index);
+            } else {
+                vain.change();
             }
             give(index, coded);
         }
@@ -3028,11 +3061,10 @@ public final class DoorScan {
                 return;
             }
             Entry entry = entry(index);
-            long noted = entry.two;
             entry.y = (int) to;
-            entry.two = Operations.noteAhead(noted, events, from);
+            entry.two = vain.noteAhead(entry.two);
             note(COUNT, index);
-            count(index, entry, entry.isOnce ? Operations.firstOf(noted, events, from) : from);
+            count(index, entry, vain.firstOf(entry.two, place, from));
         }
 
         // ---- loops

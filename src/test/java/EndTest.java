@@ -1,6 +1,7 @@
 /**
- * Every call ends: the numbers of a 't' in the b of a 't' are rows of rows, trillions of numbers in all, but those that
- * came to nothing come to nothing again as long as no expression is begun and no value is given.
+ * Every call ends: the numbers of a 't' in the b of a 't', and the places of a 'U' in the a of a 'U', are rows of rows,
+ * trillions of numbers in all, but those that came to nothing come to nothing again at the same place as long as no
+ * expression is begun and no value is given.
  */
 public final class EndTest {
     private static final long MOST_MILLIS = 120_000;
@@ -8,6 +9,8 @@ public final class EndTest {
     public static void main(String[] args) {
         endInTime();
         rowsOfRows();
+        rowsOfPlaces();
+        stoppedOnTheWay();
         sameNumbersAgain();
         countedNumbers();
         whatIsLeftBehind();
@@ -45,6 +48,38 @@ public final class EndTest {
         Kit.values("f", "(= 7 (* 3 (t 1 (l " + rows + " 1000000))))");
         Kit.values("f", "(= 7 (* 3 (e 1 (b " + rows + "))))");
         Kit.values("0 f", "(! (M " + rows + "))");
+        Kit.values("f", "(; (: 0 1) (M " + rows + "))");
+        Kit.values("f", "(s '" + "1".repeat(60) + "' (; (T 61) (M " + rows + ")))");
+    }
+
+    /** Each place of a 'U' or 'F', and each that a 't' has led to, is the beginning of another row. */
+    private static void rowsOfPlaces() {
+        String digits = "'123456789012345678901234567890123456789012345678901234567890'";
+        String ones = "'" + "1".repeat(60) + "'";
+        Kit.values("f", "(s " + digits + " (= 7 (* 3 " + around("(U _)", 30, "(F '')") + ")))");
+        Kit.values("f", "(s " + digits + " (= 7 (* 3 " + around("(F (U _))", 15, "(F '')") + ")))");
+        Kit.values("f", "(s " + digits + " (= 7 (* 3 " + around("(U (T _))", 10, "(U (t 1 60))") + ")))");
+        Kit.values("f", "(s " + ones + " (= 7 (* 3 (P " + around("(t 1 (T _))", 12, "(t 1 60)") + "))))");
+        Kit.values("f", "(s " + ones + " (= 7 (* 3 (P " + around("(t 1 (m _))", 12, "(t 1 60)") + "))))");
+        Kit.values("f", "(call 0 1)", "0=(s " + digits + " (= 7 (* 3 " + around("(U _)", 30, "(F '')") + ")))");
+        Kit.values("f", "(@ (c (s " + digits + " (= 7 (* 3 " + around("(U _)", 30, "(F '')") + ")))))");
+        Kit.values("9 9 9 9", "(s " + digits + " (= 9 (* 3 " + around("(U _)", 30, "(F '')") + ")))");
+    }
+
+    private static String around(String outer, int times, String inner) {
+        String row = inner;
+        for (int i = 0; i < times; i++) {
+            row = outer.replace("_", row);
+        }
+        return row;
+    }
+
+    /** What does not come to an assignment, or to what the first values are taken of, leaves nothing behind. */
+    private static void stoppedOnTheWay() {
+        String rows = "(t 1 (t 1 1000000))";
+        Kit.values("!x", "(; (e (: 0 (= 7 (* 3 " + rows + ")))) v0)");
+        Kit.values("f", "(l (= 7 (* 3 " + rows + ")) 5)");
+        Kit.values("f", "(l (A (t 1 (t 1 (t 1 1000)))) 5)");
     }
 
     /** A number that was given to somebody, or with which something was begun, comes again. */

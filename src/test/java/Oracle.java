@@ -11,6 +11,9 @@ import java.util.function.IntConsumer;
 final class Oracle {
     /** What a thread needs that asks it: each open expression takes some calls. */
     static final long STACK = 1L << 28;
+    /** More numbers of 't's than this are not gone through one by one: what is found ahead of them is told. */
+    private static final int MOST_NUMBERS = 100_000;
+    private static final char GIVEN_UP = '?';
 
     interface Next {
         void value(Object value);
@@ -146,6 +149,7 @@ final class Oracle {
     private int steps;
     private int stepsBefore;
     private int open;
+    private int numbers;
     private char error;
     private List<Integer> chain;
 
@@ -175,6 +179,11 @@ final class Oracle {
         return rows(expression, most, count -> { });
     }
 
+    /** Whether the last values were not found to the end. */
+    boolean isGivenUp() {
+        return error == GIVEN_UP;
+    }
+
     private List<String> rows(int expression, int most, IntConsumer after) {
         List<String> rows = new ArrayList<>();
         find(expression, most, rows, after);
@@ -189,6 +198,7 @@ final class Oracle {
         steps = 0;
         stepsBefore = 0;
         open = 0;
+        numbers = 0;
         error = 0;
         chain = List.of();
         Life run = new Life(expression, new Object[8], "", 1);
@@ -211,7 +221,7 @@ final class Oracle {
                 throw leave;
             }
         } catch (Error e) {
-            if (!isHanded) {
+            if (!isHanded && !isGivenUp()) {
                 rows.add(row("e " + error + " " + chain, frame));
             }
         }
@@ -459,6 +469,10 @@ final class Oracle {
             }
             case 't' -> {
                 for (long i = left; i <= right; i++) {
+                    numbers++;
+                    if (numbers > MOST_NUMBERS) {
+                        throw stop(GIVEN_UP, number, frame);
+                    }
                     next.value((int) i);
                 }
             }

@@ -9,6 +9,9 @@ public final class OracleTest {
     /** Kinds that have to do with the numbers that a 't' passes over. */
     private static final String COUNTING_WITH_A = "rSSTmP";
     private static final String COUNTING_WITH_AB = "tttt+-<=~|&;l";
+    /** Kinds whose numbers are given again, that move the place, and that look at it. */
+    private static final String CHAINED_WITH_A = "TmTmUFUFPAMH";
+    private static final String CHAINED_WITH_B = "tttttt+-*<=~&";
 
     private static int checked;
 
@@ -16,6 +19,7 @@ public final class OracleTest {
     private final DoorScan x = new DoorScan();
     private final Oracle oracle = new Oracle();
     private final boolean hasLives;
+    private final boolean hasChains;
     private final boolean wide;
     private final boolean[] isLeftOut = new boolean[16];
     private final String withA;
@@ -23,9 +27,10 @@ public final class OracleTest {
     private final String name;
     private int count;
 
-    private OracleTest(long seed, boolean hasLives, boolean isCounting) {
+    private OracleTest(long seed, boolean hasLives, boolean isCounting, boolean hasChains) {
         random = new Random(seed);
         this.hasLives = hasLives;
+        this.hasChains = hasChains;
         wide = below(3) == 0 && !isCounting;
         // each program has kinds of its own, so that rare ones come together
         for (int i = 0; i < isLeftOut.length; i++) {
@@ -48,7 +53,7 @@ public final class OracleTest {
 
     private static void checkAll(int programs, long seed) {
         for (int i = 0; i < programs; i++) {
-            new OracleTest(seed + i, i % 4 == 0, i % 4 == 1).check();
+            new OracleTest(seed + i, i % 4 == 0, i % 4 == 1, i % 4 == 2 || i % 16 == 0).check();
             checked++;
         }
     }
@@ -56,7 +61,10 @@ public final class OracleTest {
     private void check() {
         makeProgram();
         for (int i = 0; i < 6; i++) {
-            int expression = count - 1 - below(Math.min(count, 20));
+            if (hasChains) {
+                chain();
+            }
+            int expression = count - 1 - below(hasChains ? 1 : Math.min(count, 20));
             if (count < 76 && below(4) > 0) {
                 expression = behindAssignments(expression);
             }
@@ -101,7 +109,7 @@ public final class OracleTest {
                 number();
             }
         }
-        int most = 20 + below(40);
+        int most = hasChains ? 0 : 20 + below(40);
         for (int i = 0; i < most; i++) {
             // what is doubled comes to many that are open
             if (i < 6 && wide) {
@@ -127,8 +135,8 @@ public final class OracleTest {
 
     private void text() {
         StringBuilder text = new StringBuilder();
-        for (int i = below(4); i > 0; i--) {
-            text.append(one("ab12-"));
+        for (int i = below(4) + (hasChains ? 1 : 0); i > 0; i--) {
+            text.append(one(hasChains ? "123" : "ab12-"));
             x.type(text.charAt(text.length() - 1));
         }
         added(x.text(), oracle.add('"', 0, 0, text.toString()));
@@ -212,6 +220,54 @@ public final class OracleTest {
         }
     }
 
+    /** Each kind around the one ahead of it, so that much is gone back into without a step. */
+    private void chain() {
+        switch (below(3)) {
+            case 0 -> make('t', below(7), below(7), -1);
+            case 1 -> make('|', below(7), below(7), -1);
+            default -> make('F', below(7), -1, -1);
+        }
+        for (int i = 1 + below(6); i > 0 && count < 70; i--) {
+            addAround(count - 1);
+        }
+        if (count < 72) {
+            make('s', below(3), count - 1, -1);
+        }
+    }
+
+    private void addAround(int inner) {
+        switch (below(hasLives ? 17 : 16)) {
+            case 0 -> assign(one("::u"), below(2), inner);
+            case 1 -> make(one("l|&;"), inner, below(7), -1);
+            case 2 -> make(one("r!"), inner, -1, -1);
+            case 3 -> {
+                int procedure = below(4);
+                int body = inner;
+                if (below(2) == 0) {
+                    make('S', inner, -1, -1);
+                    body = count - 1;
+                }
+                if (below(2) == 0) {
+                    make(one("s&|"), below(3), body, -1);
+                    body = count - 1;
+                }
+                define(procedure, body);
+                int first = below(7);
+                added(x.call(procedure, first, -1), oracle.add('(', procedure, 0, null, first, -1, -1));
+            }
+            case 4, 5, 6, 7, 8, 9 -> make(one(CHAINED_WITH_A), inner, -1, -1);
+            case 16 -> {
+                make('c', inner, -1, -1);
+                int life = assign(':', 2, count - 1);
+                added(x.variable(2), oracle.add('v', 2, 0, null));
+                make('@', count - 1, -1, -1);
+                make('r', count - 1, -1, -1);
+                make(';', life, count - 1, -1);
+            }
+            default -> make(one(CHAINED_WITH_B), below(7), inner, -1);
+        }
+    }
+
     // ---- what both answer
 
     private void checkRun(int expression) {
@@ -229,7 +285,7 @@ public final class OracleTest {
         x.begin(expression);
         long before = x.steps();
         char answer = 'v';
-        while (got.size() < most && answer == 'v') {
+        while (got.size() < (oracle.isGivenUp() ? due.size() : most) && answer == 'v') {
             answer = x.next();
             got.add(row(answer, before));
             if (answer == 'v' && got.size() == changed) {
@@ -245,7 +301,8 @@ public final class OracleTest {
         int chosen = below(30);
         if (chosen == 0) {
             x.isSound();
-        } else if (chosen == 1) {
+        } else if (chosen == 1 && !hasChains) {
+            // the numbers of other chains may be too many
             x.countHanded(below(count), 3);
         } else if (chosen == 2) {
             Kit.throwing(name + ": no such expression", "IndexOutOfBounds", () -> x.begin(count));
@@ -274,7 +331,10 @@ public final class OracleTest {
 
     private void checkHanded(int expression) {
         List<String> due = oracle.handed(expression, 20);
-        Kit.due(name + ": countHanded of " + expression, x.countHanded(expression, 20), due.size());
+        int most = oracle.isGivenUp() ? due.size() : 20;
+        if (most > 0) {
+            Kit.due(name + ": countHanded of " + expression, x.countHanded(expression, most), due.size());
+        }
         for (int i = 0; i < due.size(); i++) {
             int index = i;
             Object value = due.get(i).startsWith("'") ? due.get(i).substring(1, due.get(i).length() - 1)

@@ -18,8 +18,9 @@ public final class RoomTest {
     private static final String[] LEAVES = {"(u 0 1)", "(| 1 1)", "(y 0 1)", "(u 0 (c 1))", "(u 0 (^ (u 1 (c 1))))",
         "(s 5 1)", "(s 1 (s 2 (s 3 (s 4 (s 5 (s 6 7))))))", "(. (. 'a' 'b') (. 'c' 'd'))", "([ (. 1 2) (. '' 1) 3)",
         "(call 5 1)", "(call 5 (call 5 (call 5 (call 5 (call 5 (call 5 1))))))", "(u 0 (@ (u 1 (c (u 2 1)))))",
-        "(& (u 0 (c (| 1 2))) (@ v0))", "(call 4 (. 1 2) (. 3 4))", "(T 1)"};
-    private static final int[] STEPS = {2, 2, 1, 2, 4, 3, 13, 7, 8, 4, 19, 6, 7, 11, 2};
+        "(& (u 0 (c (| 1 2))) (@ v0))", "(call 4 (. 1 2) (. 3 4))", "(T 1)", "(t 1 1)", "(s 1 (U 1))",
+        "(s 12 (t 1 (m 1)))"};
+    private static final int[] STEPS = {2, 2, 1, 2, 4, 3, 13, 7, 8, 4, 19, 6, 7, 11, 2, 3, 4, 6};
 
     private static long objects;
     private static long elements;
