@@ -61,7 +61,7 @@ public final class OracleTest {
     private void check() {
         makeProgram();
         for (int i = 0; i < 6; i++) {
-            if (hasChains) {
+            if (hasChains && count < 70) {
                 chain();
             }
             int expression = count - 1 - below(hasChains ? 1 : Math.min(count, 20));
