@@ -1,3 +1,4 @@
+import java.util.Arrays;
 import java.util.NoSuchElementException;
 
 /** A language in which each expression succeeds with values one after the other, or fails. */
@@ -1245,21 +1246,32 @@ public final class DoorScan {
      * The numbers that a 't', 'U' or 'F' has given in vain: behind them nothing was begun, no value came of them, and
      * nothing was changed that stays. Until the next event, which is a step or a value, they would come to the same
      * again if the place is the same, as nothing else that is looked at changes between two events.
+     *
+     * Those that have notes since the latest event and may be given more are parts of one another, as without a step
+     * no second part is begun; so no two of them are the same expression within as many procedures. Each such slot has
+     * one row, which the next one there takes over.
      */
     private static final class Vain {
-        /** The columns of a row: how many changes there were, and for each place what was given there. */
-        private static final int CHANGES = 1;
-        private static final int PLACES = 1;
-        private static final int WIDTH = PLACES + MOST_LETTERS + 2;
+        /** The columns of a row: since which event it is whose, and for each place what was given there. */
+        private static final int WHOSE = 0;
+        private static final int WIDTH = 1 + MOST_LETTERS + 1;
+        /** The sign makes a moment a value of no sort. */
+        private static final long MOMENT = 1L << 63;
+        private static final int HALF = 32;
 
-        private final Rows rows = new Rows(WIDTH);
-        private int events;
+        /** For so many procedures the rows of all expressions, made as the first one is noted. */
+        private final long[][] rows = new long[MOST_WITHIN + 1][];
+        private long events;
         private long changes;
+
+        static int slotOf(int depth, int expression) {
+            return depth * MOST_EXPRESSIONS + expression;
+        }
 
         /** A step was made, or the run or a life has given a value: all is forgotten. */
         void event() {
             events++;
-            rows.clear();
+            changes++;
         }
 
         /** A ':' has set its variable, or an 'l' has counted a value. */
@@ -1267,42 +1279,62 @@ public final class DoorScan {
             changes++;
         }
 
-        /** What is noted as numbers are to be given, behind an older note: how many events there were, and a row. */
-        long noteAhead(long noted) {
-            // the upper half is that of no value
-            long now = isLatest(noted) ? noted : (long) (events | LEAST_NUMBER) << 32 | rows.take();
-            rows.setWhole((int) now, CHANGES, changes);
-            return now;
+        /** The moment, to be told again to isInVain behind what is given now. */
+        long now() {
+            return MOMENT | changes;
         }
 
-        private boolean isLatest(long noted) {
-            return (int) (noted >>> 32) == (events | LEAST_NUMBER);
+        boolean isInVain(long givenAt) {
+            return givenAt == (MOMENT | changes);
         }
 
         /** The first number of a 't' from this one on that it has not given in vain at this place. */
-        long firstOf(long noted, int place, long from) {
-            long highest = rows.whole((int) noted, PLACES + place);
+        long firstOf(int slot, int giver, int place, long from) {
+            long highest = noted(slot, giver, place);
             return highest == 0 ? from : Math.max(from, (int) highest + 1L);
         }
 
-        /** A 't' has given its numbers up to this one; another time they all begin with the same one. */
-        void endRow(long noted, int place, int last) {
-            long highest = rows.whole((int) noted, PLACES + place);
-            boolean isInVain = isLatest(noted) && rows.whole((int) noted, CHANGES) == changes;
-            if (isInVain && (highest == 0 || (int) highest < last)) {
-                rows.setWhole((int) noted, PLACES + place, coded(IS_NUMBER, last));
+        /** A 't' has given its numbers up to this one in vain; another time they all begin with the same one. */
+        void endRow(int slot, int giver, int place, int last) {
+            long highest = noted(slot, giver, place);
+            if (highest == 0 || (int) highest < last) {
+                note(slot, giver, place, coded(IS_NUMBER, last));
             }
         }
 
         /** The places that a 'U' or 'F' has given in vain at this place, as bits. */
-        long found(long noted, int place) {
-            return rows.whole((int) noted, PLACES + place);
+        long found(int slot, int giver, int place) {
+            return noted(slot, giver, place);
         }
 
-        void endFound(long noted, int place, int last) {
-            if (isLatest(noted) && rows.whole((int) noted, CHANGES) == changes) {
-                rows.setWhole((int) noted, PLACES + place, found(noted, place) | 1L << last);
+        void endFound(int slot, int giver, int place, int last) {
+            note(slot, giver, place, noted(slot, giver, place) | 1L << last);
+        }
+
+        private long noted(int slot, int giver, int place) {
+            long[] block = slot >= 0 && slot / MOST_EXPRESSIONS < rows.length ? rows[slot / MOST_EXPRESSIONS] : null;
+            int first = slot % MOST_EXPRESSIONS * WIDTH;
+            if (block == null || place < 1 || place >= WIDTH || block[first + WHOSE] != (events << HALF | giver)) {
+                return 0;
             }
+            return block[first + place];
+        }
+
+        private void note(int slot, int giver, int place, long what) {
+            if (slot < 0 || slot / MOST_EXPRESSIONS >= rows.length || place < 1 || place >= WIDTH) {
+                return;
+            }
+            long[] block = rows[slot / MOST_EXPRESSIONS];
+            if (block == null) {
+                block = new long[MOST_EXPRESSIONS * WIDTH];
+                rows[slot / MOST_EXPRESSIONS] = block;
+            }
+            int first = slot % MOST_EXPRESSIONS * WIDTH;
+            if (block[first + WHOSE] != (events << HALF | giver)) {
+                Arrays.fill(block, first, first + WIDTH, 0);
+                block[first + WHOSE] = events << HALF | giver;
+            }
+            block[first + place] = what;
         }
     }
 
@@ -1365,6 +1397,12 @@ public final class DoorScan {
 
         boolean isTraced(int node) {
             return (nodes.half(node, WHAT) & TRACED) != 0;
+        }
+
+        /** Where it is noted what the node has given in vain. */
+        int slotOf(int node) {
+            int expression = nodes.half(node, WHAT) & (1 << EXPRESSION_BITS) - 1;
+            return Vain.slotOf(frames.half(nodes.half(node, FRAME), DEPTH), expression);
         }
 
         void expect(int node, int low, int high, boolean traced) {
@@ -1934,7 +1972,9 @@ public final class DoorScan {
                     count(node, nodes.half(node, X) + 1L);
                     break;
                 case 'U': case 'F':
-                    vain.endFound(nodes.whole(node, TWO), placeNow(), nodes.half(node, X));
+                    if (vain.isInVain(nodes.whole(node, TWO))) {
+                        vain.endFound(heap.slotOf(node), node, placeNow(), nodes.half(node, X));
+                    }
                     goOnSeeking(node);
                     break;
                 case 's':
@@ -1955,7 +1995,9 @@ public final class DoorScan {
             long next = Operations.counted(from, last, nodes.half(node, LOW), nodes.half(node, HIGH),
                     heap.isTraced(node));
             if (next > last) {
-                vain.endRow(nodes.whole(node, TWO), placeNow(), last);
+                if (vain.isInVain(nodes.whole(node, TWO))) {
+                    vain.endRow(heap.slotOf(node), node, placeNow(), last);
+                }
                 retreat(node);
             } else {
                 nodes.setHalf(node, X, (int) next);
@@ -1964,13 +2006,12 @@ public final class DoorScan {
         }
 
         private void goOnSeeking(int node) {
-            long noted = vain.noteAhead(nodes.whole(node, TWO));
-            nodes.setWhole(node, TWO, noted);
             int place = operations.seek(heap.kindOf(node), nodes.whole(node, ONE), subjectNow(),
-                    nodes.half(node, X) + 1, vain.found(noted, placeNow()));
+                    nodes.half(node, X) + 1, vain.found(heap.slotOf(node), node, placeNow()));
             if (place == 0) {
                 retreat(node);
             } else {
+                nodes.setWhole(node, TWO, vain.now());
                 nodes.setHalf(node, X, place);
                 giveNumber(node, place);
             }
@@ -2159,10 +2200,9 @@ public final class DoorScan {
             if (from == Texts.NO_NUMBER || to == Texts.NO_NUMBER) {
                 retreat(node);
             } else {
-                long noted = vain.noteAhead(nodes.whole(node, TWO));
-                nodes.setWhole(node, TWO, noted);
+                nodes.setWhole(node, TWO, vain.now());
                 nodes.setHalf(node, Y, (int) to);
-                count(node, vain.firstOf(noted, placeNow(), from));
+                count(node, vain.firstOf(heap.slotOf(node), node, placeNow(), from));
             }
         }
 
@@ -2705,6 +2745,11 @@ public final class DoorScan {
             return program.amountOf(entry.expression);
         }
 
+        /** Where it is noted what the entry has given in vain. */
+        private int slotOf(Entry entry) {
+            return Vain.slotOf(rooms.depthOf(entry.room), entry.expression);
+        }
+
         // ---- an expression is begun
 
         private void start(int index, Entry entry) {
@@ -2813,7 +2858,9 @@ public final class DoorScan {
                     count(index, of, of.x + 1L);
                     break;
                 default:
-                    vain.endFound(of.two, place, of.x);
+                    if (vain.isInVain(of.two)) {
+                        vain.endFound(slotOf(of), index, place, of.x);
+                    }
                     goOnSeeking(index, of);
                     break;
             }
@@ -2823,7 +2870,9 @@ public final class DoorScan {
         private void count(int index, Entry entry, long from) {
             long next = Operations.counted(from, entry.y, entry.low, entry.high, entry.isTraced);
             if (next > entry.y) {
-                vain.endRow(entry.two, place, entry.y);
+                if (vain.isInVain(entry.two)) {
+                    vain.endRow(slotOf(entry), index, place, entry.y);
+                }
                 leave(height - 1);
             } else {
                 entry.x = (int) next;
@@ -2832,8 +2881,9 @@ public final class DoorScan {
         }
 
         private void goOnSeeking(int index, Entry entry) {
-            entry.two = vain.noteAhead(entry.two);
-            entry.x = operations.seek(entry.kind, entry.one, subject, entry.x + 1, vain.found(entry.two, place));
+            entry.two = vain.now();
+            entry.x = operations.seek(entry.kind, entry.one, subject, entry.x + 1,
+                    vain.found(slotOf(entry), index, place));
             if (entry.x == 0) {
                 pop();
             } else {
@@ -3062,9 +3112,9 @@ public final class DoorScan {
             }
             Entry entry = entry(index);
             entry.y = (int) to;
-            entry.two = vain.noteAhead(entry.two);
+            entry.two = vain.now();
             note(COUNT, index);
-            count(index, entry, vain.firstOf(entry.two, place, from));
+            count(index, entry, vain.firstOf(slotOf(entry), index, place, from));
         }
 
         // ---- loops

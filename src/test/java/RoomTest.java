@@ -21,6 +21,12 @@ public final class RoomTest {
         "(& (u 0 (c (| 1 2))) (@ v0))", "(call 4 (. 1 2) (. 3 4))", "(T 1)", "(t 1 1)", "(s 1 (U 1))",
         "(s 12 (t 1 (m 1)))"};
     private static final int[] STEPS = {2, 2, 1, 2, 4, 3, 13, 7, 8, 4, 19, 6, 7, 11, 2, 3, 4, 6};
+    /** Leaves that are gone back into without a step, and the steps of one; some of their numbers come to nothing. */
+    private static final String[] GONE_BACK = {around("(F _)", 39, "1"), around("(U _)", 39, "1"),
+        around("(t 1 _)", 15, "1"), around("(F (t 1 _))", 12, "1"), "(= 1 (F ''))", "(= 1 (* 1 (F (F (F (F ''))))))",
+        "(= 1 (* 1 (t 1 (- 2 (t 1 3)))))", "(call 5 (= 1 (F '')))", "(s '1111' (= 2 (U (T (F '')))))",
+        "(l (= 1 (F '')) 2)", "(= 1 (e 1 (b (F ''))))"};
+    private static final int[] GONE_BACK_STEPS = {40, 40, 31, 37, 4, 9, 11, 7, 8, 6, 7};
 
     private static long objects;
     private static long elements;
@@ -32,6 +38,10 @@ public final class RoomTest {
         for (int i = 0; i < LEAVES.length; i++) {
             everythingStays(LEAVES[i], STEPS[i]);
         }
+        for (int i = 0; i < GONE_BACK.length; i++) {
+            allGoneBackInto(GONE_BACK[i], GONE_BACK_STEPS[i]);
+        }
+        withinProcedures();
         nothingStays("(e (r (& (: 0 (c (s 3 4))) (. 1 2))))");
         nothingStays("(e (r (call 4 1 (call 3 2))))");
         nothingStays("(e (r (@ (c (s (. 1 2) (: 0 (T 2)))))))");
@@ -39,38 +49,90 @@ public final class RoomTest {
         Kit.end();
     }
 
+    private static String around(String outer, int times, String inner) {
+        String row = inner;
+        for (int i = 0; i < times; i++) {
+            row = outer.replace("_", row);
+        }
+        return row;
+    }
+
     /** Each asking makes some thousand steps and gives a value, and all that was begun stays open. */
     private static void everythingStays(String leaf, int steps) throws IllegalAccessException {
-        DoorScan x = Kit.language("5=(S 1)", "4=(S (. v0 v1))");
+        DoorScan x = begun(leaf, steps);
+        long before = bytes();
+        askAll(x, leaf);
+        roomOf(x, "with all of " + leaf + " open", bytes() - before);
+    }
+
+    /** Behind that, the last asking goes back through all of it, without a step. */
+    private static void allGoneBackInto(String leaf, int steps) throws IllegalAccessException {
+        DoorScan x = begun(leaf, steps);
+        long before = bytes();
+        askAll(x, leaf);
+        Kit.due("no more with " + leaf, x.next(), 'f');
+        roomOf(x, "with all of " + leaf + " gone back into", bytes() - before);
+    }
+
+    private static DoorScan begun(String leaf, int steps) {
+        DoorScan x = Kit.language("5=(S v0)", "4=(S (. v0 v1))");
         int more = forest(x, Kit.put(x, leaf), steps, 980);
-        int row = x.make(';', Kit.put(x, "(S 1)"), more, -1);
-        for (int i = 0; i < 9; i++) {
-            row = x.make('&', row, row, -1);
+        int one = x.make(';', Kit.put(x, "(S 1)"), more, -1);
+        int row = Kit.put(x, "(! 1)");
+        for (int i = 1; i <= ASKINGS; i *= 2) {
+            row = (ASKINGS & i) == 0 ? row : x.make('&', one, row, -1);
+            one = 2 * i > ASKINGS ? one : x.make('&', one, one, -1);
         }
         x.define(0, row);
-        x.begin(Kit.put(x, "(call 0 1 2)"));
-        long before = bytes();
+        x.begin(Kit.put(x, "(s '1' (call 0 1 2))"));
+        return x;
+    }
+
+    private static void askAll(DoorScan x, String leaf) {
         int values = 0;
         for (int i = 0; i < ASKINGS; i++) {
             values += x.next() == 'v' ? 1 : 0;
         }
-        long made = bytes() - before;
         Kit.due("values with " + leaf, values, ASKINGS);
-        Kit.due("some thousand steps each with " + leaf, x.steps() > 960L * ASKINGS, true);
-        inRoom(x, "with all of " + leaf + " open");
-        Kit.due("what was given up, too, with " + leaf + ": " + made, made < 8 * ELEMENTS, true);
+        Kit.due("some thousand steps each with " + leaf, x.steps() > 930L * ASKINGS, true);
+    }
+
+    private static void roomOf(DoorScan x, String what, long made) throws IllegalAccessException {
+        inRoom(x, what);
+        Kit.due("what was given up, too, " + what + ": " + made, made < 8 * ELEMENTS, true);
+    }
+
+    /** What is noted of the expressions within all procedures takes its room once for all askings and runs. */
+    private static void withinProcedures() throws IllegalAccessException {
+        String digits = "'" + "1234567890".repeat(6) + "'";
+        String rows = around("(U _)", 20, "(i (< v0 #4) (call 0 (+ v0 1)) (F ''))");
+        for (int within = 1; within <= 30; within++) {
+            DoorScan x = Kit.language("5=(& (& v1 v2) (& v3 " + within + "))", "0=(S " + rows + ")");
+            int row = Kit.put(x, "(s " + digits + " (= 77 (* 1 (call 0 1))))");
+            long before = bytes();
+            for (int i = 0; i < 10; i++) {
+                x.begin(row);
+                Kit.due("no value within " + within + " procedures", x.next(), 'f');
+                Kit.due("none by the second way", x.countHanded(row, 20), 0);
+            }
+            long made = bytes() - before;
+            inRoom(x, "within " + within + " procedures");
+            Kit.due("what is made once within " + within + " procedures: " + made, made < 4_000_000, true);
+        }
     }
 
     /** Makes an expression of nearly so many steps, each a part of the whole that stays open. */
     private static int forest(DoorScan x, int leaf, int steps, int most) {
         int[] trees = new int[10];
         trees[0] = leaf;
-        for (int i = 1; i < trees.length; i++) {
-            trees[i] = x.make('&', trees[i - 1], trees[i - 1], -1);
+        int last = 0;
+        while (last + 1 < trees.length && (steps + 1 << last + 1) - 1 <= most) {
+            trees[last + 1] = x.make('&', trees[last], trees[last], -1);
+            last++;
         }
         int row = leaf;
         int all = steps;
-        for (int i = trees.length - 1; i >= 0; i--) {
+        for (int i = last; i >= 0; i--) {
             int more = (steps + 1 << i) - 1;
             while (all + more + 1 <= most) {
                 row = x.make('&', row, trees[i], -1);
