@@ -16,6 +16,8 @@ public final class EndTest {
         whatIsLeftBehind();
         changedBetween();
         lives();
+        openTwice();
+        withinProcedures();
         Kit.end();
     }
 
@@ -131,5 +133,20 @@ public final class EndTest {
         Kit.values("5 5 f", "(; (: 0 (c (= 5 (* 1 (t 1 (t 1 6)))))) (r (@ v0)))");
         Kit.values("2 2 f", "(; (: 0 (c (t 1 (t 1 3)))) (= 2 (r (@ v0))))");
         Kit.values("f", "(@ (c (M (t 1 (t 1 1000000)))))");
+    }
+
+    /** An expression may be open several times, one behind the other, or within procedures that call themselves. */
+    private static void openTwice() {
+        String rows = "(= 100 (* 1 " + around("(t 1 _)", 15, "(- 161 (t 61 160))") + "))";
+        Kit.values("100 f", "(& " + rows + " #38)");
+        Kit.values("100 f", "(& (call 0 1) (call 0 1))", "0=(S " + rows + ")");
+        Kit.values("100 f", "(& #38 (call 0 1))", "0=(S " + rows + ")");
+    }
+
+    private static void withinProcedures() {
+        Kit.values("f", "(= 7 (* 3 (call 0 1)))", "0=(S (t 1 (i (< v0 15) (call 0 (+ v0 1)) (t 1 60))))");
+        Kit.values("6 f", "(= 6 (* 3 (call 0 1)))", "0=(S (t 1 (i (< v0 2) (call 0 (+ v0 1)) (t 1 2))))");
+        Kit.values("f", "(s '12345' (= 7 (* 3 (call 0 1))))",
+                "0=(S (U (* 1 (i (< v0 15) (call 0 (+ v0 1)) (F '')))))");
     }
 }

@@ -11,6 +11,7 @@ public final class PlaceTest {
         inProcedures();
         inLives();
         leftBehind();
+        begunTwice();
         Kit.end();
     }
 
@@ -62,6 +63,16 @@ public final class PlaceTest {
         Kit.values("3 f", "(; (: 0 (c (s '95' (P (t 3 (m (t 1 2))))))) (r (@ v0)))");
         Kit.values("3 f", "(s '95' (; (: 0 (c (P (t 3 (m (t 1 2)))))) (r (@ v0))))");
         Kit.values("3 3 f", "(; (: 0 (c (s '95' (t 3 (m (t 1 2)))))) (= 3 (r (@ v0))))");
+    }
+
+    /** What the later one of an expression that is open twice gives in vain may come to something for the earlier one. */
+    private static void begunTwice() {
+        Kit.values("2 2 2 2 2 2 f", "(& (s '2' (H (t 2 (- 5 (t 1 3))))) (s '3' (H #7)))");
+        Kit.values("2 2 2 2 2 2 f", "(s '1231' (& (= 1 (F (t 1 (- 4 (t 1 3))))) (= 2 #9)))");
+        Kit.values("2 2 2 2 2 2 f", "(s '1231' (& (= 1 (U (t 1 (- 4 (t 1 3))))) (= 2 #9)))");
+        Kit.values("2 2 2 2 2 2 f", "(& (call 0 '2') (call 0 '3'))", "0=(S (s v0 (H (t 2 (- 5 (t 1 3))))))");
+        Kit.values("2 2 2 2 2 2 f", "(& (s '2' (H (call 0 1))) (call 1 1))", "0=(S (t 2 (- 5 (t 1 3))))",
+                "1=(S (s '3' (H (call 0 1))))");
     }
 
     /** What an assignment has got, or what first values are taken of has counted. */
