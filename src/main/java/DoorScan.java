@@ -56,23 +56,29 @@ public final class DoorScan {
     private static final int TWO = 6;
     private static final int NODE_WIDTH = 7;
 
+    /**
+     * The rows of frames and lives, all of it in halves. The values of variables stand there as their lower halves, and
+     * with their sorts, two bits each, in one half; above these, it has the depth of a frame or the body of a life.
+     */
+    private static final int SORTS = 1;
+    private static final int SORT_BITS = 2;
+    private static final int BESIDE_AT = SORT_BITS * VARIABLES;
+
     /** The row of a frame, which are the variables of a procedure that was called, or of a run or a life itself. */
-    private static final int CALLING = 1;
-    private static final int CALLER = 2;
-    private static final int DEPTH = 3;
-    private static final int FIRST_VARIABLE = 2;
-    private static final int FRAME_WIDTH = FIRST_VARIABLE + VARIABLES;
+    private static final int CALLING = 2;
+    private static final int CALLER = 3;
+    private static final int FIRST_VARIABLE = 4;
+    private static final int FRAME_WIDTH = (FIRST_VARIABLE + VARIABLES) / 2;
 
     /** The row of a life, or of the run: what it is made of, and where it is once it was asked. */
-    private static final int BODY = 1;
     private static final int COPIED_PLACE = 2;
     private static final int PLACE = 3;
     private static final int OWN_FRAME = 4;
     private static final int ROOT = 5;
-    private static final int COPIED_SUBJECT = 3;
-    private static final int SUBJECT = 4;
-    private static final int FIRST_COPIED = 5;
-    private static final int LIFE_WIDTH = FIRST_COPIED + VARIABLES;
+    private static final int COPIED_SUBJECT = 6;
+    private static final int SUBJECT = 7;
+    private static final int FIRST_COPIED = 8;
+    private static final int LIFE_WIDTH = (FIRST_COPIED + VARIABLES) / 2;
 
     private final Program program;
     private final Machine run;
@@ -1402,7 +1408,7 @@ public final class DoorScan {
         /** Where it is noted what the node has given in vain. */
         int slotOf(int node) {
             int expression = nodes.half(node, WHAT) & (1 << EXPRESSION_BITS) - 1;
-            return Vain.slotOf(frames.half(nodes.half(node, FRAME), DEPTH), expression);
+            return Vain.slotOf(frames.half(nodes.half(node, FRAME), SORTS) >>> BESIDE_AT, expression);
         }
 
         void expect(int node, int low, int high, boolean traced) {
@@ -1422,19 +1428,61 @@ public final class DoorScan {
             int frame = frames.take();
             frames.setHalf(frame, CALLING, call);
             frames.setHalf(frame, CALLER, caller);
-            frames.setHalf(frame, DEPTH, caller == 0 ? 0 : frames.half(caller, DEPTH) + 1);
+            frames.setHalf(frame, SORTS, caller == 0 ? 0 : depthOf(caller) + 1 << BESIDE_AT);
             return frame;
+        }
+
+        /** Within how many procedures the frame is. */
+        int depthOf(int frame) {
+            return frames.half(frame, SORTS) >>> BESIDE_AT;
+        }
+
+        long variableOf(int frame, int variable) {
+            return valueIn(frames, frame, FIRST_VARIABLE, variable);
+        }
+
+        void setVariable(int frame, int variable, long coded) {
+            setValueIn(frames, frame, FIRST_VARIABLE, variable, coded);
         }
 
         /** Takes a life, for which the variables are still to be copied. */
         int takeLife(int expression, long subject, int place) {
             int life = lives.take();
-            lives.setHalf(life, BODY, expression);
-            lives.setWhole(life, COPIED_SUBJECT, subject);
+            lives.setHalf(life, SORTS, expression << BESIDE_AT);
+            lives.setHalf(life, COPIED_SUBJECT, (int) subject);
             lives.setHalf(life, COPIED_PLACE, place);
-            lives.setWhole(life, SUBJECT, subject);
+            lives.setHalf(life, SUBJECT, (int) subject);
             lives.setHalf(life, PLACE, place);
             return life;
+        }
+
+        int bodyOf(int life) {
+            return lives.half(life, SORTS) >>> BESIDE_AT;
+        }
+
+        /** The subject of the life, or the one that it was made with. */
+        long subjectOf(int life, int which) {
+            return coded(IS_TEXT, lives.half(life, which));
+        }
+
+        long copiedOf(int life, int variable) {
+            return valueIn(lives, life, FIRST_COPIED, variable);
+        }
+
+        void setCopied(int life, int variable, long coded) {
+            setValueIn(lives, life, FIRST_COPIED, variable, coded);
+        }
+
+        private static long valueIn(Rows rows, int row, int first, int variable) {
+            int sort = rows.half(row, SORTS) >>> SORT_BITS * variable & (1 << SORT_BITS) - 1;
+            return coded(sort, rows.half(row, first + variable));
+        }
+
+        private static void setValueIn(Rows rows, int row, int first, int variable, long coded) {
+            int shift = SORT_BITS * variable;
+            int others = rows.half(row, SORTS) & ~((1 << SORT_BITS) - 1 << shift);
+            rows.setHalf(row, SORTS, others | (int) (coded >>> 32) << shift);
+            rows.setHalf(row, first + variable, (int) coded);
         }
 
         /** The life that the value is, or 0. */
@@ -1464,7 +1512,7 @@ public final class DoorScan {
         private void reachFrame(int frame) {
             if (frames.reach(frame)) {
                 for (int i = 0; i < VARIABLES; i++) {
-                    reachValue(frames.whole(frame, FIRST_VARIABLE + i));
+                    reachValue(variableOf(frame, i));
                 }
             }
         }
@@ -1509,10 +1557,10 @@ public final class DoorScan {
             }
             nodes.reach(lives.half(life, ROOT));
             reachFrame(lives.half(life, OWN_FRAME));
-            reachValue(lives.whole(life, SUBJECT));
-            reachValue(lives.whole(life, COPIED_SUBJECT));
+            reachValue(subjectOf(life, SUBJECT));
+            reachValue(subjectOf(life, COPIED_SUBJECT));
             for (int i = 0; i < VARIABLES; i++) {
-                reachValue(lives.whole(life, FIRST_COPIED + i));
+                reachValue(copiedOf(life, i));
             }
         }
     }
@@ -1611,11 +1659,11 @@ public final class DoorScan {
         }
 
         long ownVariable(int variable) {
-            return frames.whole(lives.half(asked[0], OWN_FRAME), FIRST_VARIABLE + variable);
+            return heap.variableOf(lives.half(asked[0], OWN_FRAME), variable);
         }
 
         long ownSubject() {
-            return lives.whole(asked[0], SUBJECT);
+            return heap.subjectOf(asked[0], SUBJECT);
         }
 
         int ownPlace() {
@@ -1686,11 +1734,11 @@ public final class DoorScan {
         }
 
         private long variableOf(int node, int variable) {
-            return frames.whole(nodes.half(node, FRAME), FIRST_VARIABLE + variable);
+            return heap.variableOf(nodes.half(node, FRAME), variable);
         }
 
         private void setVariable(int node, int variable, long coded) {
-            frames.setWhole(nodes.half(node, FRAME), FIRST_VARIABLE + variable, coded);
+            heap.setVariable(nodes.half(node, FRAME), variable, coded);
         }
 
         private int lifeNow() {
@@ -1698,7 +1746,7 @@ public final class DoorScan {
         }
 
         private long subjectNow() {
-            return lives.whole(lifeNow(), SUBJECT);
+            return heap.subjectOf(lifeNow(), SUBJECT);
         }
 
         private int placeNow() {
@@ -1710,7 +1758,7 @@ public final class DoorScan {
         }
 
         private void scanFrom(long subject, int place) {
-            lives.setWhole(lifeNow(), SUBJECT, subject);
+            lives.setHalf(lifeNow(), SUBJECT, (int) subject);
             lives.setHalf(lifeNow(), PLACE, place);
         }
 
@@ -1786,9 +1834,9 @@ public final class DoorScan {
             }
             int frame = heap.takeFrame(0, 0);
             for (int i = 0; i < VARIABLES; i++) {
-                frames.setWhole(frame, FIRST_VARIABLE + i, lives.whole(life, FIRST_COPIED + i));
+                heap.setVariable(frame, i, heap.copiedOf(life, i));
             }
-            openIn(0, 0, lives.half(life, BODY), frame);
+            openIn(0, 0, heap.bodyOf(life), frame);
             lives.setHalf(life, OWN_FRAME, frame);
             lives.setHalf(life, ROOT, at);
         }
@@ -1826,7 +1874,7 @@ public final class DoorScan {
         private void makeLife(int node) {
             int life = heap.takeLife(program.partOf(expressionOf(node), 1), subjectNow(), placeNow());
             for (int i = 0; i < VARIABLES; i++) {
-                lives.setWhole(life, FIRST_COPIED + i, variableOf(node, i));
+                heap.setCopied(life, i, variableOf(node, i));
             }
             give(node, coded(IS_LIFE, life));
         }
@@ -1854,10 +1902,10 @@ public final class DoorScan {
                 stop('t', node);
                 return;
             }
-            int life = heap.takeLife(lives.half(old, BODY), lives.whole(old, COPIED_SUBJECT),
+            int life = heap.takeLife(heap.bodyOf(old), heap.subjectOf(old, COPIED_SUBJECT),
                     lives.half(old, COPIED_PLACE));
             for (int i = 0; i < VARIABLES; i++) {
-                lives.setWhole(life, FIRST_COPIED + i, lives.whole(old, FIRST_COPIED + i));
+                heap.setCopied(life, i, heap.copiedOf(old, i));
             }
             give(node, coded(IS_LIFE, life));
         }
@@ -2398,12 +2446,12 @@ public final class DoorScan {
             int caller = nodes.half(node, FRAME);
             if (body == NONE) {
                 stop('x', node);
-            } else if (frames.half(caller, DEPTH) >= MOST_WITHIN) {
+            } else if (heap.depthOf(caller) >= MOST_WITHIN) {
                 stop('d', node);
             } else {
                 int frame = heap.takeFrame(node, caller);
-                frames.setWhole(frame, FIRST_VARIABLE, first);
-                frames.setWhole(frame, FIRST_VARIABLE + 1, second);
+                heap.setVariable(frame, 0, first);
+                heap.setVariable(frame, 1, second);
                 openIn(node, 3, body, frame);
             }
         }

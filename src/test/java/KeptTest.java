@@ -13,6 +13,7 @@ public final class KeptTest {
             scanning(churn);
             procedures(churn);
             lives(churn);
+            eachVariable(churn);
         }
         passing();
         manyAtOnce();
@@ -70,6 +71,16 @@ public final class KeptTest {
         kept(churn, "'1233' f", "(. (. 1 2) (@ (c (. (. 3 '') (@ (c (& % 3)))))))");
         kept(churn, "'12' '12' f", "(; (: 0 (. 1 2)) (| (& (@ (c (& % 1))) v0) v0))");
         kept(churn, "1 2 f", "(; % (; (: 0 (c 1)) (; (: 1 (c 2)) (| (@ v0) (@ v1)))))");
+    }
+
+    /** Values of all sorts in any variable: of the run, of a life that has copies, and of one that is made again. */
+    private static void eachVariable(String churn) {
+        String row = "(; (: A (. 1 2)) (; (: B -7) (; (: L (c (| vA vB))) (; (: A 0) (; (call 0 1) (| (r (@ vL))"
+                + " (; (: L (^ vL)) (; (call 0 1) (| (r (@ vL)) (; (: A (. 3 4)) (; (call 0 1) (| vA vB))))))))))))";
+        for (int v = 0; v < 8; v++) {
+            String others = row.replace("A", "" + v).replace("B", "" + (v + 1) % 8).replace("L", "" + (v + 2) % 8);
+            kept(churn, "'12' -7 '12' -7 '34' -7 f", others, "0=(R %)");
+        }
     }
 
     /** Texts on their way from one expression to the next, whenever it is that room is made. */

@@ -65,7 +65,7 @@ public final class PlaceTest {
         Kit.values("3 3 f", "(; (: 0 (c (s '95' (t 3 (m (t 1 2)))))) (= 3 (r (@ v0))))");
     }
 
-    /** What the later one of an expression that is open twice gives in vain may come to something for the earlier one. */
+    /** What an expression that is open twice has given in vain the second time may come to something the first time. */
     private static void begunTwice() {
         Kit.values("2 2 2 2 2 2 f", "(& (s '2' (H (t 2 (- 5 (t 1 3))))) (s '3' (H #7)))");
         Kit.values("2 2 2 2 2 2 f", "(s '1231' (& (= 1 (F (t 1 (- 4 (t 1 3))))) (= 2 #9)))");

@@ -19,8 +19,9 @@ public final class RoomTest {
         "(s 5 1)", "(s 1 (s 2 (s 3 (s 4 (s 5 (s 6 7))))))", "(. (. 'a' 'b') (. 'c' 'd'))", "([ (. 1 2) (. '' 1) 3)",
         "(call 5 1)", "(call 5 (call 5 (call 5 (call 5 (call 5 (call 5 1))))))", "(u 0 (@ (u 1 (c (u 2 1)))))",
         "(& (u 0 (c (| 1 2))) (@ v0))", "(call 4 (. 1 2) (. 3 4))", "(T 1)", "(t 1 1)", "(s 1 (U 1))",
-        "(s 12 (t 1 (m 1)))"};
-    private static final int[] STEPS = {2, 2, 1, 2, 4, 3, 13, 7, 8, 4, 19, 6, 7, 11, 2, 3, 4, 6};
+        "(s 12 (t 1 (m 1)))", around("(call 3 _ #7)", 25, "(call 3 #7 #7)"), around("(u 0 (^ _))", 20, "#7"),
+        around("(call 4 _ 'abc')", 12, "'x'"), around("(u 0 (. _ 'a'))", 12, "1")};
+    private static final int[] STEPS = {2, 2, 1, 2, 4, 3, 13, 7, 8, 4, 19, 6, 7, 11, 2, 3, 4, 6, 105, 41, 73, 37};
     /** Leaves that are gone back into without a step, and the steps of one; some of their numbers come to nothing. */
     private static final String[] GONE_BACK = {around("(F _)", 39, "1"), around("(U _)", 39, "1"),
         around("(t 1 _)", 15, "1"), around("(F (t 1 _))", 12, "1"), "(= 1 (F ''))", "(= 1 (* 1 (F (F (F (F ''))))))",
@@ -75,7 +76,7 @@ public final class RoomTest {
     }
 
     private static DoorScan begun(String leaf, int steps) {
-        DoorScan x = Kit.language("5=(S v0)", "4=(S (. v0 v1))");
+        DoorScan x = Kit.language("5=(S v0)", "4=(S (. v0 v1))", "3=(S (c 1))");
         int more = forest(x, Kit.put(x, leaf), steps, 980);
         int one = x.make(';', Kit.put(x, "(S 1)"), more, -1);
         int row = Kit.put(x, "(! 1)");
